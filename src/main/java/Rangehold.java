@@ -13,7 +13,7 @@ public final class Rangehold {
     public static final int CALL = 0, VOTE = 1, ENTRIES = 2, BASE = 3, GOT = 4, REQUEST = 5, ANSWER = 6;
 
     private static final int NODES = 5, KEYS = 32, RANGES = 8, TRANSACTIONS = 80, ASKS = 500, PROGRAMS = 6, JOBS = 24;
-    private static final int MESSAGES = 150, BYTES = 1200, LAST_TIME = 5000, FULL_LOG = 40, CARRIED_LOG = 24, SENT_ENTRIES = 4, SETTLED_MESSAGES = 400;
+    private static final int MESSAGES = 150, BYTES = 1200, LAST_TIME = 5000, FULL_LOG = 40, CARRIED_LOG = 24, SENT_ENTRIES = 4, SETTLED_MESSAGES = 400, KEPT_SILENT = 40, KEPT_HELD = 12, KEPT_EVERY = 10, PUSHED_K = 1000;
     private static final int ASK_WORDS = 8, NEVER = LOST - 10, FAR = 1000000;
 
     /** What is left to do for a copy, behind what a message or a tick did to it. */
@@ -119,22 +119,22 @@ public final class Rangehold {
             it.disk++;
         }
         for (int i = 0; i < transactionCount; i++) {
-            if (transactions[i].node == node && transactions[i].state <= ENDING) {
+            if (transactions[i].home == it && transactions[i].state <= ENDING) {
                 transactions[i].state = LOST;
             }
         }
         for (int i = 0; i < jobCount; i++) {
-            if (jobs[i].node == node && jobs[i].state == RUNS) {
+            if (jobs[i].home == it && jobs[i].state == RUNS) {
                 jobs[i].state = GIVEN_UP;
             }
         }
-        return loseAsks(node);
+        return loseAsks(it);
     }
 
-    private int loseAsks(int node) {
+    private int loseAsks(Node home) {
         int many = 0;
         for (int i = 0; i < askCount; i++) {
-            if (asks[i].node == node && asks[i].answer == NONE) {
+            if (asks[i].home == home && asks[i].answer == NONE) {
                 asks[i].answer = NEVER;
                 many++;
             }
@@ -217,7 +217,7 @@ public final class Rangehold {
     private Transaction newTransaction(Node node, Job job) {
         node.lastK = node.nextK(time);
         moves++;
-        Transaction it = new Transaction(transactionCount, node.number, 8L * node.lastK + node.number, job, moves);
+        Transaction it = new Transaction(transactionCount, node, 8L * node.lastK + node.number, job, moves);
         transactions[transactionCount] = it;
         transactionCount++;
         return it;
@@ -271,7 +271,7 @@ public final class Rangehold {
 
     /** Asks an operation of a transaction; the detail is the key behind the last one of a SCAN. */
     private Ask operate(Transaction it, int command, int key, long value, int detail, int range, int to) {
-        Ask ask = newAsk(command, it.node, range);
+        Ask ask = newAsk(command, it.home, range);
         it.operations++;
         it.ask = ask;
         ask.transaction = it;
@@ -335,7 +335,7 @@ public final class Rangehold {
     }
 
     private Ask askEnd(Transaction it, boolean isCommit, int range, int to) {
-        Ask ask = newAsk(END, it.node, range);
+        Ask ask = newAsk(END, it.home, range);
         ask.transaction = it;
         it.ask = ask;
         it.state = ENDING;
@@ -349,9 +349,8 @@ public final class Rangehold {
     }
 
     private boolean tellIfDue(Transaction it) {
-        Node node = nodes[it.node];
-        if (it.toldAt == 0 && node.isUp) {
-            boolean isOver = 100L * (time + node.offset - 3) > it.moment / 8;
+        if (it.toldAt == 0 && it.home.isUp) {
+            boolean isOver = 100L * (time + it.home.offset - 3) > it.moment / 8;
             if (it.state == ABORTED || it.state == COMMITTED && isOver) {
                 moves++;
                 it.toldAt = moves;
@@ -364,7 +363,7 @@ public final class Rangehold {
         Transaction it = transactionOf(transaction);
         switch (what) {
             case 0: return it.state;
-            case 1: return it.node;
+            case 1: return it.home.number;
             case 2: return it.moment;
             case 3: return it.anchor;
             case 4: return it.done;
@@ -407,29 +406,29 @@ public final class Rangehold {
     // ---- other asks
 
     public int readAsOf(int node, long moment, int key, int range, int to) throws IndexOutOfBoundsException, IllegalArgumentException, IllegalStateException {
-        checkAsker(node, range, to);
+        Node home = askerOf(node, range, to);
         if (!isMoment(moment) || !isKey(key)) {
             throw new IllegalArgumentException();
         }
-        checkCanAsk(node);
-        Ask ask = newAsk(READ, node, range);
+        checkCanAsk(home);
+        Ask ask = newAsk(READ, home, range);
         ask.moment = moment;
         ask.key = key;
         return post(ask, to);
     }
 
     public int asOf(int node, int kind, long moment, int key, int range, int to) throws IndexOutOfBoundsException, IllegalArgumentException, IllegalStateException {
-        checkAsker(node, range, to);
+        Node home = askerOf(node, range, to);
         boolean isKind = kind == LOOK || kind == CLOSE || kind == SWEEP;
         if (!isKind || !isMoment(moment) || kind == LOOK && !isKey(key)) {
             throw new IllegalArgumentException();
         }
-        checkCanAsk(node);
-        return askAsOf(node, kind, moment, kind == LOOK ? key : NONE, range, to).number;
+        checkCanAsk(home);
+        return askAsOf(home, kind, moment, kind == LOOK ? key : NONE, range, to).number;
     }
 
-    private Ask askAsOf(int node, int kind, long moment, int key, int range, int to) {
-        Ask ask = newAsk(kind, node, range);
+    private Ask askAsOf(Node home, int kind, long moment, int key, int range, int to) {
+        Ask ask = newAsk(kind, home, range);
         ask.moment = moment;
         ask.key = key;
         post(ask, to);
@@ -440,72 +439,73 @@ public final class Rangehold {
         return moment >= 0 && moment <= 800L * (time + 10);
     }
 
-    private void checkAsker(int node, int range, int to) {
-        checkNode(node);
-        checkNode(to);
+    /** The node that asks; this, the range and the node to which it is sent must exist. */
+    private Node askerOf(int node, int range, int to) {
         checkRange(range);
+        checkNode(to);
+        return nodeOf(node);
     }
 
-    private void checkCanAsk(int node) {
-        if (!nodes[node].isUp || askCount >= ASKS) {
+    private void checkCanAsk(Node home) {
+        if (!home.isUp || askCount >= ASKS) {
             throw new IllegalStateException();
         }
     }
 
     public int push(int node, int transaction, int range, int to) throws IndexOutOfBoundsException, IllegalStateException {
-        checkAsker(node, range, to);
+        Node home = askerOf(node, range, to);
         Transaction it = transactionOf(transaction);
-        checkCanAsk(node);
+        checkCanAsk(home);
         if (it.anchor == NONE) {
             throw new IllegalStateException();
         }
-        return askPush(node, it, range, to).number;
+        return askPush(home, it, range, to).number;
     }
 
-    private Ask askPush(int node, Transaction it, int range, int to) {
-        Ask ask = newAsk(PUSH, node, range);
+    private Ask askPush(Node home, Transaction it, int range, int to) {
+        Ask ask = newAsk(PUSH, home, range);
         ask.transaction = it;
-        ask.moment = nodes[node].nextK(time);
+        ask.moment = home.nextK(time);
         post(ask, to);
         return ask;
     }
 
     public int resolve(int node, int transaction, int key, int range, int to) throws IndexOutOfBoundsException, IllegalArgumentException, IllegalStateException {
-        checkAsker(node, range, to);
+        Node home = askerOf(node, range, to);
         Transaction it = transactionOf(transaction);
         if (!isKey(key)) {
             throw new IllegalArgumentException();
         }
-        checkCanAsk(node);
+        checkCanAsk(home);
         if ((it.knownAt >> node & 1) == 0) {
             throw new IllegalStateException();
         }
-        return askResolve(node, it, key, range, to).number;
+        return askResolve(home, it, key, range, to).number;
     }
 
-    private Ask askResolve(int node, Transaction it, int key, int range, int to) {
-        Ask ask = newAsk(RESOLVE, node, range);
+    private Ask askResolve(Node home, Transaction it, int key, int range, int to) {
+        Ask ask = newAsk(RESOLVE, home, range);
         ask.transaction = it;
         ask.key = key;
-        ask.write = it.outcome == COMMITTED ? it.wrote[key] : null;
+        ask.write = it.outcome == COMMITTED ? it.writeOf(key) : null;
         post(ask, to);
         return ask;
     }
 
     public int split(int node, int key, int range, int to) throws IndexOutOfBoundsException, IllegalArgumentException, IllegalStateException {
-        checkAsker(node, range, to);
+        Node home = askerOf(node, range, to);
         if (key < 1 || key >= KEYS) {
             throw new IllegalArgumentException();
         }
-        checkCanAsk(node);
+        checkCanAsk(home);
         if (rangeNumbers >= RANGES) {
             throw new IllegalStateException();
         }
-        return askSplit(node, key, range, to).number;
+        return askSplit(home, key, range, to).number;
     }
 
-    private Ask askSplit(int node, int key, int range, int to) {
-        Ask ask = newAsk(SPLIT, node, range);
+    private Ask askSplit(Node home, int key, int range, int to) {
+        Ask ask = newAsk(SPLIT, home, range);
         ask.key = key;
         ask.detail = rangeNumbers;
         rangeNumbers++;
@@ -514,29 +514,29 @@ public final class Rangehold {
     }
 
     public int freeze(int node, int into, int range, int to) throws IndexOutOfBoundsException, IllegalStateException {
-        checkAsker(node, range, to);
+        Node home = askerOf(node, range, to);
         checkRange(into);
-        checkCanAsk(node);
+        checkCanAsk(home);
         if (into == range) {
             throw new IllegalStateException();
         }
-        Ask ask = newAsk(FREEZE, node, range);
+        Ask ask = newAsk(FREEZE, home, range);
         ask.detail = into;
         return post(ask, to);
     }
 
     public int settleJoin(int node, int kind, int freeze, int to) throws IndexOutOfBoundsException, IllegalArgumentException, IllegalStateException {
-        checkNode(node);
+        Node home = nodeOf(node);
         checkNode(to);
         Ask frozen = askOf(freeze);
         if (kind < JOIN || kind > THAW || frozen.command != FREEZE) {
             throw new IllegalArgumentException();
         }
-        checkCanAsk(node);
+        checkCanAsk(home);
         if (kind == JOIN && frozen.answer != OK || kind == THAW && !isRefused(frozen)) {
             throw new IllegalStateException();
         }
-        Ask ask = newAsk(kind, node, kind == THAW ? frozen.range : frozen.detail);
+        Ask ask = newAsk(kind, home, kind == THAW ? frozen.range : frozen.detail);
         ask.freeze = frozen;
         return post(ask, to);
     }
@@ -551,15 +551,15 @@ public final class Rangehold {
     }
 
     public int change(int node, boolean isAdd, int member, int range, int to) throws IndexOutOfBoundsException, IllegalStateException {
-        checkAsker(node, range, to);
-        checkNode(member);
-        checkCanAsk(node);
-        return askChange(node, isAdd ? ADD : DROP, member, range, to).number;
+        Node home = askerOf(node, range, to);
+        Node changed = nodeOf(member);
+        checkCanAsk(home);
+        return askChange(home, isAdd ? ADD : DROP, changed, range, to).number;
     }
 
-    private Ask askChange(int node, int command, int member, int range, int to) {
-        Ask ask = newAsk(command, node, range);
-        ask.detail = nodes[member].member();
+    private Ask askChange(Node home, int command, Node changed, int range, int to) {
+        Ask ask = newAsk(command, home, range);
+        ask.detail = changed.member();
         post(ask, to);
         return ask;
     }
@@ -577,7 +577,7 @@ public final class Rangehold {
         Ask it = askOf(ask);
         switch (what) {
             case 0: return it.command;
-            case 1: return it.node;
+            case 1: return it.home.number;
             case 2: return it.range;
             case 3: return it.answer;
             case 4: return it.answerValue;
@@ -595,8 +595,8 @@ public final class Rangehold {
     }
 
     /** Makes an ask; its callers have looked whether there are less than 500. */
-    private Ask newAsk(int command, int node, int range) {
-        Ask ask = new Ask(askCount, command, node, range);
+    private Ask newAsk(int command, Node home, int range) {
+        Ask ask = new Ask(askCount, command, home, range);
         if (askCount < ASKS) {
             asks[askCount] = ask;
             askCount++;
@@ -605,7 +605,7 @@ public final class Rangehold {
     }
 
     private int post(Ask ask, int to) {
-        Message it = net.send(REQUEST, ask.node, to, ask.range);
+        Message it = net.send(REQUEST, ask.home.number, to, ask.range);
         it.ask = ask;
         ask.sentAt = time;
         ask.sentTo = to;
@@ -676,16 +676,14 @@ public final class Rangehold {
         if (!state.has(key) || version < 0) {
             throw new IndexOutOfBoundsException();
         }
-        long moment = -1;
-        int writer = NONE;
-        for (int i = 0; i <= version; i++) {
-            writer = state.nextVersion(key, moment);
-            if (writer == NONE) {
-                throw new IndexOutOfBoundsException();
-            }
-            moment = transactions[writer].moment;
+        Transaction writer = state.nextWriter(1 << key, -1);
+        for (int i = 0; i < version && writer != null; i++) {
+            writer = state.nextWriter(1 << key, writer.moment);
         }
-        return isValue ? transactions[writer].valueOf(key) : moment;
+        if (writer == null) {
+            throw new IndexOutOfBoundsException();
+        }
+        return isValue ? writer.valueOf(key) : writer.moment;
     }
 
     public long intentAt(int range, int key, int what) throws IndexOutOfBoundsException, IllegalArgumentException {
@@ -700,11 +698,11 @@ public final class Rangehold {
         if (what == 3) {
             return state.read[key];
         }
-        int holder = state.intents[key];
-        if (holder == NONE || what == 0) {
-            return holder;
+        Transaction holder = state.intents[key];
+        if (holder == null) {
+            return NONE;
         }
-        return what == 1 ? state.intentValues(key) : transactions[holder].anchor;
+        return what == 0 ? holder.number : what == 1 ? state.intentValues(key) : holder.anchor;
     }
 
     public long resolved(int node, int range) throws IndexOutOfBoundsException, IllegalStateException {
@@ -733,23 +731,33 @@ public final class Rangehold {
             throw new NoSuchElementException();
         }
         int left = index;
-        int writer = state.nextWriter(since);
-        for (int i = 0; i < TRANSACTIONS && writer != NONE && left >= Integer.bitCount(state.versions[writer]); i++) {
-            left -= Integer.bitCount(state.versions[writer]);
-            writer = state.nextWriter(transactions[writer].moment);
+        Transaction writer = state.nextWriter(-1, since);
+        for (int i = 0; i < TRANSACTIONS && writer != null && left >= Integer.bitCount(state.versions[writer.number]); i++) {
+            left -= Integer.bitCount(state.versions[writer.number]);
+            writer = state.nextWriter(-1, writer.moment);
         }
-        if (writer == NONE) {
+        if (writer == null) {
             throw new NoSuchElementException();
         }
-        int keys = state.versions[writer];
-        for (int i = 0; i < left; i++) {
-            keys &= keys - 1;
+        if (what == 1) {
+            return writer.moment;
         }
-        int key = 0;
-        while (key < KEYS && (keys >> key & 1) == 0) {
-            key++;
+        int key = keyInBits(state.versions[writer.number], left);
+        return what == 2 ? key : writer.valueOf(key);
+    }
+
+    /** The key that has this index among those in a row of bits. */
+    private static int keyInBits(int bits, int index) {
+        int left = index;
+        for (int key = 0; key < KEYS; key++) {
+            if ((bits >>> key & 1) == 1) {
+                if (left == 0) {
+                    return key;
+                }
+                left--;
+            }
         }
-        return what == 1 ? transactions[writer].moment : what == 2 ? key : transactions[writer].valueOf(key);
+        return NONE;
     }
 
     public int ownerOf(int key) throws IllegalArgumentException {
@@ -800,14 +808,13 @@ public final class Rangehold {
             return ABSENT;
         }
         State state = ranges[owner].state;
-        int newest = state.newestVersion(key, Long.MAX_VALUE);
-        int holder = state.intents[key];
-        if (holder != NONE && transactions[holder].isAgreed && state.holdsValue(key, transactions[holder].wrote[key])) {
-            if (newest == NONE || transactions[holder].moment > transactions[newest].moment) {
-                newest = holder;
-            }
+        Transaction newest = state.newestWriter(key, Long.MAX_VALUE);
+        Transaction holder = state.intents[key];
+        boolean isHeld = holder != null && holder.isAgreed && state.holdsValue(key, holder.writeOf(key));
+        if (isHeld && (newest == null || holder.moment > newest.moment)) {
+            newest = holder;
         }
-        return newest == NONE ? ABSENT : transactions[newest].valueOf(key);
+        return newest == null ? ABSENT : newest.valueOf(key);
     }
 
     // ---- programs and jobs
@@ -956,7 +963,7 @@ public final class Rangehold {
         if (!it.isUp || ranges[0] == null || jobCount >= JOBS) {
             throw new IllegalStateException();
         }
-        Job job = new Job(node, program, a, b);
+        Job job = new Job(it, program, a, b);
         job.code = code;
         jobs[jobCount] = job;
         jobCount++;
@@ -971,7 +978,7 @@ public final class Rangehold {
         Job it = jobs[job];
         switch (what) {
             case 0: return it.state;
-            case 1: return it.node;
+            case 1: return it.home.number;
             case 2: return it.program;
             case 3: return it.begun;
             case 4: return it.state == DONE ? it.machine.given : 0;
@@ -1012,7 +1019,7 @@ public final class Rangehold {
             job.fall(MANY);
             return;
         }
-        job.transaction = newTransaction(nodes[job.node], job);
+        job.transaction = newTransaction(job.home, job);
         job.machine.prepare(job.code, job.a, job.b);
         job.phase = WORKS;
         job.next = TO_CALCULATE;
@@ -1040,16 +1047,16 @@ public final class Rangehold {
         int to = job.leaders[range];
         switch (job.next) {
             case TO_PUSH:
-                job.ask = askPush(job.node, job.pushed, range, to);
+                job.ask = askPush(job.home, job.pushed, range, to);
                 break;
             case TO_RESOLVE:
-                job.ask = askResolve(job.node, job.pushed, key, range, to);
+                job.ask = askResolve(job.home, job.pushed, key, range, to);
                 break;
             case TO_END:
                 job.ask = askEnd(it, job.ending == FOR_GOOD, range, to);
                 break;
             case TO_CLEAN:
-                job.ask = askResolve(job.node, it, key, range, to);
+                job.ask = askResolve(job.home, it, key, range, to);
                 break;
             default:
                 job.ask = operate(it, job.machine.command(), key, job.machine.value, job.machine.behind, range, to);
@@ -1140,44 +1147,44 @@ public final class Rangehold {
         }
     }
 
-    private Ask keepRange(Node node, int range, Copy copy) {
-        int self = node.number;
+    private Ask keepRange(Node self, int range, Copy copy) {
         long members = copy.members();
-        int silent = silentMember(copy, members);
-        if (silent != NONE && Copy.sizeOf(members) >= 2) {
-            return askChange(self, DROP, silent, range, self);
+        Node silent = silentMember(copy, members);
+        if (silent != null && Copy.sizeOf(members) >= 2) {
+            return askChange(self, DROP, silent, range, self.number);
         }
-        int fresh = freshNode(members);
-        if (fresh != NONE && Copy.sizeOf(members) < 3) {
-            return askChange(self, ADD, fresh, range, self);
+        Node fresh = freshNode(members);
+        if (fresh != null && Copy.sizeOf(members) < 3) {
+            return askChange(self, ADD, fresh, range, self.number);
         }
         int middle = copy.state.middleKey();
         if (middle != NONE && rangeNumbers < RANGES) {
-            return askSplit(self, middle, range, self);
+            return askSplit(self, middle, range, self.number);
         }
-        long moment = 800L * (time + node.offset - 13);
+        long moment = 800L * (time + self.offset - 13);
         if (moment > copy.state.closed) {
-            return askAsOf(self, CLOSE, moment, NONE, range, self);
+            return askAsOf(self, CLOSE, moment, NONE, range, self.number);
         }
         return null;
     }
 
-    private int silentMember(Copy copy, long members) {
-        for (int node = 0; node < nodeCount; node++) {
-            if (node != (copy.member & 7) && Copy.diskOf(members, node) != NONE && time - copy.gotAt[node] > 40) {
-                return node;
+    private Node silentMember(Copy copy, long members) {
+        for (int i = 0; i < nodeCount; i++) {
+            boolean isOther = nodes[i] != copy.home && Copy.diskOf(members, i) != NONE;
+            if (isOther && time - copy.gotAt[i] > KEPT_SILENT) {
+                return nodes[i];
             }
         }
-        return NONE;
+        return null;
     }
 
-    private int freshNode(long members) {
-        for (int node = 0; node < nodeCount; node++) {
-            if (nodes[node].isUp && Copy.diskOf(members, node) == NONE) {
-                return node;
+    private Node freshNode(long members) {
+        for (int i = 0; i < nodeCount; i++) {
+            if (nodes[i].isUp && Copy.diskOf(members, i) == NONE) {
+                return nodes[i];
             }
         }
-        return NONE;
+        return null;
     }
 
     // ---- the net and time
@@ -1197,7 +1204,8 @@ public final class Rangehold {
             return NONE;
         }
         net.lost++;
-        return net.take(choice % net.many).kind;
+        Message it = net.take(choice % net.many);
+        return it == null ? NONE : it.kind;
     }
 
     public int twice(int choice) throws IllegalArgumentException {
@@ -1360,7 +1368,7 @@ public final class Rangehold {
                 goOn(job);
             }
         }
-        for (int node = 0; node < nodeCount && time % 10 == 0; node++) {
+        for (int node = 0; node < nodeCount && time % KEPT_EVERY == 0; node++) {
             if (nodes[node].isUp && nodes[node].keeps) {
                 keep(nodes[node]);
             }
@@ -1375,7 +1383,7 @@ public final class Rangehold {
             copy.touch = time;
             return time % 3 == 0 ? SENDS : IDLE;
         }
-        boolean isOverdue = time - copy.touch > 8 + 3 * (copy.member & 7);
+        boolean isOverdue = time - copy.touch > 8 + 3 * copy.home.number;
         return isOverdue && Copy.isMember(copy.members(), copy.member) ? stand(copy) : IDLE;
     }
 
@@ -1383,7 +1391,7 @@ public final class Rangehold {
         long members = copy.members();
         copy.term++;
         copy.voted = copy.member;
-        copy.votes = 1 << (copy.member & 7);
+        copy.votes = 1 << copy.home.number;
         copy.role = CANDIDATE;
         copy.touch = time;
         if (Copy.sizeOf(members) == 1) {
@@ -1391,7 +1399,7 @@ public final class Rangehold {
             return APPENDED;
         }
         for (int node = 0; node < nodeCount; node++) {
-            if (node != (copy.member & 7) && Copy.diskOf(members, node) != NONE) {
+            if (node != copy.home.number && Copy.diskOf(members, node) != NONE) {
                 Message it = sendFrom(copy, CALL, Copy.memberOf(members, node));
                 it.index = copy.lastIndex();
                 it.indexTerm = copy.termAt(it.index);
@@ -1408,8 +1416,12 @@ public final class Rangehold {
 
     private int deliverMessage(int index) {
         Message it = net.take(index);
-        Node node = nodes[it.to & 7];
-        if (!node.isUp) {
+        if (it == null) {
+            return NONE;
+        }
+        int to = it.to & 7;
+        Node node = to < nodeCount ? nodes[to] : null;
+        if (node == null || !node.isUp) {
             return it.kind;
         }
         if (it.kind == ANSWER) {
@@ -1424,7 +1436,7 @@ public final class Rangehold {
             }
             return it.kind;
         }
-        int work = it.kind == REQUEST ? heedRequest(it.ask, node) : heedMember(it, node);
+        int work = it.kind != REQUEST ? heedMember(it, node) : it.ask != null ? heedRequest(it.ask, node) : IDLE;
         Copy copy = node.copyOf(it.range);
         if (copy != null) {
             followUp(copy, work, it.from & 7);
@@ -1451,10 +1463,10 @@ public final class Rangehold {
             }
         } else if (isOperation && (ask.answer == LATE || ask.answer == GONE)) {
             of.state = DOOMED;
-            nodes[of.node].lastK = Math.max(nodes[of.node].lastK, (int) (ask.answerValue / 8));
+            of.home.lastK = Math.max(of.home.lastK, (int) (ask.answerValue / 8));
         } else if (ask.answer == OK && (ask.command == END || ask.command == PUSH)) {
             of.outcome = (int) ask.answerValue;
-            of.knownAt |= 1 << ask.node;
+            of.knownAt |= 1 << ask.home.number;
             if (ask.command == END) {
                 of.state = of.outcome;
             }
@@ -1462,7 +1474,7 @@ public final class Rangehold {
     }
 
     private Message answerTo(Ask ask, Node node) {
-        Message it = net.send(ANSWER, node.number, ask.node, ask.range);
+        Message it = net.send(ANSWER, node.number, ask.home.number, ask.range);
         it.ask = ask;
         return it;
     }
@@ -1584,10 +1596,12 @@ public final class Rangehold {
     private void makeFirstCopy(Node node, int range) {
         if (isRange(range) && node.copyOf(range) == null && Copy.isMember(ranges[range].firstMembers, node.member())) {
             Copy copy = node.makeCopy(range, transactions, time);
-            copy.baseIndex = 0;
-            copy.baseMembers = ranges[range].firstMembers;
-            copy.base.copyFrom(ranges[range].first);
-            copy.forget();
+            if (copy != null) {
+                copy.baseIndex = 0;
+                copy.baseMembers = ranges[range].firstMembers;
+                copy.base.copyFrom(ranges[range].first);
+                copy.forget();
+            }
         }
     }
 
@@ -1608,12 +1622,12 @@ public final class Rangehold {
             return;
         }
         if (work == ACCEPTED) {
-            if (copy.next[sender] <= copy.lastIndex()) {
+            if (sender >= 0 && sender < NODES && copy.next[sender] <= copy.lastIndex()) {
                 sendTo(copy, sender);
             }
         } else if (work == SENDS || work == APPENDED) {
             for (int node = 0; node < nodeCount; node++) {
-                if (node != (copy.member & 7)) {
+                if (node != copy.home.number) {
                     sendTo(copy, node);
                 }
             }
@@ -1658,7 +1672,7 @@ public final class Rangehold {
             return;
         }
         State state = range.state;
-        if (ask.command == SPLIT && state.splitsBy(ask)) {
+        if (ask.command == SPLIT && ask.detail > 0 && ask.detail < RANGES && state.splitsBy(ask)) {
             State upper = new State(transactions);
             upper.copyFrom(state);
             upper.beUpper(ask.key);
@@ -1684,13 +1698,12 @@ public final class Rangehold {
         if (ask == null) {
             return;
         }
-        Node node = nodes[copy.member & 7];
         boolean isOwn = copy.role == LEADER && copy.termAt(index) == copy.term;
         boolean isParting = ask.command == SPLIT && copy.state.splitsBy(ask);
-        copy.state.carryOut(ask, isOwn ? answerTo(ask, node) : net.aside);
+        copy.state.carryOut(ask, isOwn ? answerTo(ask, copy.home) : net.aside);
         copy.carriedMembers = Copy.changed(copy.carriedMembers, ask);
         if (isParting) {
-            makeFirstCopy(node, ask.detail);
+            makeFirstCopy(copy.home, ask.detail);
         }
         if (ask.command == DROP && copy.role == LEADER && !Copy.isMember(copy.carriedMembers, copy.member)) {
             copy.role = FOLLOWER;
@@ -1910,7 +1923,7 @@ public final class Rangehold {
     /** Writers of which a feed since the floor does not tell just what they left in the range. */
     private int feedErrors(State state) {
         long until = state.resolvedMoment();
-        int keys = State.keysBetween(state.first, state.behind);
+        int keys = state.keyBits();
         int many = 0;
         for (int i = 0; i < transactionCount; i++) {
             Transaction it = transactions[i];
@@ -1994,9 +2007,12 @@ public final class Rangehold {
 
         /** Makes an empty copy, below every base; the row of one that was lost is used again. */
         Copy makeCopy(int range, Transaction[] all, int time) {
+            if (range < 0 || range >= RANGES) {
+                return null;
+            }
             Copy copy = copies[range];
             if (copy == null) {
-                copy = new Copy(range, all);
+                copy = new Copy(range, this, all);
                 copies[range] = copy;
             }
             copy.clear(number + 8 * disk, time);
@@ -2010,9 +2026,9 @@ public final class Rangehold {
         int first, behind, frozenBy, greatestEpoch, splitOff;
         long closed, floor;
 
-        /** Of each key: the greatest moment of reading, and the transaction of the intent. */
+        /** Of each key: the greatest moment of reading, and the transaction of the intent, or null. */
         final long[] read = new long[KEYS];
-        final int[] intents = new int[KEYS];
+        final Transaction[] intents = new Transaction[KEYS];
 
         /** Of each transaction: the keys of which it has a version, as bits, and its record (0 without one). */
         final int[] versions = new int[TRANSACTIONS];
@@ -2025,9 +2041,6 @@ public final class Rangehold {
 
         State(Transaction[] all) {
             this.all = all;
-            for (int key = 0; key < KEYS; key++) {
-                intents[key] = NONE;
-            }
         }
 
         void copyFrom(State other) {
@@ -2038,8 +2051,10 @@ public final class Rangehold {
             splitOff = other.splitOff;
             closed = other.closed;
             floor = other.floor;
+            for (int key = 0; key < KEYS; key++) {
+                intents[key] = other.intents[key];
+            }
             System.arraycopy(other.read, 0, read, 0, KEYS);
-            System.arraycopy(other.intents, 0, intents, 0, KEYS);
             System.arraycopy(other.versions, 0, versions, 0, TRANSACTIONS);
             System.arraycopy(other.records, 0, records, 0, TRANSACTIONS);
             System.arraycopy(other.values, 0, values, 0, ASK_WORDS);
@@ -2048,21 +2063,29 @@ public final class Rangehold {
         }
 
         boolean has(int key) {
-            return key >= first && key < behind;
+            return key >= first && key < behind && key >= 0 && key < KEYS;
         }
 
-        /** The bits of the keys from the first one up to the one ahead of the second one. */
-        static int keysBetween(int from, int to) {
-            int below = to >= KEYS ? -1 : (1 << to) - 1;
-            return from >= KEYS ? 0 : below & -(1 << from);
+        /** Its keys as bits. */
+        int keyBits() {
+            int bits = 0;
+            for (int key = 0; key < KEYS; key++) {
+                bits |= has(key) ? 1 << key : 0;
+            }
+            return bits;
         }
 
         static boolean isIn(long[] set, Ask ask) {
-            return (set[ask.number >> 6] >> (ask.number & 63) & 1) == 1;
+            int word = ask == null ? NONE : ask.number >> 6;
+            return word >= 0 && word < set.length && (set[word] >>> (ask.number & 63) & 1) == 1;
         }
 
-        static void putIn(long[] set, Ask ask) {
-            set[ask.number >> 6] |= 1L << (ask.number & 63);
+        static void setIn(long[] set, Ask ask, boolean isIn) {
+            int word = ask == null ? NONE : ask.number >> 6;
+            if (word >= 0 && word < set.length) {
+                long bit = 1L << (ask.number & 63);
+                set[word] = isIn ? set[word] | bit : set[word] & ~bit;
+            }
         }
 
         /** Carries a command out; the answer is put into the message. */
@@ -2125,7 +2148,6 @@ public final class Rangehold {
         }
 
         int takeState(Ask freeze) {
-            State other = freeze.frozen;
             if (isIn(refused, freeze)) {
                 return REFUSED;
             }
@@ -2135,12 +2157,15 @@ public final class Rangehold {
             if (frozenBy != 0) {
                 return FROZEN;
             }
+            State other = freeze == null ? null : freeze.frozen;
             if (other == null || other.first != behind) {
                 return WRONG;
             }
-            for (int key = other.first; key < other.behind; key++) {
-                read[key] = other.read[key];
-                intents[key] = other.intents[key];
+            for (int key = 0; key < KEYS; key++) {
+                if (other.has(key)) {
+                    read[key] = other.read[key];
+                    intents[key] = other.intents[key];
+                }
             }
             for (int i = 0; i < TRANSACTIONS; i++) {
                 versions[i] |= other.versions[i];
@@ -2152,7 +2177,7 @@ public final class Rangehold {
             behind = other.behind;
             closed = Math.min(closed, other.closed);
             floor = Math.max(floor, other.floor);
-            putIn(joined, freeze);
+            setIn(joined, freeze, true);
             return OK;
         }
 
@@ -2160,7 +2185,7 @@ public final class Rangehold {
             if (isIn(joined, freeze)) {
                 return JOINED;
             }
-            putIn(refused, freeze);
+            setIn(refused, freeze, true);
             return OK;
         }
 
@@ -2191,8 +2216,8 @@ public final class Rangehold {
 
         /** Whether an intent of another transaction with a moment up to the told one is on a key. */
         boolean isBlocked(int key, Transaction of, long moment) {
-            int holder = intents[key];
-            return holder != NONE && all[holder] != of && all[holder].moment <= moment;
+            Transaction holder = intents[key];
+            return holder != null && holder != of && holder.moment <= moment;
         }
 
         void noteRead(int key, Transaction of, long moment) {
@@ -2203,63 +2228,59 @@ public final class Rangehold {
         void readKey(Ask ask, Message reply) {
             int key = ask.key;
             if (isBlocked(key, ask.transaction, ask.moment)) {
-                reply.answer = WAITS;
-                reply.value = intents[key];
+                makeWait(key, reply);
                 return;
             }
             noteRead(key, ask.transaction, ask.moment);
             reply.value = valueFor(key, ask.moment, ask.write);
         }
 
+        void makeWait(int key, Message reply) {
+            Transaction holder = intents[key];
+            if (holder != null) {
+                reply.answer = WAITS;
+                reply.value = holder.number;
+                reply.key = key;
+            }
+        }
+
         /** What is read of a key: the own write, if it is in the intent, or what the versions tell. */
         long valueFor(int key, long moment, Ask write) {
-            if (holdsValue(key, write)) {
+            if (write != null && holdsValue(key, write)) {
                 return write.value;
             }
-            int writer = newestVersion(key, moment);
-            return writer == NONE ? ABSENT : all[writer].valueOf(key);
+            Transaction writer = newestWriter(key, moment);
+            return writer == null ? ABSENT : writer.valueOf(key);
         }
 
         /** Whether the intent on a key has the value of this WRITE. */
         boolean holdsValue(int key, Ask write) {
-            if (write == null || write.transaction == null || write.key != key) {
+            if (write == null || write.transaction == null || write.key != key || intents[key] != write.transaction) {
                 return false;
             }
-            boolean isPut = (values[write.number >> 6] >> (write.number & 63) & 1) == 1;
-            return isPut && intents[key] == write.transaction.number;
+            int word = write.number >> 6;
+            return word < values.length && (values[word] >>> (write.number & 63) & 1) == 1;
         }
 
-        /** The transaction of the version of a key with the greatest moment up to the told one. */
-        int newestVersion(int key, long moment) {
-            int newest = NONE;
+        /** The transaction of the version of a key with the greatest moment up to the told one; null without one. */
+        Transaction newestWriter(int key, long moment) {
+            Transaction newest = null;
             for (int i = 0; i < TRANSACTIONS; i++) {
-                boolean isOne = (versions[i] >>> key & 1) == 1 && all[i] != null && all[i].moment <= moment;
-                if (isOne && (newest == NONE || all[i].moment > all[newest].moment)) {
-                    newest = i;
+                Transaction it = (versions[i] >>> key & 1) == 1 ? all[i] : null;
+                if (it != null && it.moment <= moment && (newest == null || it.moment > newest.moment)) {
+                    newest = it;
                 }
             }
             return newest;
         }
 
-        /** The transaction of the version of a key with the least moment above the told one. */
-        int nextVersion(int key, long moment) {
-            int next = NONE;
+        /** The transaction with the least moment above the told one that has versions of one of the keys; null without one. */
+        Transaction nextWriter(int keys, long moment) {
+            Transaction next = null;
             for (int i = 0; i < TRANSACTIONS; i++) {
-                boolean isOne = (versions[i] >>> key & 1) == 1 && all[i] != null && all[i].moment > moment;
-                if (isOne && (next == NONE || all[i].moment < all[next].moment)) {
-                    next = i;
-                }
-            }
-            return next;
-        }
-
-        /** The transaction with the least moment above the told one that has versions. */
-        int nextWriter(long moment) {
-            int next = NONE;
-            for (int i = 0; i < TRANSACTIONS; i++) {
-                boolean isOne = versions[i] != 0 && all[i] != null && all[i].moment > moment;
-                if (isOne && (next == NONE || all[i].moment < all[next].moment)) {
-                    next = i;
+                Transaction it = (versions[i] & keys) != 0 ? all[i] : null;
+                if (it != null && it.moment > moment && (next == null || it.moment < next.moment)) {
+                    next = it;
                 }
             }
             return next;
@@ -2267,23 +2288,25 @@ public final class Rangehold {
 
         void writeKey(Ask ask, Message reply) {
             int key = ask.key;
-            int holder = intents[key];
-            int own = ask.transaction == null ? NONE : ask.transaction.number;
-            if (holder != NONE && holder != own) {
-                boolean isEarlier = all[holder].moment < ask.moment;
-                reply.answer = isEarlier ? WAITS : LATE;
-                reply.value = isEarlier ? holder : all[holder].moment;
+            Transaction holder = intents[key];
+            if (holder != null && holder != ask.transaction) {
+                if (holder.moment < ask.moment) {
+                    makeWait(key, reply);
+                } else {
+                    reply.answer = LATE;
+                    reply.value = holder.moment;
+                }
                 return;
             }
-            int newest = newestVersion(key, Long.MAX_VALUE);
-            long written = newest == NONE ? -1 : all[newest].moment;
+            Transaction newest = newestWriter(key, Long.MAX_VALUE);
+            long written = newest == null ? -1 : newest.moment;
             if (read[key] > ask.moment || written >= ask.moment) {
                 reply.answer = LATE;
                 reply.value = Math.max(read[key], written);
                 return;
             }
-            intents[key] = own;
-            putIn(values, ask);
+            intents[key] = ask.transaction;
+            setIn(values, ask, true);
         }
 
         void setRecord(Transaction of, boolean isCommit, Message reply) {
@@ -2298,7 +2321,7 @@ public final class Rangehold {
 
         void pushAway(Ask ask, Message reply) {
             Transaction of = ask.transaction;
-            if (of != null && records[of.number] == 0 && ask.moment < of.moment / 8 + 1000) {
+            if (of != null && records[of.number] == 0 && ask.moment < of.moment / 8 + PUSHED_K) {
                 reply.answer = WAITS;
                 reply.value = of.number;
             } else {
@@ -2308,7 +2331,7 @@ public final class Rangehold {
 
         void resolveKey(Ask ask) {
             Transaction of = ask.transaction;
-            if (of == null || intents[ask.key] != of.number) {
+            if (of == null || intents[ask.key] != of) {
                 return;
             }
             if (holdsValue(ask.key, ask.write)) {
@@ -2318,20 +2341,21 @@ public final class Rangehold {
         }
 
         void dropIntent(int key) {
-            int holder = intents[key];
-            intents[key] = NONE;
-            Ask write = holder == NONE ? null : all[holder].lastWrite;
+            Transaction holder = intents[key];
+            intents[key] = null;
+            Ask write = holder == null ? null : holder.lastWrite;
             while (write != null) {
                 if (write.key == key) {
-                    values[write.number >> 6] &= ~(1L << (write.number & 63));
+                    setIn(values, write, false);
                 }
                 write = write.write;
             }
         }
 
         int intentValues(int key) {
+            Transaction holder = intents[key];
+            Ask write = holder == null ? null : holder.lastWrite;
             int many = 0;
-            Ask write = intents[key] == NONE ? null : all[intents[key]].lastWrite;
             while (write != null) {
                 many += write.key == key && isIn(values, write) ? 1 : 0;
                 write = write.write;
@@ -2343,20 +2367,20 @@ public final class Rangehold {
             Transaction of = ask.transaction;
             int end = Math.min(ask.detail, behind);
             for (int key = ask.key; key < end; key++) {
-                if (isBlocked(key, of, ask.moment)) {
-                    reply.answer = WAITS;
-                    reply.value = intents[key];
-                    reply.key = key;
+                if (has(key) && isBlocked(key, of, ask.moment)) {
+                    makeWait(key, reply);
                     return;
                 }
             }
             long[] found = reply.clearFound();
             int many = 0;
             for (int key = ask.key; key < end; key++) {
-                noteRead(key, of, ask.moment);
-                // A transaction writes nothing while it scans, so what it wrote is as it was when this was asked.
-                found[key] = valueFor(key, ask.moment, of == null ? null : of.wrote[key]);
-                many += found[key] != ABSENT ? 1 : 0;
+                if (has(key)) {
+                    noteRead(key, of, ask.moment);
+                    // A transaction writes nothing while it scans, so what it wrote is as it was when this was asked.
+                    found[key] = valueFor(key, ask.moment, of == null ? null : of.writeOf(key));
+                    many += found[key] != ABSENT ? 1 : 0;
+                }
             }
             reply.value = many;
             reply.key = end;
@@ -2364,8 +2388,10 @@ public final class Rangehold {
 
         void closeUpTo(long moment) {
             closed = Math.max(closed, moment);
-            for (int key = first; key < behind; key++) {
-                read[key] = Math.max(read[key], moment + 1);
+            for (int key = 0; key < KEYS; key++) {
+                if (has(key)) {
+                    read[key] = Math.max(read[key], moment + 1);
+                }
             }
         }
 
@@ -2374,11 +2400,11 @@ public final class Rangehold {
                 return WRONG;
             }
             floor = Math.max(floor, moment);
-            for (int key = first; key < behind; key++) {
-                int newest = newestVersion(key, moment);
-                for (int i = 0; i < TRANSACTIONS; i++) {
+            for (int key = 0; key < KEYS; key++) {
+                Transaction newest = has(key) ? newestWriter(key, moment) : null;
+                for (int i = 0; i < TRANSACTIONS && newest != null; i++) {
                     boolean isOld = all[i] != null && all[i].moment <= moment;
-                    if (isOld && (i != newest || all[i].valueOf(key) == ABSENT)) {
+                    if (isOld && (all[i] != newest || newest.valueOf(key) == ABSENT)) {
                         versions[i] &= ~(1 << key);
                     }
                 }
@@ -2388,21 +2414,21 @@ public final class Rangehold {
 
         /** Forgets all keys but those from the first one up to the one ahead of the second one. */
         void keepOnly(int from, int to) {
-            int kept = keysBetween(from, to);
-            for (int key = first; key < behind; key++) {
+            for (int key = 0; key < KEYS; key++) {
                 if (key < from || key >= to) {
                     dropIntent(key);
                     read[key] = 0;
                 }
             }
+            first = from;
+            behind = to;
+            int kept = keyBits();
             for (int i = 0; i < TRANSACTIONS; i++) {
                 versions[i] &= kept;
-                if (records[i] != 0 && all[i] != null && (all[i].anchor < from || all[i].anchor >= to)) {
+                if (all[i] != null && !has(all[i].anchor)) {
                     records[i] = 0;
                 }
             }
-            first = from;
-            behind = to;
         }
 
         /** Becomes the first state of the range that is split off from this one at a key. */
@@ -2434,10 +2460,9 @@ public final class Rangehold {
 
         long resolvedMoment() {
             long least = closed;
-            for (int key = first; key < behind; key++) {
-                if (intents[key] != NONE) {
-                    least = Math.min(least, all[intents[key]].moment - 1);
-                }
+            for (int key = 0; key < KEYS; key++) {
+                Transaction holder = intents[key];
+                least = holder == null ? least : Math.min(least, holder.moment - 1);
             }
             return least;
         }
@@ -2445,7 +2470,7 @@ public final class Rangehold {
         int versionsBetween(long since, long until) {
             int many = 0;
             for (int i = 0; i < TRANSACTIONS; i++) {
-                if (versions[i] != 0 && all[i] != null && all[i].moment > since && all[i].moment <= until) {
+                if (all[i] != null && all[i].moment > since && all[i].moment <= until) {
                     many += Integer.bitCount(versions[i]);
                 }
             }
@@ -2463,7 +2488,7 @@ public final class Rangehold {
         int intentCount() {
             int many = 0;
             for (int key = 0; key < KEYS; key++) {
-                many += intents[key] != NONE ? 1 : 0;
+                many += intents[key] != null ? 1 : 0;
             }
             return many;
         }
@@ -2476,22 +2501,23 @@ public final class Rangehold {
             return many;
         }
 
+        /** The versions and the intent of a key together. */
         int heldOn(int key) {
-            int many = intents[key] != NONE ? 1 : 0;
+            int many = intents[key] != null ? 1 : 0;
             for (int i = 0; i < TRANSACTIONS; i++) {
                 many += versions[i] >>> key & 1;
             }
             return many;
         }
 
-        /** The key at which a keeper splits: at least half of more than 12 are ahead of it. NONE without one. */
+        /** The key at which a keeper splits: at least half of what it has is ahead of it, if this is enough. NONE without one. */
         int middleKey() {
             int total = versionCount() + intentCount();
             int ahead = 0;
-            for (int key = first; key + 1 < behind && total > 12; key++) {
+            for (int key = 0; key < KEYS && total > KEPT_HELD; key++) {
                 ahead += heldOn(key);
-                if (2 * ahead >= total) {
-                    return key + 1;
+                if (2 * ahead >= total && has(key)) {
+                    return has(key + 1) ? key + 1 : NONE;
                 }
             }
             return NONE;
@@ -2501,6 +2527,7 @@ public final class Rangehold {
     /** A copy of a range on a node; a member is told as its node and 8 times the number of its disk, a group in 12 bits a node. */
     private static final class Copy {
         final int range;
+        final Node home;
         int member;
         boolean isThere;
         int term, voted;
@@ -2517,8 +2544,9 @@ public final class Rangehold {
         final int[] match = new int[NODES];
         final int[] gotAt = new int[NODES];
 
-        Copy(int range, Transaction[] all) {
+        Copy(int range, Node home, Transaction[] all) {
             this.range = range;
+            this.home = home;
             base = new State(all);
             state = new State(all);
         }
@@ -2756,9 +2784,9 @@ public final class Rangehold {
             for (int index = lastIndex(); index > mark && termAt(index) == term; index--) {
                 int have = 0;
                 for (int node = 0; node < NODES; node++) {
-                    boolean isSelf = node == (member & 7) && isMember(group, member);
-                    boolean isOne = isSelf || diskOf(group, node) != NONE && node != (member & 7) && match[node] >= index;
-                    have += isOne ? 1 : 0;
+                    boolean isSelf = node == home.number;
+                    boolean hasIt = isSelf ? isMember(group, member) : diskOf(group, node) != NONE && match[node] >= index;
+                    have += hasIt ? 1 : 0;
                 }
                 if (2 * have > sizeOf(group)) {
                     mark = index;
@@ -2815,7 +2843,8 @@ public final class Rangehold {
     }
 
     private static final class Transaction {
-        final int number, node;
+        final int number;
+        final Node home;
         final long moment;
         final Job job;
         final int begunAt;
@@ -2828,9 +2857,9 @@ public final class Rangehold {
         /** Of each key the latest WRITE that was answered OK. */
         final Ask[] wrote = new Ask[KEYS];
 
-        Transaction(int number, int node, long moment, Job job, int begunAt) {
+        Transaction(int number, Node home, long moment, Job job, int begunAt) {
             this.number = number;
-            this.node = node;
+            this.home = home;
             this.moment = moment;
             this.job = job;
             this.begunAt = begunAt;
@@ -2848,8 +2877,14 @@ public final class Rangehold {
             return isAgreed || state == COMMITTED && anchor == NONE;
         }
 
+        /** The latest WRITE of a key that was answered OK; null without one. */
+        Ask writeOf(int key) {
+            return key < 0 || key >= KEYS ? null : wrote[key];
+        }
+
         long valueOf(int key) {
-            return key < 0 || key >= KEYS || wrote[key] == null ? ABSENT : wrote[key].value;
+            Ask write = key < 0 || key >= KEYS ? null : wrote[key];
+            return write == null ? ABSENT : write.value;
         }
 
         int wroteKeys() {
@@ -2862,7 +2897,8 @@ public final class Rangehold {
     }
 
     private static final class Ask {
-        final int number, command, node, range;
+        final int number, command, range;
+        final Node home;
         Transaction transaction;
         int key = NONE, operation;
 
@@ -2884,10 +2920,10 @@ public final class Rangehold {
         long[] found;
         Job job;
 
-        Ask(int number, int command, int node, int range) {
+        Ask(int number, int command, Node home, int range) {
             this.number = number;
             this.command = command;
-            this.node = node;
+            this.home = home;
             this.range = range;
         }
 
@@ -3009,8 +3045,11 @@ public final class Rangehold {
             return it;
         }
 
-        /** Takes a message out; there is one with this index. */
+        /** Takes a message out; null without one. */
         Message take(int index) {
+            if (index < 0 || index >= many || many > MESSAGES) {
+                return null;
+            }
             Message it = rows[index];
             for (int i = index; i + 1 < many; i++) {
                 rows[i] = rows[i + 1];
@@ -3023,7 +3062,8 @@ public final class Rangehold {
     }
 
     private static final class Job {
-        final int node, program, a, b;
+        final Node home;
+        final int program, a, b;
         int[] code;
         int state = RUNS, fell, begun = 1, phase = WORKS;
         Transaction transaction;
@@ -3040,13 +3080,13 @@ public final class Rangehold {
         final int[] leaders = new int[RANGES];
         final Machine machine = new Machine();
 
-        Job(int node, int program, int a, int b) {
-            this.node = node;
+        Job(Node home, int program, int a, int b) {
+            this.home = home;
             this.program = program;
             this.a = a;
             this.b = b;
             for (int range = 0; range < RANGES; range++) {
-                leaders[range] = node;
+                leaders[range] = home.number;
             }
         }
 
