@@ -1266,26 +1266,20 @@ public final class Rangehold {
         if (time + ticks > LAST_TIME) {
             throw new IllegalStateException();
         }
-        int left = SETTLED_MESSAGES;
-        for (int passed = 0; passed < ticks; passed++) {
-            left -= deliverFirst(left);
-            if (left == 0 || isSettled()) {
+        int delivered = 0;
+        int passed = 0;
+        while (delivered < SETTLED_MESSAGES && passed <= ticks) {
+            if (net.many > 0) {
+                deliverMessage(0);
+                delivered++;
+            } else if (passed == ticks || isSettled()) {
                 return passed;
+            } else {
+                tick();
+                passed++;
             }
-            tick();
         }
-        deliverFirst(left);
-        return ticks;
-    }
-
-    /** Delivers the first message of the net each time, up to so many; returns how many. */
-    private int deliverFirst(int most) {
-        int many = 0;
-        while (net.many > 0 && many < most) {
-            deliverMessage(0);
-            many++;
-        }
-        return many;
+        return passed;
     }
 
     private boolean isSettled() {
@@ -2103,7 +2097,13 @@ public final class Rangehold {
                 case END: setRecord(ask.transaction, ask.transaction != null && ask.transaction.isCommit, reply); break;
                 case PUSH: pushAway(ask, reply); break;
                 case RESOLVE: resolveKey(ask); break;
-                case SPLIT: partAt(ask, reply); break;
+                case SPLIT:
+                    reply.value = ask.detail;
+                    if (!isSplitOff(ask.detail)) {
+                        splitOff |= 1 << ask.detail;
+                        keepOnly(first, ask.key);
+                    }
+                    break;
                 case FREEZE: reply.answer = beFrozen(ask.number + 1); break;
                 case JOIN: reply.answer = takeState(ask.freeze); break;
                 case REFUSE: reply.answer = beRefused(ask.freeze); break;
@@ -2195,14 +2195,6 @@ public final class Rangehold {
             }
             frozenBy = 0;
             return OK;
-        }
-
-        void partAt(Ask ask, Message reply) {
-            reply.value = ask.detail;
-            if (!isSplitOff(ask.detail)) {
-                keepOnly(first, ask.key);
-                splitOff |= 1 << ask.detail;
-            }
         }
 
         boolean isSplitOff(int range) {
@@ -2414,15 +2406,17 @@ public final class Rangehold {
 
         /** Forgets all keys but those from the first one up to the one ahead of the second one. */
         void keepOnly(int from, int to) {
+            int kept = 0;
             for (int key = 0; key < KEYS; key++) {
-                if (key < from || key >= to) {
+                if (key >= from && key < to) {
+                    kept |= 1 << key;
+                } else {
                     dropIntent(key);
                     read[key] = 0;
                 }
             }
             first = from;
             behind = to;
-            int kept = keyBits();
             for (int i = 0; i < TRANSACTIONS; i++) {
                 versions[i] &= kept;
                 if (all[i] != null && !has(all[i].anchor)) {
@@ -3457,24 +3451,17 @@ public final class Rangehold {
                     end++;
                 }
             } else if (isDigit(byteAt(start))) {
-                token = NUMBER;
-                readNumber();
+                number = byteAt(start) - '0';
+                while (end < length && isDigit(byteAt(end))) {
+                    number = Math.min(10 * number + byteAt(end) - '0', MAX_NUMBER + 1);
+                    end++;
+                }
+                token = number > MAX_NUMBER ? BAD : NUMBER;
             } else {
                 token = isSign(byteAt(start)) ? SIGN : BAD;
             }
             if (token == BAD) {
                 fail(1);
-            }
-        }
-
-        void readNumber() {
-            number = byteAt(start) - '0';
-            while (end < length && isDigit(byteAt(end))) {
-                number = Math.min(10 * number + byteAt(end) - '0', MAX_NUMBER + 1);
-                end++;
-            }
-            if (number > MAX_NUMBER) {
-                token = BAD;
             }
         }
 
