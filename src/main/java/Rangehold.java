@@ -890,10 +890,11 @@ public final class Rangehold {
     }
 
     private int[] codeOf(int program) {
-        if (program < 0 || program >= text.programCount) {
+        int[] code = program < 0 || program >= text.programCount ? null : text.codes[program];
+        if (code == null) {
             throw new IndexOutOfBoundsException();
         }
-        return text.codes[program];
+        return code;
     }
 
     public int codeAt(int program, int instruction, int what) throws IndexOutOfBoundsException, IllegalArgumentException {
@@ -3806,7 +3807,7 @@ public final class Rangehold {
         void keepPrograms() {
             int fresh = parsed;
             for (int i = 0; i < fresh && programCount < PROGRAMS; i++) {
-                int[] code = new int[4 * (begins[i + 1] - begins[i])];
+                int[] code = new int[4 * Math.max(0, begins[i + 1] - begins[i])];
                 System.arraycopy(rows, 4 * begins[i], code, 0, code.length);
                 codes[programCount] = code;
                 programCount++;
