@@ -550,6 +550,22 @@ public final class PromiseTests {
         is("what was ever answered counts", answer(x, x.resolve(0, done, 5, 0, 0)), Rangehold.OK);
     }
 
+    private static void promise11Gone() {
+        Rangehold x = alone();
+        int it = x.begin(0);
+        answer(x, x.write(it, 3, 30, 0, 0));
+        answer(x, x.write(it, 3, 31, 0, 0));
+        x.pass(11);
+        is("PUSH of an old one", answer(x, x.push(0, it, 0, 0)), Rangehold.OK);
+        is("RESOLVE", answer(x, x.resolve(0, it, 3, 0, 0)), Rangehold.OK);
+        int read = x.read(it, 3, 0, 0);
+        is("its own write is gone with the intent", answer(x, read), Rangehold.OK);
+        is("so it reads what the versions tell", x.askAt(read, 4), ABSENT);
+        is("END of what was aborted", answer(x, x.end(it, true, 0, 0)), Rangehold.OK);
+        is("tells this", x.transactionAt(it, 0), Rangehold.ABORTED);
+        is("agrees", x.agrees(), true);
+    }
+
     private static void promise12() {
         Rangehold x = three();
         int it = commit(x, 0, 3, 30, 20, 200);
@@ -614,6 +630,7 @@ public final class PromiseTests {
         fails("settleJoin(ADD)", BAD_ARGUMENT, () -> x.settleJoin(0, Rangehold.ADD, freeze, 0));
         fails("settleJoin of no ask", NO_SUCH_NUMBER, () -> x.settleJoin(0, Rangehold.JOIN, 99, 0));
         fails("settleJoin at no node", NO_SUCH_NUMBER, () -> x.settleJoin(1, Rangehold.JOIN, freeze, 0));
+        fails("settleJoin to no node", NO_SUCH_NUMBER, () -> x.settleJoin(0, Rangehold.ADD, freeze, 1));
         fails("THAW ahead of a REFUSE", BAD_STATE, () -> x.settleJoin(0, Rangehold.THAW, freeze, 0));
         int refuse = x.settleJoin(0, Rangehold.REFUSE, freeze, 0);
         is("REFUSE is asked for the other range", x.askAt(refuse, 2), 0);
@@ -673,6 +690,32 @@ public final class PromiseTests {
         is("errors", x.errors(), 0);
         x.stop(0, false);
         fails("change at a node that is down", BAD_STATE, () -> x.change(0, true, 0, 0, 1));
+    }
+
+    private static void promise13Next() {
+        Rangehold x = three();
+        x.addNode(0);
+        for (int i = 0; i < 5; i++) {
+            answer(x, x.readAsOf(0, 0, 0, 0, 0));
+        }
+        x.change(0, true, 3, 0, 0);
+        x.deliver(0);
+        is("a new member is sent to", x.messageAt(2, 2), 3);
+        is("from the ADD on", x.messageAt(2, 6), 1);
+        x.deliver(2);
+        is("it has no copy: GOT no", x.messageAt(2, 5), 0);
+        is("with the term that was told", x.messageAt(2, 4), 1);
+        x.deliver(2);
+        is("then a BASE", x.messageAt(2, 0), Rangehold.BASE);
+        x.deliver(2);
+        is("makes a copy", x.nodeAt(3, 3), 1);
+        is("at this base", x.copyAt(3, 0, 3), 0);
+        is("GOT yes", x.messageAt(2, 5), 1);
+        x.deliver(2);
+        is("then the entries behind it", x.messageAt(2, 6), 4);
+        calm(x);
+        is("all of them", x.copyAt(3, 0, 3), 7);
+        is("it votes, too", x.copyAt(3, 0, 6), 15);
     }
 
     private static void promise14() {
@@ -736,6 +779,41 @@ public final class PromiseTests {
     }
 
     // ---- promises 15 to 19
+
+    /** Node 0 becomes the LEADER again and again, but its entries are lost. */
+    private static void promise14Long() {
+        Rangehold x = three();
+        x.stop(2, false);
+        for (int i = 0; i < 39; i++) {
+            x.readAsOf(0, 0, 0, 0, 0);
+            x.deliver(0);
+            x.lose(0);
+            x.lose(0);
+        }
+        for (int i = 0; i < 60; i++) {
+            x.stop(0, false);
+            x.start(0);
+            x.pass(9);
+            while (x.count(9) > 0) {
+                int kind = x.messageAt(0, 0);
+                if (kind == Rangehold.CALL || kind == Rangehold.VOTE) {
+                    x.deliver(0);
+                } else {
+                    x.lose(0);
+                }
+            }
+            is("LEADER by the next term", x.copyAt(0, 0, 1), Rangehold.LEADER);
+            is("with an entry NOTHING more", x.copyAt(0, 0, 7), 41 + i);
+        }
+        is("nothing was agreed on", x.rangeAt(0, 3), 1);
+        x.pass(3);
+        calm(x);
+        is("all is agreed on", x.rangeAt(0, 3), 100);
+        is("readings of a LEADER that stopped are LOST", x.count(8), 0);
+        x.pass(1);
+        is("the log is compacted", x.copyAt(0, 0, 7), 0);
+        is("errors", x.errors(), 0);
+    }
 
     private static void promise15() {
         Rangehold x = new Rangehold();
@@ -1274,6 +1352,72 @@ public final class PromiseTests {
         is("COMMITTED", y.heldAt(1), 1);
     }
 
+    private static void promise25Rests() {
+        Rangehold x = with(alone(), "tx some{get x 1;give x;}");
+        int it = x.begin(0);
+        answer(x, x.write(it, 1, 1, 0, 0));
+        x.run(0, 0, 0, 0);
+        is("a READ in the way of an intent", ahead(x, x.jobAt(0, 8)), Rangehold.WAITS);
+        int push = x.jobAt(0, 8);
+        is("a PUSH", ahead(x, push), Rangehold.WAITS);
+        is("it rests", x.jobAt(0, 8), NONE);
+        is("and asks nothing", x.count(7), push + 1);
+        is("it PUSHES still", x.jobAt(0, 7), 1);
+        x.pass(1);
+        is("until the next tick", x.jobAt(0, 8), push + 1);
+        is("then it asks the PUSH anew", x.askAt(push + 1, 0), Rangehold.PUSH);
+        x.settle(40);
+        is("DONE", x.jobAt(0, 0), Rangehold.DONE);
+        is("the other one is ABORTED", answer(x, x.end(it, true, 0, 0)), Rangehold.OK);
+        is("as its END tells", x.transactionAt(it, 0), Rangehold.ABORTED);
+        Rangehold y = with(alone(), "tx some{scan k v 0,32{s=s+v;}give s;}");
+        y.setKeeper(0, false);
+        int first = commit(y, 0, 3, 3, 20, 20);
+        resolveAll(y, first, 0, 3, 20);
+        answer(y, y.split(0, 10, 0, 0));
+        y.pass(9);
+        calm(y);
+        y.run(0, 0, 0, 0);
+        is("a SCAN up to the end of its range", ahead(y, y.jobAt(0, 8)), Rangehold.OK);
+        int rest = y.jobAt(0, 8);
+        is("goes on behind it", y.askAt(rest, 6), 10);
+        is("where it believes it", ahead(y, rest), Rangehold.WRONG);
+        is("it rests", y.jobAt(0, 8), NONE);
+        y.pass(1);
+        is("then asks the next range", y.askAt(y.jobAt(0, 8), 2), 1);
+        y.settle(40);
+        is("the sum", y.jobAt(0, 4), 23);
+        is("agrees", y.agrees(), true);
+    }
+
+    private static void promise25Writes() {
+        Rangehold x = with(alone(), "tx some{put 9,1;put 4,2;put 9,3;has p 5;put 5,p;del 4;get q 4;give q;}");
+        x.run(0, 0, 0, 0);
+        for (int i = 0; i < 7; i++) {
+            is("it WORKS", x.jobAt(0, 7), 0);
+            is("an operation", ahead(x, x.jobAt(0, 8)), Rangehold.OK);
+        }
+        is("END", x.askAt(x.jobAt(0, 8), 0), Rangehold.END);
+        is("the anchor key", x.transactionAt(0, 3), 9);
+        is("END", ahead(x, x.jobAt(0, 8)), Rangehold.OK);
+        for (int key : new int[] {4, 5, 9}) {
+            is("it CLEANS", x.jobAt(0, 7), 2);
+            is("a key that it wrote", x.askAt(x.jobAt(0, 8), 6), key);
+            is("a RESOLVE", ahead(x, x.jobAt(0, 8)), Rangehold.OK);
+        }
+        is("it TELLS", x.jobAt(0, 7), 3);
+        is("nothing is left", x.rangeAt(0, 5), 0);
+        is("the value that was put last", x.heldAt(9), 3);
+        is("what was taken away", x.heldAt(4), ABSENT);
+        is("a version tells it", x.versionAt(0, 4, 0, true), ABSENT);
+        x.setClock(0, -3);
+        x.pass(9);
+        is("it rests till it can be told", x.jobAt(0, 0), Rangehold.RUNS);
+        x.pass(1);
+        is("DONE", x.jobAt(0, 0), Rangehold.DONE);
+        is("it gave", x.jobAt(0, 4), 0);
+    }
+
     private static void promise26() {
         Rangehold x = three();
         is("setKeeper", x.setKeeper(0, true), false);
@@ -1311,6 +1455,43 @@ public final class PromiseTests {
         x.lose(0);
         calm(x);
         x.start(0);
+        is("errors", x.errors(), 0);
+    }
+
+    private static void promise26Adds() {
+        Rangehold x = new Rangehold();
+        for (int i = 0; i < 4; i++) {
+            x.addNode(0);
+        }
+        x.found(1);
+        x.stop(1, false);
+        x.setKeeper(0, true);
+        x.pass(20);
+        calm(x);
+        is("an ADD of the least node that is up", x.rangeAt(0, 7), 5);
+        x.pass(10);
+        calm(x);
+        is("and of the next one", x.rangeAt(0, 7), 13);
+        int asks = x.count(7);
+        x.pass(10);
+        calm(x);
+        is("3 are enough", x.rangeAt(0, 7), 13);
+        is("so the moment is closed", x.askAt(asks, 0), Rangehold.CLOSE);
+        x.stop(3, false);
+        for (int i = 0; i < 8; i++) {
+            x.pass(5);
+            calm(x);
+        }
+        is("no DROP so far", x.rangeAt(0, 7), 13);
+        x.pass(5);
+        calm(x);
+        x.pass(5);
+        calm(x);
+        is("a DROP of a member that is silent for more than 40 ticks", x.rangeAt(0, 7), 5);
+        x.start(1);
+        x.pass(10);
+        calm(x);
+        is("an ADD", x.rangeAt(0, 7), 7);
         is("errors", x.errors(), 0);
     }
 
@@ -1398,7 +1579,11 @@ public final class PromiseTests {
         for (int i = 0; i < 166; i++) {
             y.pass(30);
         }
-        is("pass up to the end", y.pass(20), 5000);
+        fails("settle of too many ticks", BAD_STATE, () -> y.settle(21));
+        is("settle up to the end", y.settle(20), 0);
+        fails("play of too many acts", BAD_STATE, () -> y.play(0, 21));
+        is("play up to the end does not pass it", y.play(0, 20) <= 5000, true);
+        is("pass up to the end", y.pass(5000 - y.count(0)), 5000);
         fails("pass behind the end", BAD_STATE, () -> y.pass(1));
         fails("pass of too many behind the end", BAD_ARGUMENT, () -> y.pass(31));
         fails("settle behind the end", BAD_STATE, () -> y.settle(1));
@@ -1598,11 +1783,14 @@ public final class PromiseTests {
         promise10();
         promise10Sweeps();
         promise11();
+        promise11Gone();
         promise12();
         promise13();
         promise13Changes();
+        promise13Next();
         promise14();
         promise14Full();
+        promise14Long();
         promise15();
         promise16();
         promise17();
@@ -1616,7 +1804,10 @@ public final class PromiseTests {
         promise25();
         promise25Many();
         promise25Anew();
+        promise25Rests();
+        promise25Writes();
         promise26();
+        promise26Adds();
         promise26Splits();
         promise27();
         promise28();
