@@ -479,7 +479,10 @@ public final class PromiseTests {
         int below = x.asOf(0, Rangehold.LOOK, moment - 1, 8, 0, 0);
         is("LOOK below the floor", answer(x, below), Rangehold.GONE);
         is("with the floor", x.askAt(below, 4), moment);
-        is("READ below the floor", answer(x, x.readAsOf(0, moment - 1, 8, 0, 0)), Rangehold.GONE);
+        int gone = x.readAsOf(0, moment - 1, 8, 0, 0);
+        is("READ below the floor", answer(x, gone), Rangehold.GONE);
+        is("with the floor", x.askAt(gone, 4), moment);
+        is("it reads nothing", x.intentAt(0, 8, 3), 800 * 19 + 1);
         x.stop(0, false);
         fails("readAsOf at a node that is down", BAD_STATE, () -> x.readAsOf(0, 0, 8, 0, 0));
         fails("asOf at a node that is down", BAD_STATE, () -> x.asOf(0, Rangehold.LOOK, 0, 8, 0, 0));
@@ -561,6 +564,8 @@ public final class PromiseTests {
         int read = x.read(it, 3, 0, 0);
         is("its own write is gone with the intent", answer(x, read), Rangehold.OK);
         is("so it reads what the versions tell", x.askAt(read, 4), ABSENT);
+        is("a WRITE brings an intent", answer(x, x.write(it, 3, 32, 0, 0)), Rangehold.OK);
+        is("with its value alone", x.intentAt(0, 3, 1), 1);
         is("END of what was aborted", answer(x, x.end(it, true, 0, 0)), Rangehold.OK);
         is("tells this", x.transactionAt(it, 0), Rangehold.ABORTED);
         is("agrees", x.agrees(), true);
@@ -657,6 +662,51 @@ public final class PromiseTests {
         is("errors", x.errors(), 0);
     }
 
+    private static void promise12Again() {
+        Rangehold x = alone();
+        int split = x.split(0, 16, 0, 0);
+        x.twice(0);
+        is("SPLIT", answer(x, split), Rangehold.OK);
+        is("once", x.count(3), 2);
+        is("two entries", x.rangeAt(0, 3), 3);
+        is("the range is as the first one left it", x.rangeAt(0, 1), 16);
+        x.pass(9);
+        int first = x.split(0, 16, 1, 0);
+        is("SPLIT at the first key", answer(x, first), Rangehold.WRONG);
+        is("splits nothing off", x.count(3), 2);
+        int freeze = x.freeze(0, 1, 0, 0);
+        is("FREEZE", answer(x, freeze), Rangehold.OK);
+        int join = x.settleJoin(0, Rangehold.JOIN, freeze, 0);
+        is("JOIN is asked for the other range", x.askAt(join, 2), 1);
+        is("JOIN of what does not begin at the end", answer(x, join), Rangehold.WRONG);
+        is("SPLIT of a frozen range", answer(x, x.split(0, 8, 0, 0)), Rangehold.FROZEN);
+        is("splits nothing off", x.count(3), 2);
+        is("CLOSE of a frozen range", answer(x, x.asOf(0, Rangehold.CLOSE, 0, 0, 0, 0)), Rangehold.FROZEN);
+        is("LOOK at a frozen range", answer(x, x.asOf(0, Rangehold.LOOK, 0, 3, 0, 0)), Rangehold.OK);
+        is("LOOK at a key that went", answer(x, x.asOf(0, Rangehold.LOOK, 0, 16, 0, 0)), Rangehold.WRONG);
+        is("errors", x.errors(), 0);
+    }
+
+    private static void promise13Moments() {
+        Rangehold x = alone();
+        answer(x, x.split(0, 16, 0, 0));
+        x.pass(9);
+        answer(x, x.asOf(0, Rangehold.CLOSE, 100, 0, 0, 0));
+        answer(x, x.asOf(0, Rangehold.SWEEP, 50, 0, 0, 0));
+        answer(x, x.asOf(0, Rangehold.CLOSE, 70, 0, 1, 0));
+        answer(x, x.asOf(0, Rangehold.SWEEP, 60, 0, 1, 0));
+        int freeze = x.freeze(0, 0, 1, 0);
+        answer(x, freeze);
+        is("JOIN", answer(x, x.settleJoin(0, Rangehold.JOIN, freeze, 0)), Rangehold.OK);
+        is("the closed moment is the lesser one", x.rangeAt(0, 8), 70);
+        is("the floor is the greater one", x.rangeAt(0, 9), 60);
+        is("the readings of the joined keys are as they were", x.intentAt(0, 16, 3), 71);
+        is("those of the others, too", x.intentAt(0, 15, 3), 101);
+        answer(x, x.split(0, 8, 0, 0));
+        is("a new range has the closed moment", x.rangeAt(2, 8), 70);
+        is("and the floor", x.rangeAt(2, 9), 60);
+    }
+
     private static void promise13Changes() {
         Rangehold x = three();
         x.addNode(0);
@@ -716,6 +766,69 @@ public final class PromiseTests {
         calm(x);
         is("all of them", x.copyAt(3, 0, 3), 7);
         is("it votes, too", x.copyAt(3, 0, 6), 15);
+    }
+
+    /** A member that gets a BASE makes the copies of the ranges that were split off, too. */
+    private static void promise13Base() {
+        Rangehold x = three();
+        x.stop(2, false);
+        answer(x, x.split(0, 16, 0, 0));
+        x.compact(0, 0);
+        x.start(2);
+        is("no copy of the new range", x.nodeAt(2, 3), 1);
+        x.pass(3);
+        x.lose(0);
+        is("a BASE", x.messageAt(0, 0), Rangehold.BASE);
+        x.twice(0);
+        x.lose(0);
+        x.deliver(0);
+        is("the base is laid", x.copyAt(2, 0, 2), 2);
+        is("a copy of the new range", x.nodeAt(2, 3), 2);
+        is("with its members", x.copyAt(2, 1, 6), 7);
+        is("it holds its keys", x.copyAt(2, 1, 2), 0);
+        x.settle(30);
+        is("errors", x.errors(), 0);
+        is("a look at its own state", answer(x, x.asOf(0, Rangehold.LOOK, 0, 16, 1, 2)), Rangehold.OK);
+    }
+
+    private static void promise28Base() {
+        Rangehold x = three();
+        for (int i = 0; i < 4; i++) {
+            answer(x, x.readAsOf(0, 0, 0, 0, 0));
+        }
+        x.pass(3);
+        calm(x);
+        is("node 1 lays its base", x.compact(1, 0), 5);
+        answer(x, x.readAsOf(0, 0, 0, 0, 0));
+        x.stop(2, false);
+        answer(x, x.readAsOf(0, 0, 0, 0, 0));
+        answer(x, x.readAsOf(0, 0, 0, 0, 0));
+        x.stop(0, false);
+        x.start(2);
+        x.pass(12);
+        for (int i = 0; i < 100 && x.copyAt(1, 0, 1) != Rangehold.LEADER; i++) {
+            x.deliver(0);
+        }
+        x.deliver(x.count(9) - 1);
+        is("GOT no", x.messageAt(x.count(9) - 1, 5), 0);
+        while (x.count(9) > 1) {
+            x.lose(0);
+        }
+        x.twice(0);
+        x.twice(0);
+        x.deliver(0);
+        is("ENTRIES behind what it has", x.messageAt(2, 6), 3);
+        x.deliver(0);
+        is("one more ahead of it", x.messageAt(2, 6), 4);
+        x.deliver(0);
+        is("and at last a BASE", x.messageAt(2, 0), Rangehold.BASE);
+        x.deliver(2);
+        is("the base is laid", x.copyAt(2, 0, 2), 5);
+        is("the entry behind it stays", x.copyAt(2, 0, 3), 6);
+        is("the mark is at the base", x.copyAt(2, 0, 4), 5);
+        calm(x);
+        is("it gets the rest", x.copyAt(2, 0, 3), 9);
+        is("errors", x.errors(), 0);
     }
 
     private static void promise14() {
@@ -1785,9 +1898,12 @@ public final class PromiseTests {
         promise11();
         promise11Gone();
         promise12();
+        promise12Again();
         promise13();
+        promise13Moments();
         promise13Changes();
         promise13Next();
+        promise13Base();
         promise14();
         promise14Full();
         promise14Long();
@@ -1813,6 +1929,7 @@ public final class PromiseTests {
         promise28();
         promise28Log();
         promise28Terms();
+        promise28Base();
         promise29();
         promise29Most();
         promise30();
