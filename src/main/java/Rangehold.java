@@ -13,7 +13,19 @@ public final class Rangehold {
     public static final int CALL = 0, VOTE = 1, ENTRIES = 2, BASE = 3, GOT = 4, REQUEST = 5, ANSWER = 6;
 
     private static final int NODES = 5, KEYS = 32, RANGES = 8, TRANSACTIONS = 80, ASKS = 500, PROGRAMS = 6, JOBS = 24;
-    private static final int MESSAGES = 150, BYTES = 1200, LAST_TIME = 5000, FULL_LOG = 40, CARRIED_LOG = 24, SENT_ENTRIES = 4, SETTLED_MESSAGES = 400, KEPT_SILENT = 40, KEPT_HELD = 12, KEPT_EVERY = 10, PUSHED_K = 1000;
+    private static final int MESSAGES = 150, BYTES = 1200, LAST_TIME = 5000, SETTLED_MESSAGES = 400;
+
+    /** Entries: with so many a log is full, with more carried out ones it is compacted, so many are in a message. */
+    private static final int FULL_LOG = 40, CARRIED_LOG = 24, SENT_ENTRIES = 4, FIRST_LOG = 48;
+
+    /** Ticks: a LEADER sends at each third, a copy stands when it was out of touch for longer (by its node), a keeper's. */
+    private static final int SENDS_EVERY = 3, TOUCH = 8, TOUCH_BY_NODE = 3, KEPT_EVERY = 10, KEPT_SILENT = 40, KEPT_OPEN = 13;
+    private static final int KEPT_HELD = 12, KEPT_MEMBERS = 3;
+
+    /** Of moments: so many are in a k, so many k in a tick; clocks differ by so many ticks, a PUSH wins by so many k. */
+    private static final int MOMENTS = 8, TICK_K = 100, MAX_OFFSET = 3, PUSHED_K = 1000;
+
+    /** A set of asks takes so many longs; what a LOST ask has as its answer; far above what any loop needs. */
     private static final int ASK_WORDS = 8, NEVER = LOST - 10, FAR = 1000000;
 
     /** What is left to do for a copy, behind what a message or a tick did to it. */
@@ -55,7 +67,7 @@ public final class Rangehold {
     // ---- nodes
 
     public int addNode(int offset) throws IllegalArgumentException, IllegalStateException {
-        if (offset < -3 || offset > 3) {
+        if (offset < -MAX_OFFSET || offset > MAX_OFFSET) {
             throw new IllegalArgumentException();
         }
         if (nodeCount >= NODES) {
@@ -68,7 +80,7 @@ public final class Rangehold {
 
     public int setClock(int node, int offset) throws IndexOutOfBoundsException, IllegalArgumentException {
         Node it = nodeOf(node);
-        if (offset < -3 || offset > 3) {
+        if (offset < -MAX_OFFSET || offset > MAX_OFFSET) {
             throw new IllegalArgumentException();
         }
         int before = it.offset;
@@ -217,7 +229,7 @@ public final class Rangehold {
     private Transaction newTransaction(Node node, Job job) {
         node.lastK = node.nextK(time);
         moves++;
-        Transaction it = new Transaction(transactionCount, node, 8L * node.lastK + node.number, job, moves);
+        Transaction it = new Transaction(transactionCount, node, (long) MOMENTS * node.lastK + node.number, job, moves);
         transactions[transactionCount] = it;
         transactionCount++;
         return it;
@@ -350,7 +362,7 @@ public final class Rangehold {
 
     private boolean tellIfDue(Transaction it) {
         if (it.toldAt == 0 && it.home.isUp) {
-            boolean isOver = 100L * (time + it.home.offset - 3) > it.moment / 8;
+            boolean isOver = (long) TICK_K * (time + it.home.offset - MAX_OFFSET) > it.moment / MOMENTS;
             if (it.state == ABORTED || it.state == COMMITTED && isOver) {
                 moves++;
                 it.toldAt = moves;
@@ -436,7 +448,7 @@ public final class Rangehold {
     }
 
     private boolean isMoment(long moment) {
-        return moment >= 0 && moment <= 800L * (time + 10);
+        return moment >= 0 && moment <= (long) MOMENTS * TICK_K * (time + 10);
     }
 
     /** The node that asks; this, the range and the node to which it is sent must exist. */
@@ -1155,14 +1167,14 @@ public final class Rangehold {
             return askChange(self, DROP, silent, range, self.number);
         }
         Node fresh = freshNode(members);
-        if (fresh != null && Copy.sizeOf(members) < 3) {
+        if (fresh != null && Copy.sizeOf(members) < KEPT_MEMBERS) {
             return askChange(self, ADD, fresh, range, self.number);
         }
         int middle = copy.state.middleKey();
         if (middle != NONE && rangeNumbers < RANGES) {
             return askSplit(self, middle, range, self.number);
         }
-        long moment = 800L * (time + self.offset - 13);
+        long moment = (long) MOMENTS * TICK_K * (time + self.offset - KEPT_OPEN);
         if (moment > copy.state.closed) {
             return askAsOf(self, CLOSE, moment, NONE, range, self.number);
         }
@@ -1376,9 +1388,9 @@ public final class Rangehold {
         }
         if (copy.role == LEADER) {
             copy.touch = time;
-            return time % 3 == 0 ? SENDS : IDLE;
+            return time % SENDS_EVERY == 0 ? SENDS : IDLE;
         }
-        boolean isOverdue = time - copy.touch > 8 + 3 * copy.home.number;
+        boolean isOverdue = time - copy.touch > TOUCH + TOUCH_BY_NODE * copy.home.number;
         return isOverdue && Copy.isMember(copy.members(), copy.member) ? stand(copy) : IDLE;
     }
 
@@ -1458,7 +1470,7 @@ public final class Rangehold {
             }
         } else if (isOperation && (ask.answer == LATE || ask.answer == GONE)) {
             of.state = DOOMED;
-            of.home.lastK = Math.max(of.home.lastK, (int) (ask.answerValue / 8));
+            of.home.lastK = Math.max(of.home.lastK, (int) (ask.answerValue / MOMENTS));
         } else if (ask.answer == OK && (ask.command == END || ask.command == PUSH)) {
             of.outcome = (int) ask.answerValue;
             of.knownAt |= 1 << ask.home.number;
@@ -1984,7 +1996,7 @@ public final class Rangehold {
         }
 
         int nextK(int time) {
-            return Math.max(lastK + 1, 100 * (time + offset + 3));
+            return Math.max(lastK + 1, TICK_K * (time + offset + MAX_OFFSET));
         }
 
         Copy copyOf(int range) {
@@ -2314,7 +2326,7 @@ public final class Rangehold {
 
         void pushAway(Ask ask, Message reply) {
             Transaction of = ask.transaction;
-            if (of != null && records[of.number] == 0 && ask.moment < of.moment / 8 + PUSHED_K) {
+            if (of != null && records[of.number] == 0 && ask.moment < of.moment / MOMENTS + PUSHED_K) {
                 reply.answer = WAITS;
                 reply.value = of.number;
             } else {
@@ -2530,8 +2542,8 @@ public final class Rangehold {
         long baseMembers;
         final State base;
         int entries;
-        int[] terms = new int[48];
-        Ask[] asks = new Ask[48];
+        int[] terms = new int[FIRST_LOG];
+        Ask[] asks = new Ask[FIRST_LOG];
         int mark, carried, role, touch, votes;
         long carriedMembers;
         final State state;
@@ -2797,8 +2809,8 @@ public final class Rangehold {
         final long firstMembers;
         long members;
         int agreed;
-        int[] terms = new int[64];
-        Ask[] asks = new Ask[64];
+        int[] terms = new int[FIRST_LOG];
+        Ask[] asks = new Ask[FIRST_LOG];
 
         Range(State first, long members) {
             this.first = first;
