@@ -1070,7 +1070,7 @@ class House:
         return t.committed or (t.state == COMMITTED and t.anchor is None)
 
     def askNo(s, a):
-        return a.no if a is not None and a.answer is None else NONE
+        return a.no if s.pending(a) else NONE
 
     def transactionAt(s, t, what):
         t = s.txn(t)
@@ -1203,7 +1203,7 @@ class House:
         s.node(to)
         if a.answer is not None or a.lost:
             ise()
-        s.sendAsk(a, to)
+        s.send(dict(kind=REQUEST, frm=a.node, to=to, r=a.r, ask=a))
 
     def askAt(s, ask, what):
         a = s.theAsk(ask)

@@ -381,9 +381,14 @@ public final class Rangehold {
             case 4: return it.done;
             case 5: return it.isCommitted() ? 1 : 0;
             case 6: return it.toldAt != 0 ? 1 : 0;
-            case 7: return it.ask != null && it.ask.answer < OK ? it.ask.number : NONE;
+            case 7: return numberIfOpen(it.ask);
             default: throw new IllegalArgumentException();
         }
+    }
+
+    /** The number of an ask without an answer; one that is LOST is none, as it cannot be sent again. */
+    private static int numberIfOpen(Ask ask) {
+        return ask != null && ask.answer == NONE ? ask.number : NONE;
     }
 
     public long operationAt(int transaction, int operation, int what) throws IndexOutOfBoundsException, IllegalArgumentException {
@@ -619,8 +624,6 @@ public final class Rangehold {
     private int post(Ask ask, int to) {
         Message it = net.send(REQUEST, ask.home.number, to, ask.range);
         it.ask = ask;
-        ask.sentAt = time;
-        ask.sentTo = to;
         return ask.number;
     }
 
@@ -998,7 +1001,7 @@ public final class Rangehold {
             case 5: return it.fell;
             case 6: return it.transaction == null ? NONE : it.transaction.number;
             case 7: return it.phase;
-            case 8: return it.ask != null && it.ask.answer < OK ? it.ask.number : NONE;
+            case 8: return numberIfOpen(it.ask);
             default: throw new IllegalArgumentException();
         }
     }
@@ -1076,6 +1079,7 @@ public final class Rangehold {
                 break;
         }
         job.ask.job = job;
+        job.sentAt = time;
         job.isWaiting = true;
     }
 
@@ -1128,10 +1132,12 @@ public final class Rangehold {
         return node + 1 < nodeCount ? node + 1 : 0;
     }
 
+    /** Beliefs change with answers alone, so the job sent its ask last to the node that it believes. */
     private void askJobAgain(Job job, Ask ask) {
-        if (time - ask.sentAt >= SENT_AGAIN_AFTER) {
-            int to = nodeBehind(ask.sentTo);
+        if (time - job.sentAt >= SENT_AGAIN_AFTER) {
+            int to = nodeBehind(job.leaders[ask.range]);
             job.leaders[ask.range] = to;
+            job.sentAt = time;
             post(ask, to);
         }
     }
@@ -2922,7 +2928,7 @@ public final class Rangehold {
         /** Of JOIN, REFUSE and THAW the FREEZE; of FREEZE the state as it was frozen. */
         Ask freeze;
         State frozen;
-        int answer = NONE, answerKey = NONE, sentAt, sentTo;
+        int answer = NONE, answerKey = NONE;
         long answerValue;
         long[] found;
         Job job;
@@ -3080,7 +3086,10 @@ public final class Rangehold {
 
         /** Whether it waits for an answer, or rests. */
         boolean isWaiting;
+
+        /** Its latest ask, and when it sent this itself: again() of it does not count. */
         Ask ask;
+        int sentAt;
         Transaction pushed;
         int pushKey, cleanKey;
         final int[] ranges = new int[KEYS];

@@ -438,6 +438,28 @@ public final class PromiseTests {
         x.pass(10);
         x.tell(it);
         is("told", x.transactionAt(it, 6), 1);
+        promise9Lost();
+    }
+
+    private static void promise9Lost() {
+        Rangehold x = three();
+        int writer = x.begin(1);
+        int ender = x.begin(1);
+        answer(x, x.write(ender, 1, 1, 0, 0));
+        int other = x.begin(0);
+        int kept = x.read(other, 2, 0, 0);
+        int write = x.write(writer, 0, 0, 0, 0);
+        int end = x.end(ender, true, 0, 0);
+        is("a WRITE without an answer", x.transactionAt(writer, 7), write);
+        is("an END without an answer", x.transactionAt(ender, 7), end);
+        is("both are LOST", x.stop(1, false), 2);
+        is("a LOST WRITE is no ask without an answer", x.transactionAt(writer, 7), NONE);
+        is("nor is a LOST END", x.transactionAt(ender, 7), NONE);
+        is("that of another node is one still", x.transactionAt(other, 7), kept);
+        x.start(1);
+        calm(x);
+        is("nor is it one when its node is started", x.transactionAt(writer, 7), NONE);
+        is("what was agreed on is committed all the same", x.transactionAt(ender, 5), 1);
     }
 
     // ---- promises 10 to 14
@@ -1503,6 +1525,65 @@ public final class PromiseTests {
         is("agrees", y.agrees(), true);
     }
 
+    private static void promise25Lost() {
+        Rangehold x = with(three(), "tx some{put 1,1;}");
+        x.run(0, 0, 0, 0);
+        x.run(1, 0, 0, 0);
+        int kept = x.jobAt(0, 8);
+        is("both asks are without an answer", x.count(8), 2);
+        is("one is LOST", x.stop(1, false), 1);
+        is("GIVEN_UP", x.jobAt(1, 0), Rangehold.GIVEN_UP);
+        is("a LOST ask is no ask without an answer", x.jobAt(1, 8), NONE);
+        is("that of the other job is one still", x.jobAt(0, 8), kept);
+        x.start(1);
+        x.settle(30);
+        is("it gets no answer", x.jobAt(1, 8), NONE);
+        is("the other job is DONE", x.jobAt(0, 0), Rangehold.DONE);
+    }
+
+    /** A job at node 1 of four, whose first ask was just sent; nobody is a leader, and no copy stands for 11 ticks. */
+    private static Rangehold asking() {
+        Rangehold x = new Rangehold();
+        for (int i = 0; i < 4; i++) {
+            x.addNode(0);
+        }
+        x.found(2);
+        x = with(x, "tx some{get x 1;give x;}");
+        x.run(1, 0, 0, 0);
+        return x;
+    }
+
+    private static void promise25Again() {
+        Rangehold x = asking();
+        x.pass(5);
+        x.again(0, 3);
+        is("the job's own REQUEST and that of again()", x.count(9), 2);
+        x.pass(1);
+        is("the 6 ticks are those of the job", x.count(9), 3);
+        is("the node is behind that of the job", x.messageAt(2, 2), 2);
+        x.pass(3);
+        x.again(0, 0);
+        x.again(0, 0);
+        is("again() twice", x.count(9), 5);
+        x.lose(4);
+        x.lose(3);
+        x.pass(2);
+        is("not ahead of 6 ticks", x.count(9), 3);
+        x.pass(1);
+        is("6 ticks behind its own sending again", x.messageAt(3, 2), 3);
+        x.again(0, 2);
+        x.lose(4);
+        x.pass(6);
+        is("behind the last node 0", x.messageAt(x.count(9) - 1, 2), 0);
+        Rangehold y = asking();
+        y.again(0, 3);
+        y.deliver(1);
+        y.deliver(1);
+        is("the REQUEST of again() is answered", y.askAt(0, 3), Rangehold.NO_COPY);
+        y.pass(1);
+        is("the next node is that behind the believed one", y.messageAt(1, 2), 2);
+    }
+
     private static void promise25Writes() {
         Rangehold x = with(alone(), "tx some{put 9,1;put 4,2;put 9,3;has p 5;put 5,p;del 4;get q 4;give q;}");
         x.run(0, 0, 0, 0);
@@ -1921,6 +2002,8 @@ public final class PromiseTests {
         promise25Many();
         promise25Anew();
         promise25Rests();
+        promise25Lost();
+        promise25Again();
         promise25Writes();
         promise26();
         promise26Adds();
