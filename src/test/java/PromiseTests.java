@@ -1,133 +1,11 @@
-import java.util.NoSuchElementException;
-
 /** For each promise of the document: ordinary inputs, the edges that it names, and wrong inputs. */
-public final class PromiseTests {
-    private static final long ABSENT = Rangehold.ABSENT;
-    private static final int NONE = Rangehold.NONE;
-    private static final Class<?> NO_SUCH_NUMBER = IndexOutOfBoundsException.class;
-    private static final Class<?> BAD_ARGUMENT = IllegalArgumentException.class;
-    private static final Class<?> BAD_STATE = IllegalStateException.class;
-    private static final Class<?> NO_ELEMENT = NoSuchElementException.class;
-    private static int wrong;
-    private static int checks;
-
-    private interface Call {
-        void make();
-    }
-
-    private static void is(String what, long got, long due) {
-        checks++;
-        if (got != due) {
-            wrong++;
-            System.out.println(what + " answered " + got + ", due is " + due);
-        }
-    }
-
-    private static void is(String what, boolean got, boolean due) {
-        is(what, got ? 1 : 0, due ? 1 : 0);
-    }
-
-    private static void fails(String what, Class<?> due, Call call) {
-        checks++;
-        Class<?> got = null;
-        try {
-            call.make();
-        } catch (RuntimeException e) {
-            got = e.getClass();
-        }
-        if (got != due) {
-            wrong++;
-            System.out.println(what + " threw " + got + ", due is " + due);
-        }
-    }
-
-    /** One node that is the leader of the range 0; the time is 9. */
-    private static Rangehold alone() {
-        Rangehold x = new Rangehold();
-        x.addNode(0);
-        x.found(1);
-        x.pass(9);
-        return x;
-    }
-
-    /** Three nodes, node 0 is the leader of the range 0; the net is empty. */
-    private static Rangehold three() {
-        Rangehold x = new Rangehold();
-        x.addNode(0);
-        x.addNode(0);
-        x.addNode(0);
-        x.found(7);
-        x.pass(9);
-        calm(x);
-        return x;
-    }
-
-    /** Delivers all that is in the net, without a tick. */
-    private static void calm(Rangehold x) {
-        for (int i = 0; i < 2000 && x.count(9) > 0; i++) {
-            x.deliver(0);
-        }
-    }
-
-    private static long answer(Rangehold x, int ask) {
-        calm(x);
-        return x.askAt(ask, 3);
-    }
-
-    /** Writes keys in a new transaction of node 0 and commits it; returns its number. */
-    private static int commit(Rangehold x, int range, long... keysAndValues) {
-        int it = x.begin(0);
-        for (int i = 0; i < keysAndValues.length; i += 2) {
-            is("a WRITE", answer(x, x.write(it, (int) keysAndValues[i], keysAndValues[i + 1], range, 0)), Rangehold.OK);
-        }
-        is("an END", answer(x, x.end(it, true, range, 0)), Rangehold.OK);
-        return it;
-    }
-
-    private static void resolveAll(Rangehold x, int it, int range, int... keys) {
-        for (int key : keys) {
-            is("a RESOLVE", answer(x, x.resolve(0, it, key, range, 0)), Rangehold.OK);
-        }
-    }
-
-    private static void put(Rangehold x, String words) {
-        byte[] bytes = new byte[(words.length() + 47) / 48 * 48];
-        for (int i = 0; i < words.length(); i++) {
-            bytes[i] = (byte) words.charAt(i);
-        }
-        for (int i = 0; i < bytes.length; i += 48) {
-            x.type(number(bytes, i), number(bytes, i + 8), number(bytes, i + 16), number(bytes, i + 24), number(bytes, i + 32), number(bytes, i + 40));
-        }
-    }
-
-    private static long number(byte[] bytes, int from) {
-        long it = 0;
-        for (int i = from; i < from + 8; i++) {
-            it = it << 8 | bytes[i] & 255;
-        }
-        return it;
-    }
-
+public final class PromiseTests extends Checks {
     private static String times(String words, int many) {
         StringBuilder all = new StringBuilder();
         for (int i = 0; i < many; i++) {
             all.append(words);
         }
         return all.toString();
-    }
-
-    private static Rangehold with(Rangehold x, String program) {
-        put(x, program);
-        x.load();
-        return x;
-    }
-
-    private static void error(String words, int kind, int place) {
-        Rangehold x = new Rangehold();
-        put(x, words);
-        is("errorKind of " + words, x.errorKind(), kind);
-        is("errorPlace of " + words, x.errorPlace(), place);
-        is("errorKind changes nothing", x.count(18), words.length());
     }
 
     // ---- promises 1 to 5
@@ -147,43 +25,43 @@ public final class PromiseTests {
 
     private static void promise2() {
         Rangehold x = new Rangehold();
-        fails("addNode(-4)", BAD_ARGUMENT, () -> x.addNode(-4));
-        fails("addNode(4)", BAD_ARGUMENT, () -> x.addNode(4));
+        fails("addNode(-4)", BAD_ARGUMENT, x, () -> x.addNode(-4));
+        fails("addNode(4)", BAD_ARGUMENT, x, () -> x.addNode(4));
         for (int i = 0; i < 5; i++) {
             is("addNode", x.addNode(i - 2), i);
             is("a new node is up", x.nodeAt(i, 0), 1);
         }
-        fails("addNode of a 6th", BAD_STATE, () -> x.addNode(0));
-        fails("addNode of a 6th with a bad offset", BAD_ARGUMENT, () -> x.addNode(9));
+        fails("addNode of a 6th", BAD_STATE, x, () -> x.addNode(0));
+        fails("addNode of a 6th with a bad offset", BAD_ARGUMENT, x, () -> x.addNode(9));
         x.pass(10);
         is("setClock", x.setClock(4, -3), 2);
         is("what a clock shows", x.nodeAt(4, 1), 7);
         is("setClock once more", x.setClock(4, 3), -3);
-        fails("setClock of no node", NO_SUCH_NUMBER, () -> x.setClock(5, 9));
-        fails("setClock of node -1", NO_SUCH_NUMBER, () -> x.setClock(-1, 0));
-        fails("setClock with a bad offset", BAD_ARGUMENT, () -> x.setClock(0, 4));
+        fails("setClock of no node", NO_SUCH_NUMBER, x, () -> x.setClock(5, 9));
+        fails("setClock of node -1", NO_SUCH_NUMBER, x, () -> x.setClock(-1, 0));
+        fails("setClock with a bad offset", BAD_ARGUMENT, x, () -> x.setClock(0, 4));
         is("a bad setClock changes nothing", x.nodeAt(0, 1), 8);
     }
 
     private static void promise3() {
         Rangehold x = new Rangehold();
-        fails("found ahead of nodes", BAD_ARGUMENT, () -> x.found(1));
+        fails("found ahead of nodes", BAD_ARGUMENT, x, () -> x.found(1));
         for (int i = 0; i < 3; i++) {
             x.addNode(0);
         }
-        fails("found(0)", BAD_ARGUMENT, () -> x.found(0));
-        fails("found(8)", BAD_ARGUMENT, () -> x.found(8));
-        fails("found(-1)", BAD_ARGUMENT, () -> x.found(-1));
+        fails("found(0)", BAD_ARGUMENT, x, () -> x.found(0));
+        fails("found(8)", BAD_ARGUMENT, x, () -> x.found(8));
+        fails("found(-1)", BAD_ARGUMENT, x, () -> x.found(-1));
         is("stop", x.stop(1, false), 0);
-        fails("found with a node that is down", BAD_ARGUMENT, () -> x.found(3));
+        fails("found with a node that is down", BAD_ARGUMENT, x, () -> x.found(3));
         is("found", x.found(5), 2);
-        fails("found again", BAD_STATE, () -> x.found(1));
-        fails("found again with a node that is down", BAD_ARGUMENT, () -> x.found(2));
+        fails("found again", BAD_STATE, x, () -> x.found(1));
+        fails("found again with a node that is down", BAD_ARGUMENT, x, () -> x.found(2));
         is("copies of a member", x.nodeAt(2, 3), 1);
         is("copies of a node that is no member", x.nodeAt(1, 3), 0);
         is("the members", x.rangeAt(0, 7), 5);
-        fails("stop of no node", NO_SUCH_NUMBER, () -> x.stop(3, false));
-        fails("stop of a node that is down", BAD_STATE, () -> x.stop(1, true));
+        fails("stop of no node", NO_SUCH_NUMBER, x, () -> x.stop(3, false));
+        fails("stop of a node that is down", BAD_STATE, x, () -> x.stop(1, true));
         int it = x.begin(0);
         int ask = x.read(it, 0, 0, 0);
         x.readAsOf(2, 0, 0, 0, 0);
@@ -201,12 +79,12 @@ public final class PromiseTests {
     private static void promise4() {
         Rangehold x = alone();
         commit(x, 0, 3, 33);
-        fails("start of a node that is up", BAD_STATE, () -> x.start(0));
-        fails("start of no node", NO_SUCH_NUMBER, () -> x.start(1));
+        fails("start of a node that is up", BAD_STATE, x, () -> x.start(0));
+        fails("start of no node", NO_SUCH_NUMBER, x, () -> x.start(1));
         is("entries: NOTHING, WRITE, END", x.copyAt(0, 0, 7), 3);
         x.stop(0, false);
         is("the mark on the disk", x.copyAt(0, 0, 4), 0);
-        fails("compact on a node that is down", BAD_STATE, () -> x.compact(0, 0));
+        fails("compact on a node that is down", BAD_STATE, x, () -> x.compact(0, 0));
         is("start", x.start(0), 1);
         is("a started copy is a FOLLOWER", x.copyAt(0, 0, 1), Rangehold.FOLLOWER);
         is("its mark is at its base", x.copyAt(0, 0, 4), 0);
@@ -220,10 +98,10 @@ public final class PromiseTests {
         is("the log is empty", x.copyAt(0, 0, 7), 0);
         is("the last index stays", x.copyAt(0, 0, 3), 4);
         is("what it holds stays", x.heldAt(3), 33);
-        fails("compact of no node", NO_SUCH_NUMBER, () -> x.compact(1, 0));
-        fails("compact of a range that is not there", NO_SUCH_NUMBER, () -> x.compact(0, 1));
+        fails("compact of no node", NO_SUCH_NUMBER, x, () -> x.compact(1, 0));
+        fails("compact of a range that is not there", NO_SUCH_NUMBER, x, () -> x.compact(0, 1));
         x.addNode(0);
-        fails("compact without a copy", BAD_STATE, () -> x.compact(1, 0));
+        fails("compact without a copy", BAD_STATE, x, () -> x.compact(1, 0));
         x.stop(0, true);
         is("start without a disk", x.start(0), 0);
     }
@@ -241,19 +119,19 @@ public final class PromiseTests {
         is("the clock", x.nodeAt(0, 1), -1);
         is("the disk", x.nodeAt(0, 2), 0);
         is("the copies", x.nodeAt(0, 3), 0);
-        fails("nodeAt(1, 9)", NO_SUCH_NUMBER, () -> x.nodeAt(1, 9));
-        fails("nodeAt(0, 5)", BAD_ARGUMENT, () -> x.nodeAt(0, 5));
-        fails("nodeAt(0, -1)", BAD_ARGUMENT, () -> x.nodeAt(0, -1));
-        fails("begin at no node", NO_SUCH_NUMBER, () -> x.begin(1));
+        fails("nodeAt(1, 9)", NO_SUCH_NUMBER, x, () -> x.nodeAt(1, 9));
+        fails("nodeAt(0, 5)", BAD_ARGUMENT, x, () -> x.nodeAt(0, 5));
+        fails("nodeAt(0, -1)", BAD_ARGUMENT, x, () -> x.nodeAt(0, -1));
+        fails("begin at no node", NO_SUCH_NUMBER, x, () -> x.begin(1));
         for (int i = 2; i < 80; i++) {
             is("begin", x.begin(0), i);
         }
-        fails("begin of an 81st", BAD_STATE, () -> x.begin(0));
+        fails("begin of an 81st", BAD_STATE, x, () -> x.begin(0));
         is("moments of one k behind the other", x.transactionAt(79, 2), 8 * 278);
         Rangehold y = new Rangehold();
         y.addNode(0);
         y.stop(0, false);
-        fails("begin at a node that is down", BAD_STATE, () -> y.begin(0));
+        fails("begin at a node that is down", BAD_STATE, y, () -> y.begin(0));
         y.addNode(3);
         y.begin(1);
         is("the moment ends with the node", y.transactionAt(0, 2), 8 * 600 + 1);
@@ -265,17 +143,17 @@ public final class PromiseTests {
         Rangehold x = alone();
         int it = x.begin(0);
         int other = x.begin(0);
-        fails("read of no transaction", NO_SUCH_NUMBER, () -> x.read(2, 0, 0, 0));
-        fails("read in no range", NO_SUCH_NUMBER, () -> x.read(it, 99, 1, 0));
-        fails("read at no node", NO_SUCH_NUMBER, () -> x.read(it, 0, 0, 1));
-        fails("read of key 32", BAD_ARGUMENT, () -> x.read(it, 32, 0, 0));
-        fails("read of key -1", BAD_ARGUMENT, () -> x.read(it, -1, 0, 0));
-        fails("write of no int", BAD_ARGUMENT, () -> x.write(it, 0, 1L << 31, 0, 0));
-        fails("write of key 32", BAD_ARGUMENT, () -> x.write(it, 32, 0, 0, 0));
-        fails("write at no node", NO_SUCH_NUMBER, () -> x.write(it, 32, 0, 0, 5));
+        fails("read of no transaction", NO_SUCH_NUMBER, x, () -> x.read(2, 0, 0, 0));
+        fails("read in no range", NO_SUCH_NUMBER, x, () -> x.read(it, 99, 1, 0));
+        fails("read at no node", NO_SUCH_NUMBER, x, () -> x.read(it, 0, 0, 1));
+        fails("read of key 32", BAD_ARGUMENT, x, () -> x.read(it, 32, 0, 0));
+        fails("read of key -1", BAD_ARGUMENT, x, () -> x.read(it, -1, 0, 0));
+        fails("write of no int", BAD_ARGUMENT, x, () -> x.write(it, 0, 1L << 31, 0, 0));
+        fails("write of key 32", BAD_ARGUMENT, x, () -> x.write(it, 32, 0, 0, 0));
+        fails("write at no node", NO_SUCH_NUMBER, x, () -> x.write(it, 32, 0, 0, 5));
         is("read", x.read(it, 7, 0, 0), 0);
-        fails("read with an ask without an answer", BAD_STATE, () -> x.read(it, 7, 0, 0));
-        fails("write with an ask without an answer", BAD_STATE, () -> x.write(it, 7, 0, 0, 0));
+        fails("read with an ask without an answer", BAD_STATE, x, () -> x.read(it, 7, 0, 0));
+        fails("write with an ask without an answer", BAD_STATE, x, () -> x.write(it, 7, 0, 0, 0));
         is("a READ of nothing", answer(x, 0), Rangehold.OK);
         is("its value", x.askAt(0, 4), ABSENT);
         is("write", x.write(other, 7, Integer.MIN_VALUE, 0, 0), 1);
@@ -284,7 +162,7 @@ public final class PromiseTests {
         is("a WRITE ahead of an intent", answer(x, x.write(it, 7, 5, 0, 0)), Rangehold.LATE);
         is("with the moment of the intent", x.askAt(3, 4), x.transactionAt(other, 2));
         is("it is DOOMED", x.transactionAt(it, 0), Rangehold.DOOMED);
-        fails("read of a DOOMED one", BAD_STATE, () -> x.read(it, 7, 0, 0));
+        fails("read of a DOOMED one", BAD_STATE, x, () -> x.read(it, 7, 0, 0));
         int third = x.begin(0);
         is("a READ behind an intent", answer(x, x.read(third, 7, 0, 0)), Rangehold.WAITS);
         is("with the transaction", x.askAt(4, 4), other);
@@ -305,8 +183,8 @@ public final class PromiseTests {
             y.readAsOf(0, 0, 0, 0, 0);
             y.lose(0);
         }
-        fails("read as a 501st ask", BAD_STATE, () -> y.read(0, 0, 0, 0));
-        fails("write as a 501st ask", BAD_STATE, () -> y.write(0, 0, 0, 0, 0));
+        fails("read as a 501st ask", BAD_STATE, y, () -> y.read(0, 0, 0, 0));
+        fails("write as a 501st ask", BAD_STATE, y, () -> y.write(0, 0, 0, 0, 0));
         is("asks", y.count(7), 500);
     }
 
@@ -316,15 +194,15 @@ public final class PromiseTests {
         resolveAll(x, first, 0, 2, 4, 6, 31);
         int it = x.begin(0);
         is("a WRITE", answer(x, x.write(it, 4, -4, 0, 0)), Rangehold.OK);
-        fails("scan(0, 0)", BAD_ARGUMENT, () -> x.scan(it, 0, 0, 0, 0));
-        fails("scan(0, 33)", BAD_ARGUMENT, () -> x.scan(it, 0, 33, 0, 0));
-        fails("scan(-1, 3)", BAD_ARGUMENT, () -> x.scan(it, -1, 3, 0, 0));
-        fails("scan(32, 32)", BAD_ARGUMENT, () -> x.scan(it, 32, 32, 0, 0));
-        fails("scan in no range", NO_SUCH_NUMBER, () -> x.scan(it, 0, 0, 1, 0));
-        fails("scan of no transaction", NO_SUCH_NUMBER, () -> x.scan(9, 0, 9, 0, 0));
+        fails("scan(0, 0)", BAD_ARGUMENT, x, () -> x.scan(it, 0, 0, 0, 0));
+        fails("scan(0, 33)", BAD_ARGUMENT, x, () -> x.scan(it, 0, 33, 0, 0));
+        fails("scan(-1, 3)", BAD_ARGUMENT, x, () -> x.scan(it, -1, 3, 0, 0));
+        fails("scan(32, 32)", BAD_ARGUMENT, x, () -> x.scan(it, 32, 32, 0, 0));
+        fails("scan in no range", NO_SUCH_NUMBER, x, () -> x.scan(it, 0, 0, 1, 0));
+        fails("scan of no transaction", NO_SUCH_NUMBER, x, () -> x.scan(9, 0, 9, 0, 0));
         int ask = x.scan(it, 1, 32, 0, 0);
-        fails("scanAt ahead of the answer", NO_ELEMENT, () -> x.scanAt(ask, 0, 0));
-        fails("scan with an ask without an answer", BAD_STATE, () -> x.scan(it, 0, 9, 0, 0));
+        fails("scanAt ahead of the answer", NO_ELEMENT, x, () -> x.scanAt(ask, 0, 0));
+        fails("scan with an ask without an answer", BAD_STATE, x, () -> x.scan(it, 0, 9, 0, 0));
         is("a SCAN", answer(x, ask), Rangehold.OK);
         is("its keys", x.scanAt(ask, -7, 0), 3);
         is("covered up to", x.scanAt(ask, 99, 1), 32);
@@ -332,11 +210,11 @@ public final class PromiseTests {
         is("its own value", x.scanAt(ask, 1, 3), -4);
         is("the last key", x.scanAt(ask, 2, 2), 31);
         is("its value", x.scanAt(ask, 2, 3), 310);
-        fails("scanAt behind the keys", NO_ELEMENT, () -> x.scanAt(ask, 3, 2));
-        fails("scanAt ahead of the keys", NO_ELEMENT, () -> x.scanAt(ask, -1, 3));
-        fails("scanAt(.., 4)", BAD_ARGUMENT, () -> x.scanAt(ask, 0, 4));
-        fails("scanAt of no ask", NO_SUCH_NUMBER, () -> x.scanAt(500, 0, 9));
-        fails("scanAt of a WRITE", NO_ELEMENT, () -> x.scanAt(0, 0, 0));
+        fails("scanAt behind the keys", NO_ELEMENT, x, () -> x.scanAt(ask, 3, 2));
+        fails("scanAt ahead of the keys", NO_ELEMENT, x, () -> x.scanAt(ask, -1, 3));
+        fails("scanAt(.., 4)", BAD_ARGUMENT, x, () -> x.scanAt(ask, 0, 4));
+        fails("scanAt of no ask", NO_SUCH_NUMBER, x, () -> x.scanAt(500, 0, 9));
+        fails("scanAt of a WRITE", NO_ELEMENT, x, () -> x.scanAt(0, 0, 0));
         is("all that is covered was read", x.intentAt(0, 17, 3), x.transactionAt(it, 2));
         is("what is ahead was not", x.intentAt(0, 0, 3), 0);
         int other = x.begin(0);
@@ -359,18 +237,18 @@ public final class PromiseTests {
         int gone = x.begin(0);
         is("end without an anchor key", x.end(gone, false, -1, -1), NONE);
         is("ABORTED at once", x.transactionAt(gone, 0), Rangehold.ABORTED);
-        fails("end of an ABORTED one", BAD_STATE, () -> x.end(gone, false, 0, 0));
-        fails("end of no transaction", NO_SUCH_NUMBER, () -> x.end(2, true, 0, 0));
+        fails("end of an ABORTED one", BAD_STATE, x, () -> x.end(gone, false, 0, 0));
+        fails("end of no transaction", NO_SUCH_NUMBER, x, () -> x.end(2, true, 0, 0));
         int it = x.begin(0);
         int write = x.write(it, 1, 11, 0, 0);
-        fails("end with an ask without an answer", BAD_STATE, () -> x.end(it, true, 0, 0));
-        fails("end at no node", NO_SUCH_NUMBER, () -> x.end(it, true, 0, 1));
-        fails("end in no range", NO_SUCH_NUMBER, () -> x.end(it, true, 1, 0));
+        fails("end with an ask without an answer", BAD_STATE, x, () -> x.end(it, true, 0, 0));
+        fails("end at no node", NO_SUCH_NUMBER, x, () -> x.end(it, true, 0, 1));
+        fails("end in no range", NO_SUCH_NUMBER, x, () -> x.end(it, true, 1, 0));
         answer(x, write);
         int ask = x.end(it, true, 0, 0);
         is("ENDING", x.transactionAt(it, 0), Rangehold.ENDING);
         x.lose(0);
-        fails("end again with an ask without an answer", BAD_STATE, () -> x.end(it, true, 0, 0));
+        fails("end again with an ask without an answer", BAD_STATE, x, () -> x.end(it, true, 0, 0));
         x.again(ask, 0);
         is("END", answer(x, ask), Rangehold.OK);
         is("COMMITTED", x.transactionAt(it, 0), Rangehold.COMMITTED);
@@ -384,12 +262,12 @@ public final class PromiseTests {
         x.stop(0, false);
         is("told by an earlier call", x.tell(it), true);
         is("not told on a node that is down", x.tell(empty), false);
-        fails("tell of no transaction", NO_SUCH_NUMBER, () -> x.tell(-1));
+        fails("tell of no transaction", NO_SUCH_NUMBER, x, () -> x.tell(-1));
         Rangehold y = three();
         int third = y.begin(0);
         answer(y, y.write(third, 1, 11, 0, 0));
         is("END at no leader", answer(y, y.end(third, false, 0, 1)), Rangehold.NOT_LEADER);
-        fails("END otherwise", BAD_STATE, () -> y.end(third, true, 0, 0));
+        fails("END otherwise", BAD_STATE, y, () -> y.end(third, true, 0, 0));
         is("END again", answer(y, y.end(third, false, 0, 0)), Rangehold.OK);
         is("ABORTED", y.transactionAt(third, 0), Rangehold.ABORTED);
     }
@@ -402,7 +280,7 @@ public final class PromiseTests {
         is("the ask without an answer", x.transactionAt(it, 7), ask);
         is("the anchor key", x.transactionAt(it, 3), 6);
         is("nothing was done so far", x.transactionAt(it, 4), 0);
-        fails("operationAt of what was not done", NO_SUCH_NUMBER, () -> x.operationAt(it, 0, 0));
+        fails("operationAt of what was not done", NO_SUCH_NUMBER, x, () -> x.operationAt(it, 0, 0));
         answer(x, ask);
         answer(x, x.read(it, 6, 0, 0));
         int other = x.begin(0);
@@ -421,10 +299,10 @@ public final class PromiseTests {
         is("how many keys it has", x.operationAt(it, 2, 2), 1);
         is("the number counts what was not done", x.operationAt(other, 0, 3), 2);
         is("a WRITE of ABSENT", x.operationAt(other, 0, 2), ABSENT);
-        fails("operationAt(.., 4)", BAD_ARGUMENT, () -> x.operationAt(it, 0, 4));
-        fails("operationAt(-1)", NO_SUCH_NUMBER, () -> x.operationAt(it, -1, 9));
-        fails("transactionAt of none", NO_SUCH_NUMBER, () -> x.transactionAt(2, 8));
-        fails("transactionAt(.., 8)", BAD_ARGUMENT, () -> x.transactionAt(it, 8));
+        fails("operationAt(.., 4)", BAD_ARGUMENT, x, () -> x.operationAt(it, 0, 4));
+        fails("operationAt(-1)", NO_SUCH_NUMBER, x, () -> x.operationAt(it, -1, 9));
+        fails("transactionAt of none", NO_SUCH_NUMBER, x, () -> x.transactionAt(2, 8));
+        fails("transactionAt(.., 8)", BAD_ARGUMENT, x, () -> x.transactionAt(it, 8));
         is("the node", x.transactionAt(it, 1), 0);
         is("the moment", x.transactionAt(it, 2), 9600);
         int end = x.end(it, true, 0, 0);
@@ -469,11 +347,11 @@ public final class PromiseTests {
         int it = commit(x, 0, 8, 80);
         resolveAll(x, it, 0, 8);
         long moment = x.transactionAt(it, 2);
-        fails("readAsOf(-1)", BAD_ARGUMENT, () -> x.readAsOf(0, -1, 8, 0, 0));
-        fails("readAsOf behind the time and 10", BAD_ARGUMENT, () -> x.readAsOf(0, 800 * 19 + 1, 8, 0, 0));
-        fails("readAsOf of key 32", BAD_ARGUMENT, () -> x.readAsOf(0, 0, 32, 0, 0));
-        fails("readAsOf at no node", NO_SUCH_NUMBER, () -> x.readAsOf(1, 0, 8, 0, 0));
-        fails("readAsOf in no range", NO_SUCH_NUMBER, () -> x.readAsOf(0, -1, 8, 1, 0));
+        fails("readAsOf(-1)", BAD_ARGUMENT, x, () -> x.readAsOf(0, -1, 8, 0, 0));
+        fails("readAsOf behind the time and 10", BAD_ARGUMENT, x, () -> x.readAsOf(0, 800 * 19 + 1, 8, 0, 0));
+        fails("readAsOf of key 32", BAD_ARGUMENT, x, () -> x.readAsOf(0, 0, 32, 0, 0));
+        fails("readAsOf at no node", NO_SUCH_NUMBER, x, () -> x.readAsOf(1, 0, 8, 0, 0));
+        fails("readAsOf in no range", NO_SUCH_NUMBER, x, () -> x.readAsOf(0, -1, 8, 1, 0));
         int ahead = x.readAsOf(0, moment - 1, 8, 0, 0);
         is("a read as of the moment ahead", answer(x, ahead), Rangehold.OK);
         is("finds nothing", x.askAt(ahead, 4), ABSENT);
@@ -482,10 +360,10 @@ public final class PromiseTests {
         is("finds the value", x.askAt(then, 4), 80);
         is("the reading is one moment later", x.intentAt(0, 8, 3), 800 * 19 + 1);
         is("it has no transaction", x.askAt(then, 5), NONE);
-        fails("asOf(READ)", BAD_ARGUMENT, () -> x.asOf(0, Rangehold.READ, 0, 0, 0, 0));
-        fails("LOOK at key 32", BAD_ARGUMENT, () -> x.asOf(0, Rangehold.LOOK, 0, 32, 0, 0));
-        fails("CLOSE at no moment", BAD_ARGUMENT, () -> x.asOf(0, Rangehold.CLOSE, 800 * 19 + 1, 0, 0, 0));
-        fails("asOf at no node", NO_SUCH_NUMBER, () -> x.asOf(0, Rangehold.CLOSE, 0, 0, 0, 1));
+        fails("asOf(READ)", BAD_ARGUMENT, x, () -> x.asOf(0, Rangehold.READ, 0, 0, 0, 0));
+        fails("LOOK at key 32", BAD_ARGUMENT, x, () -> x.asOf(0, Rangehold.LOOK, 0, 32, 0, 0));
+        fails("CLOSE at no moment", BAD_ARGUMENT, x, () -> x.asOf(0, Rangehold.CLOSE, 800 * 19 + 1, 0, 0, 0));
+        fails("asOf at no node", NO_SUCH_NUMBER, x, () -> x.asOf(0, Rangehold.CLOSE, 0, 0, 0, 1));
         is("LOOK above the closed moment", answer(x, x.asOf(0, Rangehold.LOOK, moment, 8, 0, 0)), Rangehold.UNKNOWN);
         is("CLOSE", answer(x, x.asOf(0, Rangehold.CLOSE, moment, 99, 0, 0)), Rangehold.OK);
         is("the closed moment", x.rangeAt(0, 8), moment);
@@ -506,8 +384,8 @@ public final class PromiseTests {
         is("with the floor", x.askAt(gone, 4), moment);
         is("it reads nothing", x.intentAt(0, 8, 3), 800 * 19 + 1);
         x.stop(0, false);
-        fails("readAsOf at a node that is down", BAD_STATE, () -> x.readAsOf(0, 0, 8, 0, 0));
-        fails("asOf at a node that is down", BAD_STATE, () -> x.asOf(0, Rangehold.LOOK, 0, 8, 0, 0));
+        fails("readAsOf at a node that is down", BAD_STATE, x, () -> x.readAsOf(0, 0, 8, 0, 0));
+        fails("asOf at a node that is down", BAD_STATE, x, () -> x.asOf(0, Rangehold.LOOK, 0, 8, 0, 0));
     }
 
     private static void promise10Sweeps() {
@@ -536,14 +414,14 @@ public final class PromiseTests {
         Rangehold x = alone();
         int empty = x.begin(0);
         int it = x.begin(0);
-        fails("push without an anchor key", BAD_STATE, () -> x.push(0, empty, 0, 0));
+        fails("push without an anchor key", BAD_STATE, x, () -> x.push(0, empty, 0, 0));
         answer(x, x.write(it, 3, 30, 0, 0));
-        fails("push of none", NO_SUCH_NUMBER, () -> x.push(0, 2, 0, 0));
-        fails("push at no node", NO_SUCH_NUMBER, () -> x.push(1, it, 0, 0));
-        fails("push in no range", NO_SUCH_NUMBER, () -> x.push(0, it, 1, 0));
-        fails("resolve ahead of any answer", BAD_STATE, () -> x.resolve(0, it, 3, 0, 0));
-        fails("resolve of key 32", BAD_ARGUMENT, () -> x.resolve(0, it, 32, 0, 0));
-        fails("resolve of none", NO_SUCH_NUMBER, () -> x.resolve(0, 2, 32, 0, 0));
+        fails("push of none", NO_SUCH_NUMBER, x, () -> x.push(0, 2, 0, 0));
+        fails("push at no node", NO_SUCH_NUMBER, x, () -> x.push(1, it, 0, 0));
+        fails("push in no range", NO_SUCH_NUMBER, x, () -> x.push(0, it, 1, 0));
+        fails("resolve ahead of any answer", BAD_STATE, x, () -> x.resolve(0, it, 3, 0, 0));
+        fails("resolve of key 32", BAD_ARGUMENT, x, () -> x.resolve(0, it, 32, 0, 0));
+        fails("resolve of none", NO_SUCH_NUMBER, x, () -> x.resolve(0, 2, 32, 0, 0));
         int early = x.push(0, it, 0, 0);
         is("PUSH of a young one", answer(x, early), Rangehold.WAITS);
         is("with it", x.askAt(early, 4), it);
@@ -567,8 +445,8 @@ public final class PromiseTests {
         is("RESOLVE again", answer(x, x.resolve(0, done, 4, 0, 0)), Rangehold.OK);
         is("changes nothing", x.rangeAt(0, 4), 1);
         x.stop(0, false);
-        fails("push at a node that is down", BAD_STATE, () -> x.push(0, it, 0, 0));
-        fails("resolve at a node that is down", BAD_STATE, () -> x.resolve(0, it, 3, 0, 0));
+        fails("push at a node that is down", BAD_STATE, x, () -> x.push(0, it, 0, 0));
+        fails("resolve at a node that is down", BAD_STATE, x, () -> x.resolve(0, it, 3, 0, 0));
         x.start(0);
         x.pass(10);
         calm(x);
@@ -596,10 +474,10 @@ public final class PromiseTests {
     private static void promise12() {
         Rangehold x = three();
         int it = commit(x, 0, 3, 30, 20, 200);
-        fails("split at key 0", BAD_ARGUMENT, () -> x.split(0, 0, 0, 0));
-        fails("split at key 32", BAD_ARGUMENT, () -> x.split(0, 32, 0, 0));
-        fails("split at no node", NO_SUCH_NUMBER, () -> x.split(3, 0, 0, 0));
-        fails("split of no range", NO_SUCH_NUMBER, () -> x.split(0, 0, 1, 0));
+        fails("split at key 0", BAD_ARGUMENT, x, () -> x.split(0, 0, 0, 0));
+        fails("split at key 32", BAD_ARGUMENT, x, () -> x.split(0, 32, 0, 0));
+        fails("split at no node", NO_SUCH_NUMBER, x, () -> x.split(3, 0, 0, 0));
+        fails("split of no range", NO_SUCH_NUMBER, x, () -> x.split(0, 0, 1, 0));
         int split = x.split(0, 16, 0, 0);
         is("the range is not there until it is agreed on", x.count(3), 1);
         is("SPLIT", answer(x, split), Rangehold.OK);
@@ -618,11 +496,11 @@ public final class PromiseTests {
         for (int i = 3; i < 8; i++) {
             x.split(0, i, 0, 1);
         }
-        fails("split with 8 numbers", BAD_STATE, () -> x.split(0, 5, 0, 0));
+        fails("split with 8 numbers", BAD_STATE, x, () -> x.split(0, 5, 0, 0));
         x.settle(30);
-        fails("freeze into no range", NO_SUCH_NUMBER, () -> x.freeze(0, 2, 1, 0));
-        fails("freeze into itself", BAD_STATE, () -> x.freeze(0, 1, 1, 0));
-        fails("freeze at no node", NO_SUCH_NUMBER, () -> x.freeze(0, 0, 1, 3));
+        fails("freeze into no range", NO_SUCH_NUMBER, x, () -> x.freeze(0, 2, 1, 0));
+        fails("freeze into itself", BAD_STATE, x, () -> x.freeze(0, 1, 1, 0));
+        fails("freeze at no node", NO_SUCH_NUMBER, x, () -> x.freeze(0, 0, 1, 3));
         int freeze = x.freeze(0, 0, 1, leader(x, 1));
         is("FREEZE", answer(x, freeze), Rangehold.OK);
         is("frozen", x.rangeAt(1, 2), 1);
@@ -632,17 +510,8 @@ public final class PromiseTests {
         is("READ in a frozen range", answer(x, x.readAsOf(0, 0, 16, 1, leader(x, 1))), Rangehold.FROZEN);
         is("errors", x.errors(), 0);
         x.stop(0, false);
-        fails("split at a node that is down", BAD_STATE, () -> x.split(0, 5, 0, 0));
-        fails("freeze at a node that is down", BAD_STATE, () -> x.freeze(0, 0, 1, 0));
-    }
-
-    private static int leader(Rangehold x, int range) {
-        for (int node = 0; node < x.count(1); node++) {
-            if (x.nodeAt(node, 0) == 1 && x.copyAt(node, range, 1) == Rangehold.LEADER) {
-                return node;
-            }
-        }
-        return 0;
+        fails("split at a node that is down", BAD_STATE, x, () -> x.split(0, 5, 0, 0));
+        fails("freeze at a node that is down", BAD_STATE, x, () -> x.freeze(0, 0, 1, 0));
     }
 
     private static void promise13() {
@@ -651,14 +520,14 @@ public final class PromiseTests {
         x.pass(9);
         int it = commit(x, 1, 20, 200);
         int freeze = x.freeze(0, 0, 1, 0);
-        fails("JOIN ahead of the answer", BAD_STATE, () -> x.settleJoin(0, Rangehold.JOIN, freeze, 0));
+        fails("JOIN ahead of the answer", BAD_STATE, x, () -> x.settleJoin(0, Rangehold.JOIN, freeze, 0));
         is("FREEZE", answer(x, freeze), Rangehold.OK);
-        fails("settleJoin of a SPLIT", BAD_ARGUMENT, () -> x.settleJoin(0, Rangehold.JOIN, 0, 0));
-        fails("settleJoin(ADD)", BAD_ARGUMENT, () -> x.settleJoin(0, Rangehold.ADD, freeze, 0));
-        fails("settleJoin of no ask", NO_SUCH_NUMBER, () -> x.settleJoin(0, Rangehold.JOIN, 99, 0));
-        fails("settleJoin at no node", NO_SUCH_NUMBER, () -> x.settleJoin(1, Rangehold.JOIN, freeze, 0));
-        fails("settleJoin to no node", NO_SUCH_NUMBER, () -> x.settleJoin(0, Rangehold.ADD, freeze, 1));
-        fails("THAW ahead of a REFUSE", BAD_STATE, () -> x.settleJoin(0, Rangehold.THAW, freeze, 0));
+        fails("settleJoin of a SPLIT", BAD_ARGUMENT, x, () -> x.settleJoin(0, Rangehold.JOIN, 0, 0));
+        fails("settleJoin(ADD)", BAD_ARGUMENT, x, () -> x.settleJoin(0, Rangehold.ADD, freeze, 0));
+        fails("settleJoin of no ask", NO_SUCH_NUMBER, x, () -> x.settleJoin(0, Rangehold.JOIN, 99, 0));
+        fails("settleJoin at no node", NO_SUCH_NUMBER, x, () -> x.settleJoin(1, Rangehold.JOIN, freeze, 0));
+        fails("settleJoin to no node", NO_SUCH_NUMBER, x, () -> x.settleJoin(0, Rangehold.ADD, freeze, 1));
+        fails("THAW ahead of a REFUSE", BAD_STATE, x, () -> x.settleJoin(0, Rangehold.THAW, freeze, 0));
         int refuse = x.settleJoin(0, Rangehold.REFUSE, freeze, 0);
         is("REFUSE is asked for the other range", x.askAt(refuse, 2), 0);
         is("REFUSE", answer(x, refuse), Rangehold.OK);
@@ -732,9 +601,9 @@ public final class PromiseTests {
     private static void promise13Changes() {
         Rangehold x = three();
         x.addNode(0);
-        fails("change at no node", NO_SUCH_NUMBER, () -> x.change(4, true, 3, 0, 0));
-        fails("change of no node", NO_SUCH_NUMBER, () -> x.change(0, true, 4, 0, 0));
-        fails("change of no range", NO_SUCH_NUMBER, () -> x.change(0, true, 3, 1, 0));
+        fails("change at no node", NO_SUCH_NUMBER, x, () -> x.change(4, true, 3, 0, 0));
+        fails("change of no node", NO_SUCH_NUMBER, x, () -> x.change(0, true, 4, 0, 0));
+        fails("change of no range", NO_SUCH_NUMBER, x, () -> x.change(0, true, 3, 1, 0));
         int add = x.change(0, true, 3, 0, 0);
         x.deliver(0);
         is("ADD counts as soon as it is in the log", x.copyAt(0, 0, 6), 15);
@@ -761,7 +630,7 @@ public final class PromiseTests {
         is("a copy on the new disk", x.nodeAt(victim, 3), 1);
         is("errors", x.errors(), 0);
         x.stop(0, false);
-        fails("change at a node that is down", BAD_STATE, () -> x.change(0, true, 0, 0, 1));
+        fails("change at a node that is down", BAD_STATE, x, () -> x.change(0, true, 0, 0, 1));
     }
 
     private static void promise13Next() {
@@ -864,19 +733,19 @@ public final class PromiseTests {
         is("no value", x.askAt(ask, 4), 0);
         is("the transaction", x.askAt(ask, 5), 0);
         is("the key", x.askAt(ask, 6), 5);
-        fails("askAt of none", NO_SUCH_NUMBER, () -> x.askAt(1, 9));
-        fails("askAt(.., 7)", BAD_ARGUMENT, () -> x.askAt(ask, 7));
-        fails("again of none", NO_SUCH_NUMBER, () -> x.again(1, 0));
-        fails("again to no node", NO_SUCH_NUMBER, () -> x.again(ask, 3));
+        fails("askAt of none", NO_SUCH_NUMBER, x, () -> x.askAt(1, 9));
+        fails("askAt(.., 7)", BAD_ARGUMENT, x, () -> x.askAt(ask, 7));
+        fails("again of none", NO_SUCH_NUMBER, x, () -> x.again(1, 0));
+        fails("again to no node", NO_SUCH_NUMBER, x, () -> x.again(ask, 3));
         x.again(ask, 0);
         is("two REQUESTs", x.count(9), 2);
         x.deliver(1);
         is("the other one is answered first", answer(x, ask), Rangehold.NOT_LEADER);
-        fails("again of what has an answer", BAD_STATE, () -> x.again(ask, 0));
+        fails("again of what has an answer", BAD_STATE, x, () -> x.again(ask, 0));
         is("the WRITE was carried out all the same", x.intentAt(0, 5, 0), 0);
         int lost = x.readAsOf(2, 0, 0, 0, 0);
         x.stop(2, false);
-        fails("again of what is LOST", BAD_STATE, () -> x.again(lost, 0));
+        fails("again of what is LOST", BAD_STATE, x, () -> x.again(lost, 0));
         calm(x);
         is("a LOST ask gets no answer", x.askAt(lost, 3), -5);
         x.start(2);
@@ -984,15 +853,15 @@ public final class PromiseTests {
         is("its ask", x.entryAt(2, 0, 2, 2), ask);
         is("the base", x.copyAt(2, 0, 2), 0);
         is("the members", x.copyAt(2, 0, 6), 7);
-        fails("entryAt the base", NO_SUCH_NUMBER, () -> x.entryAt(0, 0, 0, 9));
-        fails("entryAt behind the last", NO_SUCH_NUMBER, () -> x.entryAt(0, 0, 3, 0));
-        fails("entryAt(.., 3)", BAD_ARGUMENT, () -> x.entryAt(0, 0, 1, 3));
-        fails("entryAt of no range", NO_SUCH_NUMBER, () -> x.entryAt(0, 1, 1, 0));
-        fails("copyAt of no node", NO_SUCH_NUMBER, () -> x.copyAt(3, 0, 9));
-        fails("copyAt of no range", NO_SUCH_NUMBER, () -> x.copyAt(0, 8, 0));
-        fails("copyAt(.., 8)", BAD_ARGUMENT, () -> x.copyAt(0, 0, 8));
+        fails("entryAt the base", NO_SUCH_NUMBER, x, () -> x.entryAt(0, 0, 0, 9));
+        fails("entryAt behind the last", NO_SUCH_NUMBER, x, () -> x.entryAt(0, 0, 3, 0));
+        fails("entryAt(.., 3)", BAD_ARGUMENT, x, () -> x.entryAt(0, 0, 1, 3));
+        fails("entryAt of no range", NO_SUCH_NUMBER, x, () -> x.entryAt(0, 1, 1, 0));
+        fails("copyAt of no node", NO_SUCH_NUMBER, x, () -> x.copyAt(3, 0, 9));
+        fails("copyAt of no range", NO_SUCH_NUMBER, x, () -> x.copyAt(0, 8, 0));
+        fails("copyAt(.., 8)", BAD_ARGUMENT, x, () -> x.copyAt(0, 0, 8));
         x.addNode(0);
-        fails("copyAt without a copy", NO_SUCH_NUMBER, () -> x.copyAt(3, 0, 0));
+        fails("copyAt without a copy", NO_SUCH_NUMBER, x, () -> x.copyAt(3, 0, 0));
     }
 
     private static void promise16() {
@@ -1015,15 +884,15 @@ public final class PromiseTests {
         is("its moment", x.versionAt(0, 5, 0, false), x.transactionAt(first, 2));
         is("the newer version", x.versionAt(0, 5, 1, true), 51);
         is("its moment", x.versionAt(0, 5, 1, false), x.transactionAt(second, 2));
-        fails("versionAt behind the last", NO_SUCH_NUMBER, () -> x.versionAt(0, 5, 2, true));
-        fails("versionAt(-1)", NO_SUCH_NUMBER, () -> x.versionAt(0, 5, -1, true));
-        fails("versionAt of key 32", NO_SUCH_NUMBER, () -> x.versionAt(0, 32, 0, true));
-        fails("versionAt of no range", NO_SUCH_NUMBER, () -> x.versionAt(1, 5, 0, true));
-        fails("rangeAt of none", NO_SUCH_NUMBER, () -> x.rangeAt(1, 99));
-        fails("rangeAt of -1", NO_SUCH_NUMBER, () -> x.rangeAt(-1, 0));
-        fails("rangeAt(.., 10)", BAD_ARGUMENT, () -> x.rangeAt(0, 10));
+        fails("versionAt behind the last", NO_SUCH_NUMBER, x, () -> x.versionAt(0, 5, 2, true));
+        fails("versionAt(-1)", NO_SUCH_NUMBER, x, () -> x.versionAt(0, 5, -1, true));
+        fails("versionAt of key 32", NO_SUCH_NUMBER, x, () -> x.versionAt(0, 32, 0, true));
+        fails("versionAt of no range", NO_SUCH_NUMBER, x, () -> x.versionAt(1, 5, 0, true));
+        fails("rangeAt of none", NO_SUCH_NUMBER, x, () -> x.rangeAt(1, 99));
+        fails("rangeAt of -1", NO_SUCH_NUMBER, x, () -> x.rangeAt(-1, 0));
+        fails("rangeAt(.., 10)", BAD_ARGUMENT, x, () -> x.rangeAt(0, 10));
         answer(x, x.split(0, 6, 0, 0));
-        fails("versionAt of a key that went", NO_SUCH_NUMBER, () -> x.versionAt(0, 6, 0, true));
+        fails("versionAt of a key that went", NO_SUCH_NUMBER, x, () -> x.versionAt(0, 6, 0, true));
         is("intents left", x.rangeAt(0, 5), 0);
     }
 
@@ -1039,18 +908,18 @@ public final class PromiseTests {
         for (int what = 0; what < 3; what++) {
             is("without an intent", x.intentAt(0, 5, what), NONE);
         }
-        fails("intentAt(.., 4)", BAD_ARGUMENT, () -> x.intentAt(0, 5, 4));
-        fails("intentAt of key 32", NO_SUCH_NUMBER, () -> x.intentAt(0, 32, 9));
-        fails("intentAt of no range", NO_SUCH_NUMBER, () -> x.intentAt(1, 5, 0));
+        fails("intentAt(.., 4)", BAD_ARGUMENT, x, () -> x.intentAt(0, 5, 4));
+        fails("intentAt of key 32", NO_SUCH_NUMBER, x, () -> x.intentAt(0, 32, 9));
+        fails("intentAt of no range", NO_SUCH_NUMBER, x, () -> x.intentAt(1, 5, 0));
         is("nothing is closed", x.resolved(0, 0), 0);
         answer(x, x.asOf(0, Rangehold.CLOSE, 9000, 0, 0, 0));
         is("closed below the intents", x.resolved(0, 0), 9000);
         answer(x, x.asOf(0, Rangehold.CLOSE, 10000, 0, 0, 0));
         is("closed above the intents", x.resolved(0, 0), 9599);
-        fails("resolved of no node", NO_SUCH_NUMBER, () -> x.resolved(1, 0));
-        fails("resolved of no copy", NO_SUCH_NUMBER, () -> x.resolved(0, 1));
+        fails("resolved of no node", NO_SUCH_NUMBER, x, () -> x.resolved(1, 0));
+        fails("resolved of no copy", NO_SUCH_NUMBER, x, () -> x.resolved(0, 1));
         x.stop(0, false);
-        fails("resolved on a node that is down", BAD_STATE, () -> x.resolved(0, 0));
+        fails("resolved on a node that is down", BAD_STATE, x, () -> x.resolved(0, 0));
     }
 
     private static void promise18() {
@@ -1072,24 +941,24 @@ public final class PromiseTests {
         is("what tells that a key is not there", x.feedAt(0, 0, 0, 2, 3), ABSENT);
         is("since the first moment", x.feedAt(0, 0, early, 0, 0), 1);
         is("since the last moment", x.feedAt(0, 0, late, 0, 0), 0);
-        fails("feedAt behind the last", NO_ELEMENT, () -> x.feedAt(0, 0, 0, 3, 1));
-        fails("feedAt(-1)", NO_ELEMENT, () -> x.feedAt(0, 0, 0, -1, 1));
-        fails("feedAt(.., 4)", BAD_ARGUMENT, () -> x.feedAt(0, 0, -1, 0, 4));
-        fails("feedAt since -1", BAD_STATE, () -> x.feedAt(0, 0, -1, 0, 0));
-        fails("feedAt of no node", NO_SUCH_NUMBER, () -> x.feedAt(1, 0, 0, 0, 9));
-        fails("feedAt of no copy", NO_SUCH_NUMBER, () -> x.feedAt(0, 1, 0, 0, 9));
+        fails("feedAt behind the last", NO_ELEMENT, x, () -> x.feedAt(0, 0, 0, 3, 1));
+        fails("feedAt(-1)", NO_ELEMENT, x, () -> x.feedAt(0, 0, 0, -1, 1));
+        fails("feedAt(.., 4)", BAD_ARGUMENT, x, () -> x.feedAt(0, 0, -1, 0, 4));
+        fails("feedAt since -1", BAD_STATE, x, () -> x.feedAt(0, 0, -1, 0, 0));
+        fails("feedAt of no node", NO_SUCH_NUMBER, x, () -> x.feedAt(1, 0, 0, 0, 9));
+        fails("feedAt of no copy", NO_SUCH_NUMBER, x, () -> x.feedAt(0, 1, 0, 0, 9));
         answer(x, x.asOf(0, Rangehold.SWEEP, early, 0, 0, 0));
-        fails("feedAt since less than the floor", BAD_STATE, () -> x.feedAt(0, 0, early - 1, 0, 0));
+        fails("feedAt since less than the floor", BAD_STATE, x, () -> x.feedAt(0, 0, early - 1, 0, 0));
         is("feedAt since the floor", x.feedAt(0, 0, early, 0, 0), 1);
         is("errors", x.errors(), 0);
         is("ownerOf", x.ownerOf(31), 0);
-        fails("ownerOf(32)", BAD_ARGUMENT, () -> x.ownerOf(32));
-        fails("ownerOf(-1)", BAD_ARGUMENT, () -> x.ownerOf(-1));
+        fails("ownerOf(32)", BAD_ARGUMENT, x, () -> x.ownerOf(32));
+        fails("ownerOf(-1)", BAD_ARGUMENT, x, () -> x.ownerOf(-1));
         answer(x, x.split(0, 31, 0, 0));
         is("the new owner", x.ownerOf(31), 1);
         is("the old owner", x.ownerOf(30), 0);
         x.stop(0, false);
-        fails("feedAt on a node that is down", BAD_STATE, () -> x.feedAt(0, 0, late, 0, 0));
+        fails("feedAt on a node that is down", BAD_STATE, x, () -> x.feedAt(0, 0, late, 0, 0));
         is("what is agreed stays", x.ownerOf(31), 1);
     }
 
@@ -1111,8 +980,8 @@ public final class PromiseTests {
         int second = commit(x, 0, 2, 7);
         is("held by the intent with the greater moment", x.heldAt(2), 7);
         is("the older value", x.valueAt(2, x.transactionAt(second, 2) - 1), 6);
-        fails("valueAt(32)", BAD_ARGUMENT, () -> x.valueAt(32, 0));
-        fails("heldAt(-1)", BAD_ARGUMENT, () -> x.heldAt(-1));
+        fails("valueAt(32)", BAD_ARGUMENT, x, () -> x.valueAt(32, 0));
+        fails("heldAt(-1)", BAD_ARGUMENT, x, () -> x.heldAt(-1));
         answer(x, x.split(0, 1, 0, 0));
         x.pass(9);
         calm(x);
@@ -1145,14 +1014,14 @@ public final class PromiseTests {
                 }
             }
         }
-        fails("piece(6)", BAD_ARGUMENT, () -> x.piece(6));
-        fails("piece(-1)", BAD_ARGUMENT, () -> x.piece(-1));
+        fails("piece(6)", BAD_ARGUMENT, x, () -> x.piece(6));
+        fails("piece(-1)", BAD_ARGUMENT, x, () -> x.piece(-1));
         put(x, times(" ", 1200 - PIECES[2].length()));
-        fails("a piece that is one byte too long", BAD_STATE, () -> x.piece(2));
+        fails("a piece that is one byte too long", BAD_STATE, x, () -> x.piece(2));
         is("changes nothing", x.clearText(), 1200 - PIECES[2].length());
         put(x, times(" ", 1199 - PIECES[2].length()));
         is("a piece that just fits", x.piece(2), 1200);
-        fails("one byte more", BAD_STATE, () -> x.type(0, 0, 0, 0, 0, 1));
+        fails("one byte more", BAD_STATE, x, () -> x.type(0, 0, 0, 0, 0, 1));
         is("no byte more", x.type(0, 0, 0, 0, 0, 0), 1200);
     }
 
@@ -1216,7 +1085,7 @@ public final class PromiseTests {
         is("load of an empty text", x.load(), 0);
         put(x, "tx ab{");
         is("errorPlace at the end", x.errorPlace(), 6);
-        fails("load of an error", BAD_STATE, x::load);
+        fails("load of an error", BAD_STATE, x, x::load);
         is("changes nothing", x.count(18), 6);
         x.clearText();
         x.piece(4);
@@ -1250,7 +1119,7 @@ public final class PromiseTests {
 
     private static void promise23() {
         Rangehold x = new Rangehold();
-        fails("codeLength of none", NO_SUCH_NUMBER, () -> x.codeLength(0));
+        fails("codeLength of none", NO_SUCH_NUMBER, x, () -> x.codeLength(0));
         with(x, "tx ab{} tx cd{c=-1*(a+z)-5/2%3<4; get d 1; has e 2; put 3,4; del 5; give 6; fail;}");
         code(x, 0, 23, 0, 0, 0);
         code(x, 1, 0, 0, 0, 0, 1, 1, 0, 0, 12, 0, 0, 0, 2, 0, 0, 0, 2, 25, 0, 0, 4, 0, 0, 0, 6, 0, 0, 0, 1, 5, 0, 0, 1, 2, 0, 0,
@@ -1264,12 +1133,12 @@ public final class PromiseTests {
             0, 0, 0, 0, 2, 0, 0, 0, 1, 1, 0, 0, 11, 0, 0, 0, 14, 27, 0, 0, 0, 0, 0, 0, 1, 2, 0, 0, 3, 0, 0, 0, 13, 30, 0, 0,
             0, 0, 0, 0, 1, 3, 0, 0, 3, 0, 0, 0,
             0, 0, 0, 0, 2, 0, 0, 0, 14, 37, 0, 0, 0, 0, 0, 0, 1, 0, 0, 0, 3, 0, 0, 0, 13, 30, 0, 0, 23, 0, 0, 0);
-        fails("codeLength(3)", NO_SUCH_NUMBER, () -> x.codeLength(3));
-        fails("codeAt of none", NO_SUCH_NUMBER, () -> x.codeAt(-1, 0, 9));
-        fails("codeAt behind the end", NO_SUCH_NUMBER, () -> x.codeAt(0, 1, 9));
-        fails("codeAt(-1)", NO_SUCH_NUMBER, () -> x.codeAt(0, -1, 0));
-        fails("codeAt(.., 4)", BAD_ARGUMENT, () -> x.codeAt(0, 0, 4));
-        fails("codeAt(.., -1)", BAD_ARGUMENT, () -> x.codeAt(0, 0, -1));
+        fails("codeLength(3)", NO_SUCH_NUMBER, x, () -> x.codeLength(3));
+        fails("codeAt of none", NO_SUCH_NUMBER, x, () -> x.codeAt(-1, 0, 9));
+        fails("codeAt behind the end", NO_SUCH_NUMBER, x, () -> x.codeAt(0, 1, 9));
+        fails("codeAt(-1)", NO_SUCH_NUMBER, x, () -> x.codeAt(0, -1, 0));
+        fails("codeAt(.., 4)", BAD_ARGUMENT, x, () -> x.codeAt(0, 0, 4));
+        fails("codeAt(.., -1)", BAD_ARGUMENT, x, () -> x.codeAt(0, 0, -1));
     }
 
     private static void given(String statements, int a, int b, int due) {
@@ -1291,9 +1160,9 @@ public final class PromiseTests {
         is("given ahead of a trial", x.trialAt(0), 0);
         is("steps ahead of a trial", x.trialAt(1), 0);
         is("keys ahead of a trial", x.trialAt(33), ABSENT);
-        fails("trialAt(34)", BAD_ARGUMENT, () -> x.trialAt(34));
-        fails("trialAt(-1)", BAD_ARGUMENT, () -> x.trialAt(-1));
-        fails("trial of none", NO_SUCH_NUMBER, () -> x.trial(0, 1, 2));
+        fails("trialAt(34)", BAD_ARGUMENT, x, () -> x.trialAt(34));
+        fails("trialAt(-1)", BAD_ARGUMENT, x, () -> x.trialAt(-1));
+        fails("trial of none", NO_SUCH_NUMBER, x, () -> x.trial(0, 1, 2));
         given("", 1, 2, 0);
         given("give a-b*2;", 7, 2, 3);
         given("give 7/-2;", 0, 0, -3);
@@ -1342,9 +1211,9 @@ public final class PromiseTests {
         Rangehold x = new Rangehold();
         x.addNode(0);
         with(x, PIECES[0] + " " + PIECES[4] + " tx none{give b;}");
-        fails("run ahead of a group", BAD_STATE, () -> x.run(0, 0, 0, 0));
-        fails("run of none", NO_SUCH_NUMBER, () -> x.run(0, 3, 0, 0));
-        fails("run at no node", NO_SUCH_NUMBER, () -> x.run(1, 0, 0, 0));
+        fails("run ahead of a group", BAD_STATE, x, () -> x.run(0, 0, 0, 0));
+        fails("run of none", NO_SUCH_NUMBER, x, () -> x.run(0, 3, 0, 0));
+        fails("run at no node", NO_SUCH_NUMBER, x, () -> x.run(1, 0, 0, 0));
         x.found(1);
         x.pass(9);
         commit(x, 0, 1, 5);
@@ -1356,8 +1225,8 @@ public final class PromiseTests {
         is("its transaction", x.jobAt(0, 6), 1);
         is("its ask", x.jobAt(0, 8), x.count(7) - 1);
         is("a READ", x.askAt((int) x.jobAt(0, 8), 0), Rangehold.READ);
-        fails("its transaction is not for read()", BAD_STATE, () -> x.read(1, 0, 0, 0));
-        fails("nor for end()", BAD_STATE, () -> x.end(1, true, 0, 0));
+        fails("its transaction is not for read()", BAD_STATE, x, () -> x.read(1, 0, 0, 0));
+        fails("nor for end()", BAD_STATE, x, () -> x.end(1, true, 0, 0));
         x.deliver(0);
         x.deliver(0);
         is("an intent is in its way", x.jobAt(0, 7), 1);
@@ -1390,9 +1259,9 @@ public final class PromiseTests {
         x.run(0, 0, 1, 2);
         x.stop(0, false);
         is("GIVEN_UP", x.jobAt(3, 0), Rangehold.GIVEN_UP);
-        fails("run at a node that is down", BAD_STATE, () -> x.run(0, 0, 0, 0));
-        fails("jobAt of none", NO_SUCH_NUMBER, () -> x.jobAt(4, 9));
-        fails("jobAt(.., 9)", BAD_ARGUMENT, () -> x.jobAt(0, 9));
+        fails("run at a node that is down", BAD_STATE, x, () -> x.run(0, 0, 0, 0));
+        fails("jobAt of none", NO_SUCH_NUMBER, x, () -> x.jobAt(4, 9));
+        fails("jobAt(.., 9)", BAD_ARGUMENT, x, () -> x.jobAt(0, 9));
         is("agrees", x.agrees(), true);
         is("errors", x.errors(), 0);
     }
@@ -1409,7 +1278,7 @@ public final class PromiseTests {
         is("a job without a transaction FELL", x.jobAt(job, 0), Rangehold.FELL);
         is("with MANY", x.jobAt(job, 5), Rangehold.MANY);
         is("its transaction", x.jobAt(job, 6), NONE);
-        fails("run of a 25th", BAD_STATE, () -> x.run(0, 0, 0, 0));
+        fails("run of a 25th", BAD_STATE, x, () -> x.run(0, 0, 0, 0));
         Rangehold y = with(three(), "tx some{get x 1;put 1,x;give x;}");
         y.run(1, 0, 0, 0);
         is("its leader is its own node at first", y.messageAt(0, 2), 1);
@@ -1437,19 +1306,6 @@ public final class PromiseTests {
         calm(z);
         is("a job without asks FELL", z.jobAt(0, 5), Rangehold.MANY);
         is("its transaction stays as it is", z.transactionAt(0, 0), Rangehold.OPEN);
-    }
-
-    /** Delivers the REQUEST of an ask and its ANSWER ahead of all others. */
-    private static long ahead(Rangehold x, int ask) {
-        for (int kind = Rangehold.REQUEST; kind <= Rangehold.ANSWER; kind++) {
-            for (int i = 0; i < x.count(9); i++) {
-                if (x.messageAt(i, 0) == kind && x.messageAt(i, 4) == ask) {
-                    x.deliver(i);
-                    break;
-                }
-            }
-        }
-        return x.askAt(ask, 3);
     }
 
     private static void promise25Anew() {
@@ -1616,7 +1472,7 @@ public final class PromiseTests {
         Rangehold x = three();
         is("setKeeper", x.setKeeper(0, true), false);
         is("setKeeper again", x.setKeeper(0, true), true);
-        fails("setKeeper of none", NO_SUCH_NUMBER, () -> x.setKeeper(3, true));
+        fails("setKeeper of none", NO_SUCH_NUMBER, x, () -> x.setKeeper(3, true));
         x.pass(1);
         calm(x);
         is("at a tick that can be divided by 10, nothing is to be done ahead of the time 14", x.count(7), 0);
@@ -1637,8 +1493,8 @@ public final class PromiseTests {
         x.pass(10);
         calm(x);
         is("an ADD of a node that is up", x.rangeAt(0, 7), 7);
-        fails("deliver(-1)", BAD_ARGUMENT, () -> x.deliver(-1));
-        fails("deliver(1001)", BAD_ARGUMENT, () -> x.deliver(1001));
+        fails("deliver(-1)", BAD_ARGUMENT, x, () -> x.deliver(-1));
+        fails("deliver(1001)", BAD_ARGUMENT, x, () -> x.deliver(1001));
         is("deliver of nothing", x.deliver(1000), NONE);
         x.readAsOf(0, 0, 0, 0, 0);
         x.readAsOf(0, 0, 0, 0, 1);
@@ -1711,10 +1567,10 @@ public final class PromiseTests {
 
     private static void promise27() {
         Rangehold x = alone();
-        fails("lose(-1)", BAD_ARGUMENT, () -> x.lose(-1));
-        fails("lose(1001)", BAD_ARGUMENT, () -> x.lose(1001));
-        fails("twice(-1)", BAD_ARGUMENT, () -> x.twice(-1));
-        fails("twice(1001)", BAD_ARGUMENT, () -> x.twice(1001));
+        fails("lose(-1)", BAD_ARGUMENT, x, () -> x.lose(-1));
+        fails("lose(1001)", BAD_ARGUMENT, x, () -> x.lose(1001));
+        fails("twice(-1)", BAD_ARGUMENT, x, () -> x.twice(-1));
+        fails("twice(1001)", BAD_ARGUMENT, x, () -> x.twice(1001));
         is("lose of nothing", x.lose(0), NONE);
         is("twice of nothing", x.twice(0), NONE);
         int first = x.readAsOf(0, 1, 0, 0, 0);
@@ -1764,24 +1620,24 @@ public final class PromiseTests {
         x.deliver(0);
         is("ANSWER", x.messageAt(2, 0), Rangehold.ANSWER);
         is("its ask", x.messageAt(2, 4), 0);
-        fails("messageAt behind the last", NO_SUCH_NUMBER, () -> x.messageAt(3, 9));
-        fails("messageAt(-1)", NO_SUCH_NUMBER, () -> x.messageAt(-1, 0));
-        fails("messageAt(.., 7)", BAD_ARGUMENT, () -> x.messageAt(0, 7));
-        fails("pass(0)", BAD_ARGUMENT, () -> x.pass(0));
-        fails("pass(31)", BAD_ARGUMENT, () -> x.pass(31));
+        fails("messageAt behind the last", NO_SUCH_NUMBER, x, () -> x.messageAt(3, 9));
+        fails("messageAt(-1)", NO_SUCH_NUMBER, x, () -> x.messageAt(-1, 0));
+        fails("messageAt(.., 7)", BAD_ARGUMENT, x, () -> x.messageAt(0, 7));
+        fails("pass(0)", BAD_ARGUMENT, x, () -> x.pass(0));
+        fails("pass(31)", BAD_ARGUMENT, x, () -> x.pass(31));
         Rangehold y = new Rangehold();
         for (int i = 0; i < 166; i++) {
             y.pass(30);
         }
-        fails("settle of too many ticks", BAD_STATE, () -> y.settle(21));
+        fails("settle of too many ticks", BAD_STATE, y, () -> y.settle(21));
         is("settle up to the end", y.settle(20), 0);
-        fails("play of too many acts", BAD_STATE, () -> y.play(0, 21));
+        fails("play of too many acts", BAD_STATE, y, () -> y.play(0, 21));
         is("play up to the end does not pass it", y.play(0, 20) <= 5000, true);
         is("pass up to the end", y.pass(5000 - y.count(0)), 5000);
-        fails("pass behind the end", BAD_STATE, () -> y.pass(1));
-        fails("pass of too many behind the end", BAD_ARGUMENT, () -> y.pass(31));
-        fails("settle behind the end", BAD_STATE, () -> y.settle(1));
-        fails("play behind the end", BAD_STATE, () -> y.play(0, 1));
+        fails("pass behind the end", BAD_STATE, y, () -> y.pass(1));
+        fails("pass of too many behind the end", BAD_ARGUMENT, y, () -> y.pass(31));
+        fails("settle behind the end", BAD_STATE, y, () -> y.settle(1));
+        fails("play behind the end", BAD_STATE, y, () -> y.play(0, 1));
     }
 
     private static void promise28Log() {
@@ -1846,8 +1702,8 @@ public final class PromiseTests {
         x.addNode(0);
         x.addNode(0);
         x.found(3);
-        fails("settle(0)", BAD_ARGUMENT, () -> x.settle(0));
-        fails("settle(41)", BAD_ARGUMENT, () -> x.settle(41));
+        fails("settle(0)", BAD_ARGUMENT, x, () -> x.settle(0));
+        fails("settle(41)", BAD_ARGUMENT, x, () -> x.settle(41));
         is("settle lets ticks pass until there is a leader", x.settle(40), 9);
         is("and delivers all", x.count(9), 0);
         is("settle when all is settled", x.settle(40), 0);
@@ -1857,8 +1713,8 @@ public final class PromiseTests {
         x.lose(0);
         is("settle with an ask without an answer", x.settle(4), 4);
         is("does not send it again", x.askAt(open, 3), NONE);
-        fails("play(.., 0)", BAD_ARGUMENT, () -> x.play(1, 0));
-        fails("play(.., 151)", BAD_ARGUMENT, () -> x.play(1, 151));
+        fails("play(.., 0)", BAD_ARGUMENT, x, () -> x.play(1, 0));
+        fails("play(.., 151)", BAD_ARGUMENT, x, () -> x.play(1, 151));
         Rangehold y = three();
         Rangehold z = three();
         int seed = 12345;
@@ -1935,8 +1791,8 @@ public final class PromiseTests {
         is("DONE", x.count(16), 1);
         x.stop(0, false);
         is("leaders on nodes that are up", x.count(12), 0);
-        fails("count(19)", BAD_ARGUMENT, () -> x.count(19));
-        fails("count(-1)", BAD_ARGUMENT, () -> x.count(-1));
+        fails("count(19)", BAD_ARGUMENT, x, () -> x.count(19));
+        fails("count(-1)", BAD_ARGUMENT, x, () -> x.count(-1));
         is("agrees", x.agrees(), true);
     }
 
@@ -2018,9 +1874,6 @@ public final class PromiseTests {
         promise30();
         promise31();
         promise32();
-        System.out.println("PromiseTests: " + checks + " checks, " + wrong + " wrong");
-        if (wrong != 0) {
-            System.exit(1);
-        }
+        finish("PromiseTests");
     }
 }

@@ -1,23 +1,11 @@
 import java.io.IOException;
-import java.lang.reflect.InvocationTargetException;
-import java.lang.reflect.Method;
-import java.lang.reflect.Modifier;
 import java.nio.file.Files;
 import java.nio.file.Path;
-import java.util.HashMap;
 import java.util.List;
-import java.util.Map;
 
 /** Makes the calls of recorded runs, and compares each answer with that of the model (tools/model.py). */
 public final class RecordedRuns {
-    private static final Map<String, Method> METHODS = new HashMap<>();
-
-    public static void main(String[] args) throws IOException, IllegalAccessException {
-        for (Method method : Rangehold.class.getDeclaredMethods()) {
-            if (Modifier.isPublic(method.getModifiers())) {
-                METHODS.put(method.getName(), method);
-            }
-        }
+    public static void main(String[] args) throws IOException {
         List<String> lines = Files.readAllLines(Path.of(args.length > 0 ? args[0] : "src/test/data/runs.txt"));
         Rangehold object = null;
         String run = "";
@@ -46,34 +34,11 @@ public final class RecordedRuns {
         }
     }
 
-    private static String answer(Rangehold object, String[] words) throws IllegalAccessException {
-        Method method = METHODS.get(words[0]);
-        Class<?>[] types = method.getParameterTypes();
-        Object[] arguments = new Object[types.length];
-        for (int i = 0; i < types.length; i++) {
-            long it = Long.parseLong(words[i + 1]);
-            if (types[i] == int.class) {
-                arguments[i] = (int) it;
-            } else if (types[i] == boolean.class) {
-                arguments[i] = it != 0;
-            } else {
-                arguments[i] = it;
-            }
+    private static String answer(Rangehold object, String[] words) {
+        long[] numbers = new long[words.length - 1];
+        for (int i = 0; i < numbers.length; i++) {
+            numbers[i] = Long.parseLong(words[i + 1]);
         }
-        try {
-            Object it = method.invoke(object, arguments);
-            if (it == null) {
-                return "void";
-            }
-            if (it instanceof Boolean) {
-                return (Boolean) it ? "1" : "0";
-            }
-            if (it instanceof Double) {
-                return "" + Double.doubleToLongBits((Double) it);
-            }
-            return it instanceof Float ? "" + Float.floatToIntBits((Float) it) : it.toString();
-        } catch (InvocationTargetException e) {
-            return e.getCause().getClass().getSimpleName();
-        }
+        return Calls.answer(object, words[0], numbers);
     }
 }
