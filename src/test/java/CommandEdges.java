@@ -448,6 +448,7 @@ public final class CommandEdges extends Checks {
         is("of the last key", x.versionAt(1, 31, 0, true), 310);
         is("of the key ahead", x.versionAt(0, 15, 0, true), 150);
         is("intents that stay", x.rangeAt(0, 5), 1);
+        is("an intent that stays has its value", x.intentAt(0, 14, 1), 1);
         is("intents that go", x.intentAt(1, 17, 0), open);
         is("with their anchor key", x.intentAt(1, 17, 2), 14);
         is("with their values", x.intentAt(1, 17, 1), 1);
@@ -551,6 +552,184 @@ public final class CommandEdges extends Checks {
         is("joined", x.rangeAt(0, 1), 32);
         is("a range that was joined stays frozen", x.rangeAt(1, 2), 1);
         is("errors", x.errors(), 0);
+    }
+
+    /** The state that is joined is that of when the FREEZE froze, not of when it was FROZEN. */
+    private static void freezesLater() {
+        Rangehold x = parted();
+        int first = x.freeze(0, 0, 1, 0);
+        is("FREEZE", answer(x, first), OK);
+        int second = x.freeze(0, 0, 1, 0);
+        bring(x, Rangehold.REQUEST, 0);
+        hush(x);
+        is("REFUSE of the first one", settle(x, REFUSE, first), OK);
+        is("THAW", settle(x, THAW, first), OK);
+        int it = commit(x, 1, 20, 200);
+        x.again(second, 0);
+        is("FREEZE by the second one", answer(x, second), OK);
+        is("JOIN", settle(x, JOIN, second), OK);
+        is("what was written between is joined", x.intentAt(0, 20, 0), it);
+        is("and held", x.heldAt(20), 200);
+        is("errors", x.errors(), 0);
+    }
+
+    /** All that a range holds is in a base, and there when its node starts again. */
+    private static Rangehold started(Rangehold x, int range) {
+        x.compact(0, range);
+        x.stop(0, false);
+        x.start(0);
+        x.pass(9);
+        calm(x);
+        is("it leads again", x.copyAt(0, range, 1), Rangehold.LEADER);
+        return x;
+    }
+
+    private static void basesOfKeys() {
+        Rangehold x = alone();
+        x.addNode(3);
+        int[] keys = {0, 7, 31};
+        for (int key : keys) {
+            settled(x, 0, key, key + 1);
+        }
+        int open = x.begin(1);
+        for (int key : keys) {
+            is("an intent", answer(x, x.write(open, key, -key, 0, 0)), OK);
+        }
+        int done = x.begin(1);
+        is("a WRITE", answer(x, x.write(done, 9, 90, 0, 0)), OK);
+        is("END", answer(x, x.end(done, true, 0, 0)), OK);
+        is("CLOSE", close(x, moment(x, done) + 5, 0), OK);
+        is("SWEEP", sweep(x, 70, 0), OK);
+        started(x, 0);
+        is("closed", x.resolved(0, 0), moment(x, open) - 1);
+        is("versions", x.feedAt(0, 0, 70, 0, 0), 3);
+        for (int i = 0; i < keys.length; i++) {
+            is("an intent on " + keys[i], answer(x, x.readAsOf(1, 800 * 16, keys[i], 0, 0)), WAITS);
+            is("of its transaction", value(x), open);
+            is("its own value", answer(x, x.read(open, keys[i], 0, 0)), OK);
+            is("of " + keys[i], value(x), -keys[i]);
+            is("a version", x.feedAt(0, 0, 70, i, 3), keys[i] + 1);
+        }
+        is("a record", answer(x, x.push(1, done, 0, 0)), OK);
+        is("COMMITTED", value(x), Rangehold.COMMITTED);
+        is("RESOLVE", answer(x, x.resolve(1, done, 9, 0, 0)), OK);
+        is("a version", answer(x, x.readAsOf(1, 800 * 20, 9, 0, 0)), OK);
+        is("of its value", value(x), 90);
+        is("the floor", answer(x, x.readAsOf(1, 69, 3, 0, 0)), GONE);
+        is("is 70", value(x), 70);
+        is("errors", x.errors(), 0);
+    }
+
+    private static void basesOfReadings() {
+        Rangehold x = alone();
+        x.addNode(0);
+        int it = x.begin(1);
+        is("a reading", answer(x, x.readAsOf(1, 800 * 19, 0, 0, 0)), OK);
+        is("a reading", answer(x, x.readAsOf(1, 800 * 19, 31, 0, 0)), OK);
+        started(x, 0);
+        is("a WRITE ahead of a reading", answer(x, x.write(it, 31, 1, 0, 0)), LATE);
+        is("its moment", value(x), 800 * 19 + 1);
+    }
+
+    private static void basesOfEpochs() {
+        Rangehold x = alone();
+        x.addNode(0);
+        is("SPLIT", answer(x, x.split(1, 16, 0, 0)), OK);
+        x.pass(9);
+        int first = x.freeze(1, 0, 1, 0);
+        bring(x, Rangehold.REQUEST, 0);
+        hush(x);
+        started(x, 1);
+        is("frozen still", answer(x, x.readAsOf(1, 0, 16, 1, 0)), FROZEN);
+        is("by another epoch", answer(x, x.freeze(1, 0, 1, 0)), FROZEN);
+        started(x, 0);
+        is("REFUSE", answer(x, x.settleJoin(1, REFUSE, first, 0)), OK);
+        started(x, 1);
+        is("THAW", answer(x, x.settleJoin(1, THAW, first, 0)), OK);
+        started(x, 1);
+        x.again(first, 0);
+        is("the greatest epoch", answer(x, first), WRONG);
+        int second = x.freeze(1, 0, 1, 0);
+        is("FREEZE", answer(x, second), OK);
+        started(x, 0);
+        is("JOIN", answer(x, x.settleJoin(1, JOIN, second, 0)), OK);
+        started(x, 0);
+        is("what was joined", answer(x, x.settleJoin(1, REFUSE, second, 0)), JOINED);
+        is("JOIN again", answer(x, x.settleJoin(1, JOIN, second, 0)), OK);
+        is("errors", x.errors(), 0);
+        Rangehold y = alone();
+        y.addNode(0);
+        is("SPLIT", answer(y, y.split(1, 16, 0, 0)), OK);
+        y.pass(9);
+        int freeze = y.freeze(1, 0, 1, 0);
+        is("FREEZE", answer(y, freeze), OK);
+        is("REFUSE", answer(y, y.settleJoin(1, REFUSE, freeze, 0)), OK);
+        started(y, 0);
+        is("what was refused", answer(y, y.settleJoin(1, JOIN, freeze, 0)), REFUSED);
+    }
+
+    /** What was split off is in a base, too: a SPLIT that comes late does nothing else. */
+    private static void basesOfSplits() {
+        Rangehold x = alone();
+        x.addNode(0);
+        int split = x.split(1, 16, 0, 0);
+        bring(x, Rangehold.REQUEST, 0);
+        hush(x);
+        x.pass(9);
+        int freeze = x.freeze(1, 0, 1, 0);
+        is("FREEZE", answer(x, freeze), OK);
+        is("JOIN", answer(x, x.settleJoin(1, JOIN, freeze, 0)), OK);
+        started(x, 0);
+        x.again(split, 0);
+        is("SPLIT again", answer(x, split), OK);
+        is("nothing else", answer(x, x.readAsOf(1, 0, 16, 0, 0)), OK);
+        is("errors", x.errors(), 0);
+    }
+
+    /** The last asks, and asks that are 64 apart, are as all others. */
+    private static void lastAsks() {
+        Rangehold x = alone();
+        int it = x.begin(0);
+        int other = x.begin(0);
+        flood(x, 400);
+        is("a WRITE", write(x, it, 5, 50), OK);
+        flood(x, 464);
+        is("64 asks later", write(x, other, 6, 60), OK);
+        is("END", answer(x, x.end(it, false, 0, 0)), OK);
+        is("RESOLVE", answer(x, x.resolve(0, it, 5, 0, 0)), OK);
+        is("the other one has its value", x.intentAt(0, 6, 1), 1);
+        is("the first one is gone", x.intentAt(0, 5, 1), NONE);
+        flood(x, 496);
+        is("one of the last asks", write(x, other, 31, 310), OK);
+        is("a second value", x.intentAt(0, 31, 1), 1);
+        is("the last but two", answer(x, x.read(other, 31, 0, 0)), OK);
+        is("the own value", value(x), 310);
+        is("END", answer(x, x.end(other, true, 0, 0)), OK);
+        is("the last ask", answer(x, x.resolve(0, other, 31, 0, 0)), OK);
+        is("asks", x.count(7), 500);
+        is("a version", x.versionAt(0, 31, 0, true), 310);
+        is("held", x.heldAt(6), 60);
+        is("errors", x.errors(), 0);
+    }
+
+    private static void lastEpochs() {
+        int[] firsts = {100, 431};
+        for (int first : firsts) {
+            Rangehold x = parted();
+            flood(x, first);
+            int early = x.freeze(0, 0, 1, 0);
+            is("FREEZE", answer(x, early), OK);
+            is("REFUSE", settle(x, REFUSE, early), OK);
+            is("THAW", settle(x, THAW, early), OK);
+            flood(x, first + 64);
+            int late = x.freeze(0, 0, 1, 0);
+            is("64 asks later", late - early, 64);
+            is("FREEZE", answer(x, late), OK);
+            is("JOIN of what was refused", settle(x, JOIN, early), REFUSED);
+            is("JOIN of what was not", settle(x, JOIN, late), OK);
+            is("REFUSE of what was joined", settle(x, REFUSE, late), JOINED);
+            is("REFUSE of what was not", settle(x, REFUSE, early), OK);
+        }
     }
 
     private static void joinsOnce() {
@@ -786,6 +965,19 @@ public final class CommandEdges extends Checks {
         is("errors", x.errors(), 0);
     }
 
+    private static void sweepsEachKey() {
+        for (int key = 0; key < 32; key++) {
+            Rangehold x = alone();
+            settled(x, 0, key, 1);
+            long moment = moment(x, settled(x, 0, key, 2));
+            is("CLOSE", close(x, moment, 0), OK);
+            is("two versions", x.rangeAt(0, 4), 2);
+            is("SWEEP", sweep(x, moment, 0), OK);
+            is("one version of " + key, x.rangeAt(0, 4), 1);
+            is("the greater one", x.versionAt(0, key, 0, true), 2);
+        }
+    }
+
     private static void sweptIntents() {
         Rangehold x = alone();
         int it = commit(x, 0, 5, 50);
@@ -821,6 +1013,13 @@ public final class CommandEdges extends Checks {
         splitAgain();
         splitOfSplit();
         freezes();
+        freezesLater();
+        basesOfKeys();
+        basesOfReadings();
+        basesOfEpochs();
+        basesOfSplits();
+        lastAsks();
+        lastEpochs();
         joinsOnce();
         refusesOnce();
         joinsWhatIsNext();
@@ -831,6 +1030,7 @@ public final class CommandEdges extends Checks {
         scansToTheEnd();
         closes();
         sweeps();
+        sweepsEachKey();
         sweptIntents();
         finish("CommandEdges");
     }

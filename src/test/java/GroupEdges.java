@@ -137,8 +137,12 @@ public final class GroupEdges extends Checks {
         is("another yes", role(x, 0), LEADER);
         int entries = last(x, 0);
         bring(x, CALL, 3);
+        while (x.count(9) > 1) {
+            x.lose(0);
+        }
         bring(x, VOTE, 0);
         is("a VOTE for a LEADER does nothing", last(x, 0), entries);
+        is("and sends nothing", x.count(9), 0);
     }
 
     private static void standsAgain() {
@@ -642,6 +646,14 @@ public final class GroupEdges extends Checks {
         is("the base", x.copyAt(0, 0, 2), 25);
         is("the last index", last(x, 0), 25);
         is("the mark", mark(x, 0), 25);
+        for (int i = 0; i < 24; i++) {
+            is("a READ", answer(x, ask(x, 0)), OK);
+        }
+        x.pass(1);
+        is("24 behind a base are not more than 24", x.copyAt(0, 0, 7), 24);
+        is("a READ", answer(x, ask(x, 0)), OK);
+        x.pass(1);
+        is("25 are", x.copyAt(0, 0, 7), 0);
         Rangehold y = three();
         for (int i = 0; i < 23; i++) {
             is("a READ", answer(y, ask(y, 0)), OK);
@@ -747,7 +759,9 @@ public final class GroupEdges extends Checks {
         }
         int has = last(x, 2);
         is("it has more by now", has > 2, true);
+        int messages = x.count(9);
         bring(x, BASE, 2);
+        is("a BASE is answered", x.count(9), messages);
         said(x, "a mark that is not less than the index of the base", GOT, 1, 1);
         is("the log stays", last(x, 2), has);
         is("the base stays", x.copyAt(2, 0, 2), 2);
@@ -770,6 +784,158 @@ public final class GroupEdges extends Checks {
         is("the entries behind it are gone", last(x, 0), 3);
         is("the mark", mark(x, 0), 3);
         calm(x);
+        is("errors", x.errors(), 0);
+    }
+
+    /** A log of more entries than any array begins with, of many terms, at its LEADER and at who gets it from there. */
+    private static void longLogs() {
+        Rangehold x = three();
+        x.addNode(0);
+        x.stop(2, false);
+        for (int i = 0; i < 39; i++) {
+            x.readAsOf(3, 0, 0, 0, 0);
+            x.deliver(0);
+            hush(x);
+        }
+        for (int i = 0; i < 70; i++) {
+            x.stop(0, false);
+            x.start(0);
+            x.pass(9);
+            bring(x, CALL, 1);
+            bring(x, VOTE, 0);
+            hush(x);
+            is("entries", x.copyAt(0, 0, 7), 41 + i);
+        }
+        longLog(x, 0);
+        x.pass(3);
+        calm(x);
+        longLog(x, 1);
+        is("all is agreed on", x.rangeAt(0, 3), 110);
+        is("as it was carried out", x.errors(), 0);
+        x.start(2);
+        x.pass(3);
+        calm(x);
+        is("a BASE for who was away", x.copyAt(2, 0, 2), 110);
+        is("errors", x.errors(), 0);
+    }
+
+    private static void longLog(Rangehold x, int node) {
+        for (int i = 1; i <= 110; i++) {
+            is("the term of " + i, x.entryAt(node, 0, i, 0), i <= 40 ? 1 : i - 39);
+            is("the ask of " + i, x.entryAt(node, 0, i, 2), i == 1 || i > 40 ? NONE : i - 2);
+            is("the command of " + i, x.entryAt(node, 0, i, 1), i == 1 || i > 40 ? Rangehold.NOTHING : Rangehold.READ);
+        }
+    }
+
+    /** Terms go along when a log is cut, also behind a base. */
+    private static void cutLogs() {
+        Rangehold x = three();
+        is("a READ", answer(x, ask(x, 0)), OK);
+        x.pass(3);
+        calm(x);
+        x.stop(0, false);
+        x.start(0);
+        x.pass(9);
+        bring(x, CALL, 1);
+        bring(x, VOTE, 0);
+        is("node 0 leads by the term 2", term(x, 0), 2);
+        bring(x, ENTRIES, 1);
+        hush(x);
+        is("node 1 has an entry of it", x.entryAt(1, 0, 3, 0), 2);
+        is("compact", x.compact(1, 0), 2);
+        is("its base", x.copyAt(1, 0, 2), 2);
+        is("the entry behind it", x.entryAt(1, 0, 3, 0), 2);
+        is("which is NOTHING", x.entryAt(1, 0, 3, 1), Rangehold.NOTHING);
+        is("one entry", x.copyAt(1, 0, 7), 1);
+        Rangehold y = three();
+        is("a READ", answer(y, ask(y, 0)), OK);
+        is("compact", y.compact(0, 0), 2);
+        appendAlone(y, 0, 5);
+        is("node 0 has", last(y, 0), 7);
+        y.stop(0, false);
+        y.pass(12);
+        calm(y);
+        is("node 1 has", last(y, 1), 3);
+        y.start(0);
+        y.pass(3);
+        bring(y, ENTRIES, 0);
+        is("what stood behind the base is gone", last(y, 0), 3);
+        is("the entry of the term 2", y.entryAt(0, 0, 3, 0), 2);
+        is("one entry", y.copyAt(0, 0, 7), 1);
+        calm(y);
+        is("errors", y.errors(), 0);
+    }
+
+    /** An ADD that is gone from the log with all behind it brings nobody. */
+    private static void cutMembers() {
+        Rangehold x = three();
+        x.addNode(0);
+        appendAlone(x, 0, 2);
+        int add = x.change(1, true, 3, 0, 0);
+        bring(x, REQUEST, 0);
+        hush(x);
+        is("a member by its log", x.copyAt(0, 0, 6), 15);
+        appendAlone(x, 0, 1);
+        is("entries", last(x, 0), 5);
+        x.stop(0, false);
+        x.pass(12);
+        calm(x);
+        is("node 1 leads", role(x, 1), LEADER);
+        x.readAsOf(1, 0, 0, 0, 1);
+        calm(x);
+        x.start(0);
+        x.pass(3);
+        calm(x);
+        is("the log of node 0", last(x, 0), 3);
+        is("the ADD is gone", x.copyAt(0, 0, 6), 7);
+        is("it was never agreed on", x.rangeAt(0, 7), 7);
+        is("and has no answer", x.askAt(add, 3), NONE);
+    }
+
+    /** A BASE behind the base of a copy that has its entry: what is behind it stays. */
+    private static void baseBehindBase() {
+        Rangehold x = three();
+        is("a READ", answer(x, ask(x, 0)), OK);
+        x.pass(3);
+        calm(x);
+        is("node 2 lays its base", x.compact(2, 0), 2);
+        for (int i = 0; i < 3; i++) {
+            is("a READ", answer(x, ask(x, 0)), OK);
+        }
+        x.pass(3);
+        calm(x);
+        is("node 1, too, at another index", x.compact(1, 0), 5);
+        is("a READ", answer(x, ask(x, 0)), OK);
+        x.stop(2, false);
+        is("a READ", answer(x, ask(x, 0)), OK);
+        is("a READ", answer(x, ask(x, 0)), OK);
+        x.stop(0, false);
+        x.start(2);
+        is("node 2 has", last(x, 2), 6);
+        is("its mark is at its base", mark(x, 2), 2);
+        x.pass(12);
+        for (int i = 0; i < 100 && role(x, 1) != LEADER; i++) {
+            x.deliver(0);
+        }
+        bring(x, ENTRIES, 2);
+        said(x, "node 2 lacks the one ahead", GOT, 0, 2);
+        while (x.count(9) > 1) {
+            x.lose(0);
+        }
+        x.twice(0);
+        x.twice(0);
+        for (int i = 0; i < 3; i++) {
+            bring(x, GOT, 1);
+        }
+        is("a GOT no that comes three times leads to the base", messages(x, BASE, 2), 1);
+        bring(x, BASE, 2);
+        said(x, "a BASE", GOT, 1, 2);
+        is("the base", x.copyAt(2, 0, 2), 5);
+        is("the mark", mark(x, 2), 5);
+        is("what is behind it stays", last(x, 2), 6);
+        is("one entry", x.copyAt(2, 0, 7), 1);
+        calm(x);
+        is("it gets the rest", last(x, 2), last(x, 1));
         is("errors", x.errors(), 0);
     }
 
@@ -806,6 +972,161 @@ public final class GroupEdges extends Checks {
         is("a BASE makes a copy", x.nodeAt(2, 3), 1);
         is("with the term that is told", term(x, 2), 1);
         is("ADD", answer(x, add), OK);
+        is("errors", x.errors(), 0);
+    }
+
+    /** A disk with another number is a member as any other one: it stands, votes and leads. */
+    private static void laterDisks() {
+        Rangehold x = nodes(3);
+        for (int node = 0; node < 3; node++) {
+            for (int i = 0; i <= node; i++) {
+                x.stop(node, true);
+                x.start(node);
+            }
+        }
+        x.found(7);
+        x.pass(9);
+        is("it stands", role(x, 0), CANDIDATE);
+        is("for whom it voted", voted(x, 0), 0);
+        is("its CALL comes from", x.messageAt(0, 1), 0);
+        is("and goes to", x.messageAt(1, 2), 2);
+        bring(x, CALL, 2);
+        is("voted for", voted(x, 2), 0);
+        is("the VOTE comes from", x.messageAt(x.count(9) - 1, 1), 2);
+        bring(x, VOTE, 0);
+        is("it leads", role(x, 0), LEADER);
+        is("a READ", answer(x, ask(x, 0)), OK);
+        is("members", x.rangeAt(0, 7), 7);
+        is("ADD of one that is there", answer(x, x.change(0, true, 1, 0, 0)), OK);
+    }
+
+    /** What is made by a BASE has the term 0, and nothing of what was on the old disk. */
+    private static void freshCopies() {
+        Rangehold x = three();
+        for (int i = 0; i < 2; i++) {
+            is("a READ", answer(x, ask(x, 0)), OK);
+        }
+        is("compact", x.compact(0, 0), 3);
+        for (int i = 0; i < 3; i++) {
+            is("a READ", answer(x, ask(x, 0)), OK);
+        }
+        is("node 2 has", last(x, 2), 6);
+        for (int i = 0; i < 60; i++) {
+            x.pass(1);
+            while (message(x, CALL, 0) != NONE) {
+                x.lose(message(x, CALL, 0));
+            }
+            while (message(x, ENTRIES, 2) != NONE) {
+                x.lose(message(x, ENTRIES, 2));
+            }
+            while (message(x, CALL, 1) != NONE) {
+                x.lose(message(x, CALL, 1));
+            }
+            calm(x);
+        }
+        is("node 2 stood again and again", term(x, 2) >= 4, true);
+        is("node 0 leads still", role(x, 0), LEADER);
+        is("by the term 1", term(x, 0), 1);
+        x.stop(2, true);
+        x.start(2);
+        is("DROP", answer(x, x.change(0, false, 2, 0, 0)), OK);
+        int base = x.copyAt(0, 0, 2);
+        int add = x.change(0, true, 2, 0, 0);
+        bring(x, REQUEST, 0);
+        bring(x, ENTRIES, 2);
+        bring(x, GOT, 0);
+        bring(x, BASE, 2);
+        said(x, "a copy of the term 0 takes a BASE of the term 1", GOT, 1, 1);
+        is("its term", term(x, 2), 1);
+        is("its base", x.copyAt(2, 0, 2), base);
+        is("no entries", x.copyAt(2, 0, 7), 0);
+        is("voted for nobody", voted(x, 2), NONE);
+        is("ADD", answer(x, add), OK);
+        is("it has all", last(x, 2), last(x, 0));
+        is("errors", x.errors(), 0);
+    }
+
+    /** A GOT of an old disk is none of a member, though another disk of its node is one. */
+    private static void oldGots() {
+        Rangehold x = three();
+        int read = ask(x, 0);
+        bring(x, REQUEST, 0);
+        bring(x, ENTRIES, 2);
+        int got = message(x, GOT, 0);
+        is("a GOT of node 2", x.messageAt(got, 1), 2);
+        x.twice(got);
+        x.deliver(got);
+        is("agreed on", x.rangeAt(0, 3), 2);
+        x.stop(2, true);
+        x.start(2);
+        int drop = x.change(0, false, 2, 0, 0);
+        while (message(x, REQUEST, 0) != NONE) {
+            bring(x, REQUEST, 0);
+        }
+        while (message(x, ENTRIES, 1) != NONE) {
+            bring(x, ENTRIES, 1);
+        }
+        for (int i = 0; i < x.count(9); i++) {
+            if (x.messageAt(i, 0) == GOT && x.messageAt(i, 1) == 1) {
+                x.deliver(i);
+                i = -1;
+            }
+        }
+        is("dropped", x.rangeAt(0, 7), 3);
+        int add = x.change(0, true, 2, 0, 0);
+        bring(x, REQUEST, 0);
+        is("a member again, by another disk", x.copyAt(0, 0, 6), 7);
+        int many = x.count(9);
+        bring(x, GOT, 0);
+        is("the GOT of the old disk does nothing", x.count(9), many - 1);
+        while (message(x, BASE, 2) == NONE && message(x, ENTRIES, 2) != NONE) {
+            bring(x, ENTRIES, 2);
+            if (message(x, GOT, 0) != NONE) {
+                x.deliver(x.count(9) - 1);
+            }
+        }
+        is("the new disk lacks all: a BASE", message(x, BASE, 2) != NONE, true);
+        is("ADD", answer(x, add), OK);
+        is("DROP", x.askAt(drop, 3), OK);
+        is("READ", x.askAt(read, 3), OK);
+    }
+
+    /** A GOT no that comes late does not sink the next index below what is matched. */
+    private static void lateGots() {
+        Rangehold x = three();
+        x.stop(2, false);
+        for (int i = 0; i < 3; i++) {
+            is("a READ", answer(x, ask(x, 0)), OK);
+        }
+        x.stop(0, false);
+        x.start(0);
+        x.start(2);
+        x.pass(9);
+        bring(x, CALL, 1);
+        bring(x, VOTE, 0);
+        is("node 0 leads", role(x, 0), LEADER);
+        bring(x, ENTRIES, 2);
+        said(x, "node 2 lacks the one ahead", GOT, 0, 2);
+        x.twice(x.count(9) - 1);
+        x.twice(x.count(9) - 1);
+        bring(x, GOT, 0);
+        bring(x, ENTRIES, 2);
+        is("it has all", last(x, 2), 5);
+        int got = x.count(9) - 1;
+        is("GOT yes", x.messageAt(got, 5), 1);
+        x.deliver(got);
+        while (message(x, ENTRIES, 2) != NONE) {
+            x.lose(message(x, ENTRIES, 2));
+        }
+        while (message(x, ENTRIES, 1) != NONE) {
+            x.lose(message(x, ENTRIES, 1));
+        }
+        int sent = x.count(10);
+        bring(x, GOT, 0);
+        is("a GOT no that comes late: nothing is lacking", x.count(10), sent);
+        bring(x, GOT, 0);
+        is("nor the next time", x.count(10), sent);
+        calm(x);
         is("errors", x.errors(), 0);
     }
 
@@ -854,6 +1175,61 @@ public final class GroupEdges extends Checks {
         is("ADD of one that is there", answer(x, x.change(0, true, 1, 0, 0)), OK);
         is("DROP of one that is none", answer(x, x.change(0, false, 3, 0, 0)), OK);
         is("changes nothing", x.rangeAt(0, 7), 3);
+    }
+
+    /** What is above the mark and no ADD or DROP, or at the mark and below, is in nobody's way. */
+    private static void changesAmongOthers() {
+        Rangehold x = three();
+        x.addNode(0);
+        x.addNode(0);
+        is("ADD", answer(x, x.change(0, true, 3, 0, 0)), OK);
+        is("ADD of the last node", answer(x, x.change(0, true, 4, 0, 0)), OK);
+        is("ADD of it again", answer(x, x.change(0, true, 4, 0, 0)), OK);
+        appendAlone(x, 0, 2);
+        is("entries above the mark", last(x, 0) - mark(x, 0), 2);
+        int drop = x.change(0, false, 4, 0, 0);
+        bring(x, REQUEST, 0);
+        is("are no ADD or DROP", x.entryAt(0, 0, last(x, 0), 2), drop);
+        is("DROP", answer(x, drop), OK);
+    }
+
+    /** An ADD of a member does not bring it: it is sent what it lacks. */
+    private static void addsNobody() {
+        Rangehold x = three();
+        x.stop(2, false);
+        is("a READ", answer(x, ask(x, 0)), OK);
+        is("a READ", answer(x, ask(x, 0)), OK);
+        x.change(0, true, 2, 0, 0);
+        bring(x, REQUEST, 0);
+        is("all that it lacks", x.messageAt(message(x, ENTRIES, 2), 6), 3);
+        calm(x);
+        Rangehold y = three();
+        y.stop(1, false);
+        is("a READ", answer(y, ask(y, 0)), OK);
+        y.split(0, 16, 0, 0);
+        bring(y, REQUEST, 0);
+        is("a SPLIT brings no member", y.messageAt(message(y, ENTRIES, 1), 6), 2);
+    }
+
+    /** A LEADER that is one no more, as it carried out its DROP, sends nothing, though others lack entries. */
+    private static void dropsItselfSilently() {
+        Rangehold x = three();
+        x.change(1, false, 0, 0, 0);
+        bring(x, REQUEST, 0);
+        bring(x, ENTRIES, 1);
+        bring(x, ENTRIES, 2);
+        int behind = x.readAsOf(1, 0, 0, 0, 0);
+        bring(x, REQUEST, 0);
+        while (message(x, ENTRIES, 1) != NONE || message(x, ENTRIES, 2) != NONE) {
+            x.lose(message(x, ENTRIES, message(x, ENTRIES, 1) != NONE ? 1 : 2));
+        }
+        bring(x, GOT, 0);
+        is("it leads", role(x, 0), LEADER);
+        is("who lacks the entry behind is sent it", messages(x, ENTRIES, 1), 1);
+        bring(x, GOT, 0);
+        is("it follows", role(x, 0), FOLLOWER);
+        is("who lacks the entry behind is not sent it", messages(x, ENTRIES, 2), 0);
+        is("it has no answer", x.askAt(behind, 3), NONE);
     }
 
     private static void changesOfNewLeader() {
@@ -1015,6 +1391,54 @@ public final class GroupEdges extends Checks {
         is("errors", x.errors(), 0);
     }
 
+    /** A BASE makes the copies of what was split off in its state, and of nothing else. */
+    private static void copiesByBase() {
+        Rangehold x = three();
+        x.stop(2, false);
+        is("SPLIT", answer(x, x.split(0, 24, 0, 0)), OK);
+        is("SPLIT", answer(x, x.split(0, 16, 0, 0)), OK);
+        is("READ", answer(x, ask(x, 0)), OK);
+        x.settle(40);
+        int to = leader(x, 2);
+        is("SPLIT of the range 2", answer(x, x.split(0, 20, 2, to)), OK);
+        is("ranges", x.count(3), 4);
+        is("compact", x.compact(0, 0) > 0, true);
+        is("compact", x.compact(to, 2) > 0, true);
+        x.start(2);
+        is("node 2 has the first range alone", x.nodeAt(2, 3), 1);
+        int copies = 1;
+        for (int i = 0; i < 12 && copies == 1; i++) {
+            x.pass(1);
+            for (int j = 0; j < x.count(9); j++) {
+                if (x.messageAt(j, 3) != 2) {
+                    x.lose(j);
+                    j--;
+                }
+            }
+            for (int j = 0; j < 20 && x.count(9) > 0 && copies == 1; j++) {
+                x.deliver(0);
+                copies = x.nodeAt(2, 3);
+            }
+        }
+        is("a BASE of the range 2 brings it, and the range 3, which was split off from it", copies, 3);
+        is("not the range 1", roleOf(x, 2, 1), NONE);
+        hush(x);
+        for (int i = 0; i < 12 && copies == 3; i++) {
+            x.pass(1);
+            for (int j = 0; j < x.count(9); j++) {
+                if (x.messageAt(j, 3) != 0) {
+                    x.lose(j);
+                    j--;
+                }
+            }
+            calm(x);
+            copies = x.nodeAt(2, 3);
+        }
+        is("a BASE of the range 0 brings the range 1", copies, 4);
+        x.settle(40);
+        is("errors", x.errors(), 0);
+    }
+
     // asks
 
     private static void answersCountOnce() {
@@ -1112,9 +1536,20 @@ public final class GroupEdges extends Checks {
         sendsBase();
         lateBase();
         baseOverFork();
+        longLogs();
+        cutLogs();
+        cutMembers();
+        baseBehindBase();
+        laterDisks();
+        freshCopies();
+        oldGots();
+        lateGots();
         lostDisks();
         noCopies();
         changesLater();
+        changesAmongOthers();
+        addsNobody();
+        dropsItselfSilently();
         changesOfNewLeader();
         fullLog();
         aloneAndNobody();
@@ -1122,6 +1557,7 @@ public final class GroupEdges extends Checks {
         newMemberVotes();
         copiesOfSplits();
         copiesOfSplitsOfMembers();
+        copiesByBase();
         answersCountOnce();
         lostAsks();
         fullNet();

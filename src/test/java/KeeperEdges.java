@@ -14,7 +14,7 @@ public final class KeeperEdges extends Checks {
         int before = x.count(7);
         x.pass(1);
         is("a time that can be divided by 10", x.count(0) % 10, 0);
-        return x.count(7) == before ? NONE : x.askAt(before, 0);
+        return x.count(7) == before ? NONE : x.askAt(lastAsk(x), 0);
     }
 
     private static int lastAsk(Rangehold x) {
@@ -81,44 +81,27 @@ public final class KeeperEdges extends Checks {
         is("its range", y.askAt(lastAsk(y), 2), 0);
     }
 
-    /** Several keepers, each LEADER of a range of its own, by ascending nodes. */
+    /** Two keepers, each LEADER of a range of its own, by ascending nodes. */
     private static void ascendingNodes() {
         Rangehold x = led(2);
         is("SPLIT", answer(x, x.split(0, 16, 0, 0)), OK);
         x.pass(3);
         calm(x);
-        x.stop(0, false);
-        x.pass(15);
-        calm(x);
-        x.start(0);
-        is("node 1 leads none alone", x.count(12), 0);
-        for (int i = 0; i < 60 && x.count(12) < 2; i++) {
-            x.pass(1);
-            int stands = message(x, Rangehold.CALL, 1);
-            if (stands != NONE && x.messageAt(stands, 3) == 0) {
-                x.lose(stands);
-            }
-            stands = message(x, Rangehold.CALL, 0);
-            if (stands != NONE && x.messageAt(stands, 3) == 1) {
-                x.lose(stands);
-            }
-            calm(x);
-        }
-        is("two LEADERs", x.count(12), 2);
+        x.settle(40);
+        is("DROP of node 0", answer(x, x.change(0, false, 0, 1, 0)), OK);
+        passTo(x, x.count(0) + 20);
+        is("node 0 leads the range 0", x.copyAt(0, 0, 1), LEADER);
+        is("node 1 leads the range 1", x.copyAt(1, 1, 1), LEADER);
+        passTo(x, (x.count(0) + 9) / 10 * 10 + 9);
         x.setKeeper(1, true);
         x.setKeeper(0, true);
-        while (x.count(0) % 10 != 9) {
-            x.pass(1);
-            calm(x);
-        }
         int before = x.count(7);
-        x.pass(1);
-        boolean isSplit = x.copyAt(0, 0, 1) == LEADER && x.copyAt(0, 1, 1) == LEADER || x.copyAt(1, 0, 1) == LEADER && x.copyAt(1, 1, 1) == LEADER;
-        is("asks", x.count(7) - before, isSplit ? 1 : 2);
-        if (!isSplit) {
-            is("node 0 ahead", x.askAt(before, 1), 0);
-            is("of node 1", x.askAt(before + 1, 1), 1);
-        }
+        is("the last ask is that of node 1", act(x), ADD);
+        is("each one makes an ask", x.count(7) - before, 2);
+        is("node 0 ahead", x.askAt(before, 1), 0);
+        is("CLOSE", x.askAt(before, 0), CLOSE);
+        is("of node 1", x.askAt(before + 1, 1), 1);
+        is("of the range that it leads", x.askAt(before + 1, 2), 1);
     }
 
     private static void oneAtATime() {
