@@ -168,6 +168,21 @@ public final class JobEdges extends Checks {
         is("it asks no more", x.count(7), 2);
     }
 
+    private static void stopsTheFirst() {
+        Rangehold x = program(alone(), "get x 1;");
+        x.run(0, 0, 0, 0);
+        is("an ask is LOST", x.stop(0, false), 1);
+        is("GIVEN_UP", job(x, 0), GIVEN_UP);
+        is("no ask", ask(x), NONE);
+        is("its transaction", job(x, 6), 0);
+        Rangehold y = program(three(), "get x 1;");
+        y.run(0, 0, 0, 0);
+        y.run(1, 0, 0, 0);
+        y.stop(1, false);
+        is("that of another node RUNS", job(y, 0), RUNS);
+        is("GIVEN_UP", y.jobAt(1, 0), GIVEN_UP);
+    }
+
     private static void falls(String statements, int due) {
         Rangehold x = program(alone(), "put 1,1;" + statements);
         x.run(0, 0, 0, 0);
@@ -756,6 +771,19 @@ public final class JobEdges extends Checks {
         is("agrees", x.agrees(), true);
     }
 
+    /** The first and the last key are as all others. */
+    private static void firstAndLastKeys() {
+        Rangehold x = program(alone(), "scan k v 0,32{s=s+v;put k,v+1;}give s;");
+        settled(x, 0, 0, 5, 31, 70);
+        x.run(0, 0, 0, 0);
+        x.settle(40);
+        is("gave", job(x, 4), 75);
+        is("the first key", x.heldAt(0), 6);
+        is("the last one", x.heldAt(31), 71);
+        is("all is cleaned", x.rangeAt(0, 5), 0);
+        is("versions", x.rangeAt(0, 4), 4);
+    }
+
     private static void settledIn(Rangehold x, int range, int key, long value) {
         settled(x, range, key, value);
     }
@@ -805,6 +833,7 @@ public final class JobEdges extends Checks {
         toldByOthers();
         toldAtOnce();
         stops();
+        stopsTheFirst();
         falls();
         pushes();
         pushesCommitted();
@@ -827,6 +856,7 @@ public final class JobEdges extends Checks {
         believesAnchorKeys();
         askedAnew();
         scansOn();
+        firstAndLastKeys();
         byAscendingJobs();
         ofJobs();
         finish("JobEdges");

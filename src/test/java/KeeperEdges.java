@@ -140,8 +140,10 @@ public final class KeeperEdges extends Checks {
             x.setKeeper(0, true);
             passTo(x, 19);
             flood(x, asks);
+            int messages = x.count(10);
             is("with " + asks + " asks", act(x), asks == 499 ? CLOSE : NONE);
             is("asks", x.count(7), 500);
+            is("messages", x.count(10) - messages, 500 - asks);
         }
     }
 
@@ -257,6 +259,38 @@ public final class KeeperEdges extends Checks {
         is("who is not silent to itself, and nobody is up", act(y), CLOSE);
     }
 
+    private static void dropsNodeZero() {
+        Rangehold x = nodes(3);
+        x.found(6);
+        passTo(x, 20);
+        is("node 1 leads", x.copyAt(1, 0, 1), LEADER);
+        is("ADD of node 0", answer(x, x.change(1, true, 0, 0, 1)), OK);
+        x.stop(0, false);
+        passTo(x, 69);
+        x.setKeeper(1, true);
+        is("DROP", act(x), DROP);
+        calm(x);
+        is("of node 0", x.rangeAt(0, 7), 6);
+    }
+
+    /** One silent member, which is not the LEADER's own node: with 2 members it is dropped, as the only one it is not. */
+    private static void dropsOfTwo() {
+        for (int members = 1; members <= 2; members++) {
+            Rangehold x = led(2);
+            x.stop(1, false);
+            passTo(x, 58);
+            if (members == 1) {
+                x.change(0, false, 0, 0, 0);
+                calm(x);
+            }
+            is("members by its log", Integer.bitCount(x.copyAt(0, 0, 6)), members);
+            passTo(x, 59);
+            x.setKeeper(0, true);
+            is("silent, of " + members, act(x), members == 2 ? DROP : ADD);
+            is("the LEADER is none of them", x.copyAt(0, 0, 1), LEADER);
+        }
+    }
+
     // ADD
 
     private static void adds() {
@@ -339,6 +373,23 @@ public final class KeeperEdges extends Checks {
         splits("all keys", holding(row(0, 32)), 16);
         splits("two rows", holding(0, 1, 2, 3, 4, 5, 6, 25, 26, 27, 28, 29, 30, 31), 7);
         splits("two rows, one more behind", holding(0, 1, 2, 3, 4, 5, 6, 24, 25, 26, 27, 28, 29, 30, 31), 25);
+    }
+
+    /** Versions of one transaction, which is the first one. */
+    private static void splittingFirstVersions() {
+        Rangehold x = alone();
+        int it = x.begin(0);
+        for (int key = 4; key < 17; key++) {
+            is("a WRITE", answer(x, x.write(it, key, 1, 0, 0)), OK);
+        }
+        is("END", answer(x, x.end(it, true, 0, 0)), OK);
+        for (int key = 4; key < 17; key++) {
+            resolveAll(x, it, 0, key);
+        }
+        is("13 versions", x.rangeAt(0, 4), 13);
+        passTo(x, 19);
+        x.setKeeper(0, true);
+        splits("7 of them are ahead of", x, 11);
     }
 
     /** Versions count, too, and one key can have many of them. */
@@ -499,8 +550,11 @@ public final class KeeperEdges extends Checks {
         silentFromTheFirst();
         silentFromTheAdd();
         drops();
+        dropsNodeZero();
+        dropsOfTwo();
         adds();
         splitting();
+        splittingFirstVersions();
         splittingVersions();
         splittingAtTheEnd();
         splittingNumbers();

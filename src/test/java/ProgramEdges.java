@@ -516,6 +516,7 @@ public final class ProgramEdges extends Checks {
         }
         settled(x, 0, 4, 40, 5, 50);
         commit(x, 0, 6, 60);
+        commit(x, 0, 0, 9);
         is("an intent that is not committed", answer(x, x.write(x.begin(0), 7, 70, 0, 0)), OK);
         String before = Snapshot.of(x);
         is("a trial", x.trial(0, 5, 0), 0);
@@ -523,6 +524,7 @@ public final class ProgramEdges extends Checks {
         is("what it put", x.trialAt(2 + 5), 51);
         is("what it took away", x.trialAt(2 + 4), ABSENT);
         is("what it left", x.trialAt(2 + 6), 60);
+        is("the first key", x.trialAt(2), 9);
         is("what is not committed is not there", x.trialAt(2 + 7), ABSENT);
         is("what it put", x.trialAt(2 + 30), 7);
         is("the last key", x.trialAt(33), ABSENT);

@@ -813,6 +813,7 @@ public final class PromiseTests extends Checks {
         x.pass(3);
         calm(x);
         is("all is agreed on", x.rangeAt(0, 3), 100);
+        is("as it was carried out", x.errors(), 0);
         is("readings of a LEADER that stopped are LOST", x.count(8), 0);
         x.pass(1);
         is("the log is compacted", x.copyAt(0, 0, 7), 0);

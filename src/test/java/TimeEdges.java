@@ -170,6 +170,66 @@ public final class TimeEdges extends Checks {
         is("the one that was chosen, too", x.messageAt(4, 4), 4);
     }
 
+    /** What is sent once more is like it in all: a house in which only the like ones arrive goes on as one without them. */
+    private static void likes() {
+        Rangehold x = new Rangehold();
+        Rangehold y = new Rangehold();
+        for (Rangehold it : new Rangehold[] {x, y}) {
+            boolean byLikes = it == y;
+            for (int i = 0; i < 4; i++) {
+                it.addNode(i - 1);
+            }
+            it.found(7);
+            with(it, "tx ab{scan k v 0,32{s=s+v;}put 9,s;get x 30;put 3,x+1;give s;}");
+            it.setKeeper(1, true);
+            passBy(it, 12, byLikes);
+            int first = it.begin(1);
+            int leader = leader(it, 0);
+            for (int key = 0; key < 32; key += 5) {
+                it.write(first, key, 100 + key, 0, leader);
+                passBy(it, 1, byLikes);
+            }
+            it.read(first, 30, 0, leader);
+            passBy(it, 1, byLikes);
+            it.scan(first, 0, 32, 0, leader);
+            passBy(it, 1, byLikes);
+            it.stop(3 - leader, false);
+            it.end(first, true, 0, leader);
+            passBy(it, 1, byLikes);
+            it.run(2 - leader / 2, 0, 0, 0);
+            it.run(leader, 0, 0, 0);
+            it.asOf(0, Rangehold.LOOK, 800, 5, 0, leader);
+            it.compact(leader, 0);
+            it.change(leader, true, 3, 0, leader);
+            passBy(it, 30, byLikes);
+            it.start(3 - leader);
+            it.split(leader, 16, 0, leader(it, 0));
+            passBy(it, 40, byLikes);
+            is("all is well", it.errors(), 0);
+            is("asks", it.count(7) > 40, true);
+        }
+        String[] one = Snapshot.of(x).split("\n");
+        String[] other = Snapshot.of(y).split("\n");
+        is("lines", one.length, other.length);
+        for (int i = 1; i < one.length && i < other.length; i++) {
+            is(one[i] + " is " + other[i], one[i].equals(other[i]), true);
+        }
+        is("messages in the net", x.count(9), y.count(9));
+    }
+
+    private static void passBy(Rangehold x, int ticks, boolean byLikes) {
+        for (int tick = 0; tick < ticks; tick++) {
+            x.pass(1);
+            for (int i = 0; i < 4000 && x.count(9) > 0; i++) {
+                if (byLikes) {
+                    x.twice(0);
+                    x.lose(0);
+                }
+                x.deliver(byLikes ? x.count(9) - 1 : 0);
+            }
+        }
+    }
+
     // time
 
     private static void passing() {
@@ -214,6 +274,20 @@ public final class TimeEdges extends Checks {
         is("until another one leads", x.count(12), 1);
         is("some ticks", ticks > 0 && ticks < 40, true);
         is("settled", x.settle(1), 0);
+    }
+
+    private static void settlingTheLastTick() {
+        Rangehold x = nodes(3);
+        x.found(7);
+        is("nobody stands", x.settle(8), 8);
+        is("the last tick", x.settle(1), 1);
+        is("what it sent was delivered", x.count(9), 0);
+        is("so there is a LEADER", x.count(12), 1);
+        Rangehold y = alone();
+        int ask = y.readAsOf(0, 0, 0, 0, 0);
+        y.lose(0);
+        is("the first ask", ask, 0);
+        is("has no answer: all ticks", y.settle(7), 7);
     }
 
     private static void settlingJobs() {
@@ -384,6 +458,24 @@ public final class TimeEdges extends Checks {
         counts("a LOST ask", x, 8, 0, 7, 9);
     }
 
+    private static void countsOfTheFirst() {
+        Rangehold x = with(alone(), "tx ab{give 1;}");
+        int ask = x.readAsOf(0, 0, 0, 0, 0);
+        counts("the first ask", x, 7, 1, 8, 1, 14, 0);
+        is("OK", answer(x, ask), OK);
+        counts("its answer", x, 8, 0, 14, 1);
+        x.begin(0);
+        x.end(0, true, 0, 0);
+        counts("the first transaction", x, 4, 1, 5, 1, 6, 0);
+        x.pass(8);
+        x.tell(0);
+        counts("told", x, 6, 1);
+        x.run(0, 0, 0, 0);
+        counts("the first job", x, 15, 1, 16, 0);
+        x.pass(20);
+        counts("DONE", x, 15, 1, 16, 1, 6, 2);
+    }
+
     private static void lostCounts() {
         Rangehold x = six();
         x.lose(0);
@@ -447,13 +539,16 @@ public final class TimeEdges extends Checks {
         choices();
         kinds();
         fullTwice();
+        likes();
         passing();
         settling();
+        settlingTheLastTick();
         settlingJobs();
         settlingMany();
         settlingJustSo();
         playing();
         counting();
+        countsOfTheFirst();
         lostCounts();
         shares();
         means();

@@ -409,6 +409,119 @@ public final class TransactionEdges extends Checks {
         is("errors", x.errors(), 0);
     }
 
+    /** The first key is as all others. */
+    private static void feedsOfTheFirstKey() {
+        Rangehold x = alone();
+        int[] keys = {0, 31, 0, 0, 16};
+        long[] moments = new long[keys.length];
+        for (int i = 0; i < keys.length; i++) {
+            moments[i] = moment(x, settled(x, 0, keys[i], i));
+        }
+        is("CLOSE", close(x, moments[4], 0), OK);
+        is("versions", feed(x, 0, 0, 0), 5);
+        for (int i = 0; i < keys.length; i++) {
+            is("moment " + i, feed(x, 0, i, 1), moments[i]);
+            is("key " + i, feed(x, 0, i, 2), keys[i]);
+            is("value " + i, feed(x, 0, i, 3), i);
+        }
+        is("since the second one", feed(x, moments[1], 0, 2), 0);
+        is("with its value", feed(x, moments[1], 0, 3), 2);
+    }
+
+    /** An answer that has no value tells none, whatever was answered ahead of it. */
+    private static void answersWithoutValues() {
+        Rangehold x = alone();
+        x.addNode(0);
+        settled(x, 0, 5, 77);
+        int holder = x.begin(0);
+        is("an intent", answer(x, x.write(holder, 6, 60, 0, 0)), OK);
+        for (int i = 0; i < 4; i++) {
+            is("a READ", answer(x, x.readAsOf(0, 800 * 15, 5, 0, 0)), OK);
+            is("with a value", value(x), 77);
+            is("NO_COPY", answer(x, x.readAsOf(0, 800 * 15, 5, 0, 1)), NO_COPY);
+            is("without a value", value(x), 0);
+            is("a READ that waits", answer(x, x.readAsOf(0, 800 * 15, 6, 0, 0)), WAITS);
+            is("with a transaction", value(x), holder);
+            is("CLOSE", close(x, 0, 0), OK);
+            is("without a value", value(x), 0);
+            is("a LOOK", answer(x, x.asOf(0, Rangehold.LOOK, 0, 5, 0, 0)), OK);
+            is("of nothing", value(x), ABSENT);
+            is("a LOOK above what is closed", answer(x, x.asOf(0, Rangehold.LOOK, 1, 5, 0, 0)), UNKNOWN);
+            is("without a value", value(x), 0);
+        }
+    }
+
+    /** What askAt() tells of each command. */
+    private static void askRows() {
+        Rangehold x = alone();
+        int it = x.begin(0);
+        int write = x.write(it, 7, 1, 0, 0);
+        row(x, write, Rangehold.WRITE, 0, NONE, 0, it, 7);
+        is("OK", answer(x, write), OK);
+        row(x, write, Rangehold.WRITE, 0, OK, 0, it, 7);
+        int read = x.read(it, 31, 0, 0);
+        is("OK", answer(x, read), OK);
+        row(x, read, Rangehold.READ, 0, OK, ABSENT, it, 31);
+        int scan = x.scan(it, 0, 32, 0, 0);
+        is("OK", answer(x, scan), OK);
+        row(x, scan, Rangehold.SCAN, 0, OK, 1, it, 0);
+        int push = x.push(0, it, 0, 0);
+        is("WAITS", answer(x, push), WAITS);
+        row(x, push, Rangehold.PUSH, 0, WAITS, it, it, NONE);
+        int end = x.end(it, true, 0, 0);
+        is("OK", answer(x, end), OK);
+        row(x, end, Rangehold.END, 0, OK, COMMITTED, it, NONE);
+        int resolve = x.resolve(0, it, 7, 0, 0);
+        is("OK", answer(x, resolve), OK);
+        row(x, resolve, Rangehold.RESOLVE, 0, OK, 0, it, 7);
+        int asOf = x.readAsOf(0, 800 * 18, 7, 0, 0);
+        is("OK", answer(x, asOf), OK);
+        row(x, asOf, Rangehold.READ, 0, OK, 1, NONE, 7);
+        int close = x.asOf(0, Rangehold.CLOSE, 800 * 18, 7, 0, 0);
+        is("OK", answer(x, close), OK);
+        row(x, close, Rangehold.CLOSE, 0, OK, 0, NONE, NONE);
+        int sweep = x.asOf(0, Rangehold.SWEEP, 800 * 18, 7, 0, 0);
+        is("OK", answer(x, sweep), OK);
+        row(x, sweep, Rangehold.SWEEP, 0, OK, 0, NONE, NONE);
+        int look = x.asOf(0, Rangehold.LOOK, 800 * 18, 7, 0, 0);
+        is("OK", answer(x, look), OK);
+        row(x, look, Rangehold.LOOK, 0, OK, 1, NONE, 7);
+        int gone = x.asOf(0, Rangehold.LOOK, 800 * 18 - 1, 0, 0, 0);
+        is("GONE", answer(x, gone), GONE);
+        row(x, gone, Rangehold.LOOK, 0, GONE, 800 * 18, NONE, 0);
+        int split = x.split(0, 16, 0, 0);
+        row(x, split, Rangehold.SPLIT, 0, NONE, 0, NONE, 16);
+        is("OK", answer(x, split), OK);
+        row(x, split, Rangehold.SPLIT, 0, OK, 1, NONE, 16);
+        x.pass(9);
+        int freeze = x.freeze(0, 0, 1, 0);
+        is("OK", answer(x, freeze), OK);
+        row(x, freeze, Rangehold.FREEZE, 1, OK, 0, NONE, NONE);
+        int refuse = x.settleJoin(0, Rangehold.REFUSE, freeze, 0);
+        is("OK", answer(x, refuse), OK);
+        row(x, refuse, Rangehold.REFUSE, 0, OK, 0, NONE, NONE);
+        int join = x.settleJoin(0, Rangehold.JOIN, freeze, 0);
+        is("REFUSED", answer(x, join), Rangehold.REFUSED);
+        row(x, join, Rangehold.JOIN, 0, Rangehold.REFUSED, 0, NONE, NONE);
+        int thaw = x.settleJoin(0, Rangehold.THAW, freeze, 0);
+        is("OK", answer(x, thaw), OK);
+        row(x, thaw, Rangehold.THAW, 1, OK, 0, NONE, NONE);
+        int add = x.change(0, true, 0, 0, 0);
+        is("OK", answer(x, add), OK);
+        row(x, add, Rangehold.ADD, 0, OK, 0, NONE, NONE);
+        int drop = x.change(0, false, 0, 0, 0);
+        row(x, drop, Rangehold.DROP, 0, NONE, 0, NONE, NONE);
+        x.stop(0, false);
+        row(x, drop, Rangehold.DROP, 0, -5, 0, NONE, NONE);
+    }
+
+    private static void row(Rangehold x, int ask, long command, long range, long answer, long value, long transaction, long key) {
+        long[] due = {command, 0, range, answer, value, transaction, key};
+        for (int what = 0; what < due.length; what++) {
+            is("askAt(" + ask + ", " + what + ")", x.askAt(ask, what), due[what]);
+        }
+    }
+
     private static void owners() {
         Rangehold x = new Rangehold();
         is("nobody owns ahead of a group", x.ownerOf(31), NONE);
@@ -463,6 +576,9 @@ public final class TransactionEdges extends Checks {
         looksAnywhere();
         resolvedMoments();
         feeds();
+        feedsOfTheFirstKey();
+        answersWithoutValues();
+        askRows();
         owners();
         heldByMoments();
         finish("TransactionEdges");
