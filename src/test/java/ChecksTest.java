@@ -61,6 +61,11 @@ public final class ChecksTest {
         return x;
     }
 
+    private static void answered(Rangehold x, int ask) {
+        x.settle(20);
+        is("an answer OK", x.askAt(ask, 3) == Rangehold.OK);
+    }
+
     private static void disagrees(String what, String list, int index, String name, long value) throws ReflectiveOperationException {
         Rangehold x = house();
         Object it = row(x, list, index);
@@ -92,6 +97,26 @@ public final class ChecksTest {
         Rangehold unlike = house();
         Array.setInt(part(row(row(unlike, "nodes", 1), "copies", 0), "terms"), 1, 9);
         is("an entry that was agreed on otherwise", unlike.errors() > 0);
+        Rangehold owned = house();
+        answered(owned, owned.split(0, 16, 0, 0));
+        Object lower = part(row(owned, "ranges", 0), "state");
+        field(lower, "behind").setInt(lower, 17);
+        is("a key with two owners", owned.errors() > 0);
+        Rangehold left = house();
+        Object wrote = Array.get(part(row(left, "transactions", 2), "wrote"), 2);
+        field(wrote, "value").setLong(wrote, 99);
+        is("a job that left something else", !left.agrees());
+        Rangehold first = house();
+        ((int[]) part(part(row(row(first, "nodes", 0), "copies", 0), "state"), "versions"))[0] = 0;
+        is("a feed of the first node that lacks a version", first.errors() > 0);
+        Rangehold last = house();
+        Object longest = row(row(last, "nodes", 0), "copies", 0);
+        Array.setInt(part(longest, "terms"), 0, 9);
+        is("the first entry, agreed on otherwise", last.errors() > 0);
+        Rangehold end = house();
+        longest = row(row(end, "nodes", 0), "copies", 0);
+        Array.setInt(part(longest, "terms"), (Integer) part(longest, "carried") - 1, 9);
+        is("the last entry that was carried out, agreed on otherwise", end.errors() > 0);
         Rangehold twice = house();
         Object copy = row(row(twice, "nodes", 1), "copies", 0);
         field(copy, "role").setInt(copy, Rangehold.LEADER);

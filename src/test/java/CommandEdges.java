@@ -518,6 +518,36 @@ public final class CommandEdges extends Checks {
         is("there are four", x.count(3), 4);
     }
 
+    /** Eight ranges, all of them there; they can be joined again, but no number comes back. */
+    private static void eightRanges() {
+        Rangehold x = alone();
+        for (int range = 1; range < 8; range++) {
+            is("SPLIT", answer(x, x.split(0, 32 - 4 * range, 0, 0)), OK);
+            is("the new range", value(x), range);
+            is("ranges", x.count(3), range + 1);
+        }
+        fails("a ninth", BAD_STATE, x, () -> x.split(0, 2, 0, 0));
+        fails("rangeAt of a ninth", NO_SUCH_NUMBER, x, () -> x.rangeAt(8, 0));
+        fails("copyAt of a ninth", NO_SUCH_NUMBER, x, () -> x.copyAt(0, 8, 0));
+        is("copies", x.nodeAt(0, 3), 8);
+        x.pass(9);
+        is("LEADERs", x.count(12), 8);
+        for (int key = 0; key < 32; key++) {
+            int owner = key < 4 ? 0 : 8 - key / 4;
+            is("the owner of " + key, x.ownerOf(key), owner);
+            is("a READ there", answer(x, x.readAsOf(0, 0, key, owner, 0)), OK);
+        }
+        for (int range = 7; range > 0; range--) {
+            int freeze = x.freeze(0, 0, range, 0);
+            is("FREEZE", answer(x, freeze), OK);
+            is("JOIN", settle(x, JOIN, freeze), OK);
+        }
+        is("all keys are in one range", x.rangeAt(0, 1), 32);
+        is("all ranges are there", x.count(3), 8);
+        fails("no number comes back", BAD_STATE, x, () -> x.split(0, 2, 0, 0));
+        is("errors", x.errors(), 0);
+    }
+
     // FREEZE, JOIN, REFUSE, THAW
 
     /** Ranges 0 (keys 0 to 15) and 1, both led by node 0. */
@@ -570,6 +600,95 @@ public final class CommandEdges extends Checks {
         is("JOIN", settle(x, JOIN, second), OK);
         is("what was written between is joined", x.intentAt(0, 20, 0), it);
         is("and held", x.heldAt(20), 200);
+        is("errors", x.errors(), 0);
+    }
+
+    /** Lets node 1, which has nothing so far, lead a range of node 0: it gets its base. */
+    private static void moved(Rangehold x, int range) {
+        x.compact(0, range);
+        is("ADD", answer(x, x.change(2, true, 1, range, 0)), OK);
+        x.pass(3);
+        calm(x);
+        is("DROP", answer(x, x.change(2, false, 0, range, 0)), OK);
+        for (int i = 0; i < 60 && roleOf(x, 1, range) != Rangehold.LEADER; i++) {
+            x.pass(1);
+            calm(x);
+        }
+        is("node 1 leads", roleOf(x, 1, range), Rangehold.LEADER);
+    }
+
+    private static Rangehold withOthers() {
+        Rangehold x = alone();
+        x.addNode(0);
+        x.addNode(0);
+        return x;
+    }
+
+    /** A base that is told has all: keys, moments, records, epochs. */
+    private static void basesTold() {
+        Rangehold x = withOthers();
+        is("SPLIT", answer(x, x.split(2, 16, 0, 0)), OK);
+        x.pass(9);
+        int first = settled(x, 0, 0, 1, 15, 2);
+        int open = x.begin(2);
+        x.pass(3);
+        int it = x.begin(2);
+        is("an intent on the first key", answer(x, x.write(it, 0, 10, 0, 0)), OK);
+        is("and on another one", answer(x, x.write(it, 14, 20, 0, 0)), OK);
+        is("END", answer(x, x.end(it, true, 0, 0)), OK);
+        is("a reading", answer(x, x.readAsOf(2, 800 * 25, 3, 0, 0)), OK);
+        is("CLOSE", close(x, moment(x, first) + 1, 0), OK);
+        is("SWEEP", sweep(x, moment(x, first), 0), OK);
+        int refused = x.freeze(2, 0, 1, 0);
+        is("FREEZE", answer(x, refused), OK);
+        is("REFUSE", answer(x, x.settleJoin(2, REFUSE, refused, 0)), OK);
+        is("THAW", answer(x, x.settleJoin(2, THAW, refused, 0)), OK);
+        int joined = x.freeze(2, 0, 1, 0);
+        is("FREEZE", answer(x, joined), OK);
+        is("JOIN", answer(x, x.settleJoin(2, JOIN, joined, 0)), OK);
+        is("the closed moment is the lesser one of both", x.rangeAt(0, 8), 0);
+        is("CLOSE", close(x, moment(x, first) + 1, 0), OK);
+        moved(x, 0);
+        is("JOIN of what was refused", answer(x, x.settleJoin(2, JOIN, refused, 1)), REFUSED);
+        is("JOIN of what was joined", answer(x, x.settleJoin(2, JOIN, joined, 1)), OK);
+        is("REFUSE of what was joined", answer(x, x.settleJoin(2, REFUSE, joined, 1)), JOINED);
+        is("below the floor", answer(x, x.readAsOf(2, moment(x, first) - 1, 0, 0, 1)), GONE);
+        is("at the floor", answer(x, x.readAsOf(2, moment(x, first), 0, 0, 1)), OK);
+        is("a version", value(x), 1);
+        is("behind it is an intent", answer(x, x.readAsOf(2, 800 * 26, 0, 0, 1)), WAITS);
+        is("its transaction", value(x), it);
+        is("another one", answer(x, x.readAsOf(2, 800 * 26, 14, 0, 1)), WAITS);
+        is("LOOK above the closed moment", answer(x, x.asOf(2, Rangehold.LOOK, 1 + moment(x, first) + 1, 15, 0, 1)), Rangehold.UNKNOWN);
+        is("LOOK at it", answer(x, x.asOf(2, Rangehold.LOOK, moment(x, first) + 1, 15, 0, 1)), OK);
+        is("a version", value(x), 2);
+        is("a WRITE ahead of a reading", answer(x, x.write(open, 3, 1, 0, 1)), LATE);
+        is("its moment", value(x), 800 * 25 + 1);
+        is("a record", answer(x, x.push(2, it, 0, 1)), OK);
+        is("RESOLVE", answer(x, x.resolve(2, it, 0, 0, 1)), OK);
+        is("a version by it", answer(x, x.readAsOf(2, 800 * 26, 0, 0, 1)), OK);
+        is("with its value", value(x), 10);
+        is("errors", x.errors(), 0);
+    }
+
+    private static void frozenBasesTold() {
+        Rangehold x = withOthers();
+        is("SPLIT", answer(x, x.split(2, 16, 0, 0)), OK);
+        x.pass(9);
+        int first = x.freeze(2, 0, 1, 0);
+        bring(x, Rangehold.REQUEST, 0);
+        hush(x);
+        is("REFUSE", answer(x, x.settleJoin(2, REFUSE, first, 0)), OK);
+        is("THAW", answer(x, x.settleJoin(2, THAW, first, 0)), OK);
+        int second = x.freeze(2, 0, 1, 0);
+        is("FREEZE", answer(x, second), OK);
+        is("REFUSE", answer(x, x.settleJoin(2, REFUSE, second, 0)), OK);
+        moved(x, 1);
+        is("frozen", answer(x, x.readAsOf(2, 0, 16, 1, 1)), FROZEN);
+        is("not by the first epoch", answer(x, x.settleJoin(2, THAW, first, 1)), WRONG);
+        is("by the second one", answer(x, x.settleJoin(2, THAW, second, 1)), OK);
+        is("as it was", answer(x, x.readAsOf(2, 0, 16, 1, 1)), OK);
+        x.again(first, 1);
+        is("the greatest epoch is that of the second one", answer(x, first), WRONG);
         is("errors", x.errors(), 0);
     }
 
@@ -1012,12 +1131,15 @@ public final class CommandEdges extends Checks {
         splitTakesAlong();
         splitAgain();
         splitOfSplit();
+        eightRanges();
         freezes();
         freezesLater();
         basesOfKeys();
         basesOfReadings();
         basesOfEpochs();
         basesOfSplits();
+        basesTold();
+        frozenBasesTold();
         lastAsks();
         lastEpochs();
         joinsOnce();

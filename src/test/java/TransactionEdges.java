@@ -282,6 +282,35 @@ public final class TransactionEdges extends Checks {
         is("not the third one", isRefused(x, "resolve", 2, it, 3, 0, 0), true);
     }
 
+    /** Two moments of one k, of which one is 1 more: it sees the other one. */
+    private static void nextMoments() {
+        Rangehold x = with(nodes(2), "tx ab{get x 5;put 6,x;give x;}");
+        x.found(1);
+        x.pass(9);
+        int it = x.begin(0);
+        is("a WRITE", answer(x, x.write(it, 5, 50, 0, 0)), OK);
+        is("END", answer(x, x.end(it, true, 0, 0)), OK);
+        resolveAll(x, it, 0, 5);
+        int next = x.begin(1);
+        is("its moment is 1 more", moment(x, next), moment(x, it) + 1);
+        is("a READ", answer(x, x.read(next, 5, 0, 0)), OK);
+        is("sees it", value(x), 50);
+        is("a SCAN", answer(x, x.scan(next, 5, 6, 0, 0)), OK);
+        x.end(next, true, 0, 0);
+        is("agrees", x.agrees(), true);
+        is("as of its moment", x.valueAt(5, moment(x, it)), 50);
+        is("not as of the moment ahead", x.valueAt(5, moment(x, it) - 1), ABSENT);
+        int last = x.begin(0);
+        is("another one", answer(x, x.write(last, 5, 51, 0, 0)), OK);
+        is("END", answer(x, x.end(last, true, 0, 0)), OK);
+        x.run(1, 0, 0, 0);
+        is("a job's moment is 1 more", moment(x, (int) x.jobAt(0, 6)), moment(x, last) + 1);
+        x.settle(40);
+        is("it sees the other one", x.jobAt(0, 4), 51);
+        is("agrees", x.agrees(), true);
+        is("errors", x.errors(), 0);
+    }
+
     // section 9
 
     private static void looks() {
@@ -572,6 +601,7 @@ public final class TransactionEdges extends Checks {
         tells();
         tellsByK();
         resolvers();
+        nextMoments();
         looks();
         looksAnywhere();
         resolvedMoments();

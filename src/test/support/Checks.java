@@ -5,6 +5,16 @@ class Checks {
     static final long ABSENT = Rangehold.ABSENT;
     static final int NONE = Rangehold.NONE;
     static final int OK = Rangehold.OK;
+
+    /** The pieces of promise 20. */
+    static final String[] PIECES = {
+        "tx move { get x a; get y b; if x > 0 { put a, x - 1; put b, y + 1; } give x; }",
+        "tx sum { s = 0; scan k v a, b { s = s + v; } put 31, s; give s; }",
+        "tx fill { while a < b { put a, a * a; a = a + 1; } give a; }",
+        "tx swap { has p a; has q b; get x a; get y b; del a; del b; if q { put a, y; } if p { put b, x; } give p + q; }",
+        "tx count { get n a; put a, n + 1; if n > b { fail; } give n; }",
+        "tx tidy { n = 0; scan k v a, b { if v % 2 = 1 { del k; n = n + 1; } else { put k, v / 2; } } give n; }"};
+
     static final Class<?> NO_SUCH_NUMBER = IndexOutOfBoundsException.class;
     static final Class<?> BAD_ARGUMENT = IllegalArgumentException.class;
     static final Class<?> BAD_STATE = IllegalStateException.class;
