@@ -1130,6 +1130,31 @@ public final class GroupEdges extends Checks {
         is("errors", x.errors(), 0);
     }
 
+    /** An ADD is of the disk as it was when it was asked; a DROP is of the node, whatever its disk. */
+    private static void disksAsAsked() {
+        Rangehold x = three();
+        x.addNode(0);
+        int add = x.change(0, true, 3, 0, 0);
+        x.stop(3, true);
+        x.start(3);
+        is("ADD", answer(x, add), OK);
+        is("a member", x.rangeAt(0, 7), 15);
+        x.pass(9);
+        calm(x);
+        is("is a disk that is lost", x.nodeAt(3, 3), 0);
+        is("ADD of the disk that is there", answer(x, x.change(0, true, 3, 0, 0)), LATER);
+        int drop = x.change(0, false, 3, 0, 0);
+        x.stop(3, true);
+        x.start(3);
+        is("DROP", answer(x, drop), OK);
+        is("of all disks of the node", x.rangeAt(0, 7), 7);
+        is("ADD", answer(x, x.change(0, true, 3, 0, 0)), OK);
+        is("a copy", x.nodeAt(3, 3), 1);
+        is("DROP of a disk that is there", answer(x, x.change(0, false, 3, 0, 0)), OK);
+        is("its copy stays", x.nodeAt(3, 3), 1);
+        is("errors", x.errors(), 0);
+    }
+
     /** CALL, VOTE and GOT at a node without a copy do nothing. */
     private static void noCopies() {
         Rangehold x = nodes(2);
@@ -1545,6 +1570,7 @@ public final class GroupEdges extends Checks {
         oldGots();
         lateGots();
         lostDisks();
+        disksAsAsked();
         noCopies();
         changesLater();
         changesAmongOthers();
